@@ -1,0 +1,2856 @@
+import java.util.Arrays;
+import java.util.NoSuchElementException;
+
+/**
+ * A hall in which equations are turned into rules until two ways always meet.
+ *
+ * A term is held as numbers in the order of its text: a symbol f with arity r is f * 3 + r,
+ * a variable v is -1 - v. So a part is a run of numbers, and a greater symbol is a greater number.
+ */
+public final class Rewritehall {
+    private static final int NONE = -1;
+    private static final int BROKEN = -2;
+    private static final int CLASH = -3;
+    private static final int RING = -4;
+    private static final int MOST_SIZE = 40;
+    private static final int MOST_STEPS = 60;
+    private static final int MOST_USES = 300;
+    private static final int SOUND_USES = 40;
+    private static final int MANY_USES = 1000000;
+    private static final int MOST_TABLES = 2048;
+    private static final int MOST_ENDS = 200;
+    private static final int STACK = 8;
+    private static final int SYMBOLS = 5;
+    private static final int NAMES = 128;
+    /** What stands apart in an overlap gets numbers from here on. */
+    private static final int APART = 64;
+    /** A side that comes has at most 20 variables, each with less than 40 in its place. */
+    private static final int COMES = 1000;
+    /** Terms of a proof may be large; none is known to come near this. */
+    private static final int LARGE = 20000;
+    /** Conditions in conditions go so deep at most; three calls stand open for each. */
+    private static final int DEPTH = 80;
+    private static final int FUEL = 1000000;
+    private static final int PLAIN = -1;
+
+    private static final int[] GROUPS_TOLD = {
+        5, 0, -1, -1,
+        5, 7, -1, -1, 0,
+        5, 5, -1, -2, -3, 5, -1, 5, -2, -3};
+    private static final int[] GROUPS_MORE = {
+        5, -1, 0, -1,
+        5, -1, 7, -1, 0,
+        5, 7, -1, 5, -1, -2, -2,
+        5, -1, 5, 7, -1, -2, -2,
+        7, 0, 0,
+        7, 7, -1, -1,
+        7, 5, -1, -2, 5, 7, -2, 7, -1};
+    private static final int[] LISTS_TOLD = {
+        8, 0, -1, -1,
+        8, 5, -1, -2, -3, 5, -1, 8, -2, -3,
+        10, 0, 0,
+        10, 5, -1, -2, 8, 10, -2, 5, -1, 0};
+    private static final int[] RINGS_TOLD = {
+        5, 0, -1, -1,
+        5, -1, 0, -1,
+        8, -1, 5, -2, -3, 5, 8, -1, -2, 8, -1, -3,
+        8, 5, -1, -2, -3, 5, 8, -1, -3, 8, -2, -3};
+    private static final int[] RINGS_MORE = {
+        8, 0, -1, 0,
+        8, -1, 0, 0,
+        10, 0, 0,
+        10, 10, -1, -1};
+
+    private final int[] arities = new int[SYMBOLS];
+    private final boolean[] sums = new boolean[SYMBOLS];
+    private int symbolCount;
+    private final Word[] stack = new Word[STACK];
+    private int stackSize;
+    private int knocks;
+    private final Orders orders = new Orders();
+    private final Rows rows = new Rows();
+    private final Binding binding = new Binding();
+    private final Stepper stepper = new Stepper(rows, orders, binding);
+    private final Meeting meeting = new Meeting();
+    private final Completion completion = new Completion(rows, orders, stepper, meeting);
+    private final Proof proof = new Proof();
+    private final Overlaps peaks = new Overlaps(rows, stepper, meeting);
+    private final Tables values = new Tables(rows, arities);
+    private final Sorter sorter = new Sorter();
+    private final Grounds grounds = new Grounds(arities, stepper);
+    private final Word first = new Word(MOST_SIZE + 1);
+    private final Word second = new Word(MOST_SIZE + 1);
+    private final int[] names = new int[NAMES];
+    private final int[] open = new int[LARGE];
+    private final StringBuilder out = new StringBuilder();
+
+    public Rewritehall() {
+        for (int k = 0; k < STACK; k++) {
+            stack[k] = new Word(MOST_SIZE + 1);
+        }
+    }
+
+    public int symbol(int arity, int weight) throws IllegalArgumentException, IllegalStateException {
+        if (arity < 0 || arity > 2 || weight < 1 || weight > 9) {
+            throw new IllegalArgumentException("no such arity or weight");
+        }
+        if (symbolCount >= SYMBOLS) {
+            throw new IllegalStateException("all symbols are told");
+        }
+        return tell(arity, weight);
+    }
+
+    private int tell(int arity, int weight) {
+        int f = symbolCount;
+        if (f >= 0 && f < SYMBOLS) {
+            arities[f] = arity;
+            orders.weights[f] = weight;
+            sums[f] = false;
+            symbolCount++;
+        }
+        return f;
+    }
+
+    public boolean sum(int f, boolean isSum) throws IndexOutOfBoundsException, IllegalArgumentException {
+        if (!isSymbol(f)) {
+            throw new IndexOutOfBoundsException("no such symbol");
+        }
+        if (arities[f] != 2) {
+            throw new IllegalArgumentException("a sum has two arguments");
+        }
+        boolean was = sums[f];
+        sums[f] = isSum;
+        return was;
+    }
+
+    private boolean isSymbol(int f) {
+        return f >= 0 && f < symbolCount && f < SYMBOLS;
+    }
+
+    public int variable(int v) throws IllegalArgumentException, IllegalStateException {
+        if (v < 0 || v > 5) {
+            throw new IllegalArgumentException("no such variable");
+        }
+        if (stackSize >= STACK) {
+            throw new IllegalStateException("the stack is full");
+        }
+        first.at[0] = -1 - v;
+        first.size = 1;
+        return pushed(first);
+    }
+
+    private int pushed(Word w) {
+        if (stackSize >= 0 && stackSize < STACK) {
+            stack[stackSize].set(w.at, w.size);
+            stackSize++;
+        }
+        return stackSize;
+    }
+
+    /** A term of the stack, from the top on; null if there is none. */
+    private Word fromTop(int i) {
+        if (i < 0 || i >= stackSize || stackSize > STACK) {
+            return null;
+        }
+        return stack[stackSize - 1 - i];
+    }
+
+    public int apply(int f) throws IndexOutOfBoundsException, IllegalStateException {
+        if (!isSymbol(f)) {
+            throw new IndexOutOfBoundsException("no such symbol");
+        }
+        int arity = arities[f];
+        if (stackSize < arity || stackSize - arity >= STACK || !isApplied(f, arity)) {
+            throw new IllegalStateException("the stack or the size does not allow that");
+        }
+        stackSize -= arity;
+        pushed(first);
+        return first.size;
+    }
+
+    private boolean isApplied(int f, int arity) {
+        first.at[0] = f * 3 + arity;
+        first.size = 1;
+        for (int k = arity - 1; k >= 0; k--) {
+            Word w = fromTop(k);
+            if (w == null || !first.adds(w.at, 0, w.size, MOST_SIZE)) {
+                return false;
+            }
+        }
+        return true;
+    }
+
+    public int drop() throws IllegalStateException {
+        if (stackSize == 0) {
+            throw new IllegalStateException("the stack is empty");
+        }
+        stackSize--;
+        return stackSize;
+    }
+
+    public int again(int i) throws IndexOutOfBoundsException, IllegalStateException {
+        Word w = fromTop(i);
+        if (w == null) {
+            throw new IndexOutOfBoundsException("no such term");
+        }
+        if (stackSize >= STACK) {
+            throw new IllegalStateException("the stack is full");
+        }
+        return pushed(w);
+    }
+
+    public int exchange() throws IllegalStateException {
+        Word top = fromTop(0);
+        Word below = fromTop(1);
+        if (top == null || below == null) {
+            throw new IllegalStateException("there are no two terms");
+        }
+        stack[stackSize - 1] = below;
+        stack[stackSize - 2] = top;
+        return below.size;
+    }
+
+    public int part(int place) throws IndexOutOfBoundsException {
+        Word top = fromTop(0);
+        if (!hasPlace(top, place)) {
+            throw new IndexOutOfBoundsException("no such place");
+        }
+        first.size = 0;
+        first.adds(top.at, place, Terms.behind(top.at, place), MOST_SIZE);
+        top.set(first.at, first.size);
+        return top.size;
+    }
+
+    private static boolean hasPlace(Word w, int place) {
+        return w != null && place >= 0 && place < w.size && place < w.at.length;
+    }
+
+    public int put(int place) throws IndexOutOfBoundsException, IllegalStateException {
+        Word top = fromTop(0);
+        Word below = fromTop(1);
+        if (top == null || !hasPlace(below, place)) {
+            throw new IndexOutOfBoundsException("no such place");
+        }
+        first.size = 0;
+        if (!first.adds(below.at, 0, place, MOST_SIZE) || !first.adds(top.at, 0, top.size, MOST_SIZE)
+                || !first.adds(below.at, Terms.behind(below.at, place), below.size, MOST_SIZE)) {
+            throw new IllegalStateException("too large");
+        }
+        stackSize--;
+        below.set(first.at, first.size);
+        return below.size;
+    }
+
+    public String text(int i) throws IndexOutOfBoundsException {
+        Word w = fromTop(i);
+        if (w == null) {
+            throw new IndexOutOfBoundsException("no such term");
+        }
+        return textOf(w);
+    }
+
+    private String textOf(Word w) {
+        out.setLength(0);
+        Terms.write(out, w.at, 0, w.size, open);
+        return out.toString();
+    }
+
+    public int ofTerm(int i, int what) throws IndexOutOfBoundsException, IllegalArgumentException {
+        Word w = fromTop(i);
+        if (w == null) {
+            throw new IndexOutOfBoundsException("no such term");
+        }
+        switch (what) {
+            case 0:
+                return w.size;
+            case 1:
+                return Terms.deepest(w.at, w.size, open);
+            case 2:
+                Arrays.fill(names, NONE);
+                return Terms.name(names, 0, w.at, w.size);
+            case 3:
+                return orders.weightOf(w);
+            case 4:
+                return Math.max(NONE, Terms.greatestVariable(w.at, w.size));
+            default:
+                throw new IllegalArgumentException("no such what");
+        }
+    }
+
+    public int ofPlace(int place, int what)
+            throws IndexOutOfBoundsException, IllegalArgumentException, IllegalStateException {
+        Word top = fromTop(0);
+        if (!hasPlace(top, place)) {
+            throw new IndexOutOfBoundsException("no such place");
+        }
+        int c = top.at[place];
+        switch (what) {
+            case 0:
+                return c < 0 ? NONE : c / 3;
+            case 1:
+                return c < 0 ? -1 - c : NONE;
+            case 2:
+                return Terms.behind(top.at, place) - place;
+            case 3:
+                return around(top.at, place);
+            case 4:
+                stepper.refresh();
+                int found = stepper.useAt(top, place, 0);
+                if (found == BROKEN) {
+                    throw new IllegalStateException("a bound is not kept");
+                }
+                return found;
+            default:
+                throw new IllegalArgumentException("no such what");
+        }
+    }
+
+    /** The greatest place that a place is within. */
+    private static int around(int[] t, int place) {
+        for (int p = place - 1; p >= 0; p--) {
+            if (Terms.behind(t, p) > place) {
+                return p;
+            }
+        }
+        return NONE;
+    }
+
+    public String match() throws IllegalStateException {
+        Word top = fromTop(0);
+        Word below = fromTop(1);
+        if (top == null || below == null) {
+            throw new IllegalStateException("there are no two terms");
+        }
+        if (!binding.takes(below.at, below.size, top, 0)) {
+            return "-";
+        }
+        out.setLength(0);
+        for (int v = 0; v < binding.bound.length; v++) {
+            int p = binding.bound[v];
+            if (p < 0) {
+                continue;
+            }
+            if (out.length() > 0) {
+                out.append(';');
+            }
+            out.append('x').append(v).append('=');
+            Terms.write(out, top.at, p, Terms.behind(top.at, p), open);
+        }
+        return out.toString();
+    }
+
+    public String unify(boolean isApart) throws IllegalStateException {
+        Word top = fromTop(0);
+        Word below = fromTop(1);
+        int found = top == null || below == null ? BROKEN : meeting.meets(below, top, isApart);
+        if (found == BROKEN) {
+            throw new IllegalStateException("there are no two terms, or too large");
+        }
+        if (found != 1) {
+            return found == CLASH ? "%" : "@";
+        }
+        first.set(meeting.peak.at, meeting.peak.size);
+        Arrays.fill(names, NONE);
+        Terms.name(names, 0, first.at, first.size);
+        Terms.rename(first.at, 0, first.size, names);
+        return textOf(first);
+    }
+
+    public int compare(int which) throws IllegalArgumentException, IllegalStateException {
+        if (which != 0 && which != 1) {
+            throw new IllegalArgumentException("no such order");
+        }
+        Word top = fromTop(0);
+        Word below = fromTop(1);
+        if (top == null || below == null) {
+            throw new IllegalStateException("there are no two terms");
+        }
+        if (orders.isOver(which, below, top)) {
+            return 1;
+        }
+        if (orders.isOver(which, top, below)) {
+            return -1;
+        }
+        return top.isLike(below) ? 0 : 9;
+    }
+
+    public int equation() throws IllegalStateException {
+        Word top = fromTop(0);
+        Word below = fromTop(1);
+        if (top == null || below == null || rows.equationCount >= rows.equations.length
+                || rows.waitCount >= rows.waiting.length) {
+            throw new IllegalStateException("there are no two terms, or a row is full");
+        }
+        stackSize -= 2;
+        return rows.told(below, top, names);
+    }
+
+    public int condition() throws IllegalStateException, IllegalArgumentException {
+        int n = rows.guardedCount;
+        if (stackSize < 4 || n < 0 || n >= rows.guarded.length) {
+            throw new IllegalStateException("there are no four terms, or the row is full");
+        }
+        Word left = fromTop(3);
+        if (left == null || left.at[0] < 0 || !isGuardable(left)) {
+            throw new IllegalArgumentException("the left side is not greater");
+        }
+        rows.guarded[n] = new Guarded(namedFromTop(3), namedFromTop(2), namedFromTop(1), namedFromTop(0));
+        rows.guardedCount++;
+        stackSize -= 4;
+        return n;
+    }
+
+    /** Whether the three terms on the top may stand with this left side; its variables are named. */
+    private boolean isGuardable(Word left) {
+        Arrays.fill(names, NONE);
+        int known = Terms.name(names, 0, left.at, left.size);
+        for (int k = 0; k < 3; k++) {
+            Word w = fromTop(k);
+            if (w == null || Terms.name(names, known, w.at, w.size) > known || !orders.isOver(orders.which, left, w)) {
+                return false;
+            }
+        }
+        return true;
+    }
+
+    private int[] namedFromTop(int i) {
+        Word w = fromTop(i);
+        return Terms.named(w == null ? first : w, names);
+    }
+
+    public int order(int which) throws IllegalArgumentException, IllegalStateException {
+        if (which != 0 && which != 1) {
+            throw new IllegalArgumentException("no such order");
+        }
+        if (rows.ruleCount > 0 || rows.unturnedCount > 0 || rows.guardedCount > 0) {
+            throw new IllegalStateException("the order is in use");
+        }
+        int before = orders.which;
+        orders.which = which;
+        rows.isStuck = false;
+        return before;
+    }
+
+    public int step(int strategy) throws IllegalArgumentException, IllegalStateException {
+        if (strategy < 0 || strategy > 3) {
+            throw new IllegalArgumentException("no such strategy");
+        }
+        Word top = fromTop(0);
+        int place = top == null ? BROKEN : stepped(top, strategy);
+        if (place == BROKEN) {
+            throw new IllegalStateException("the stack is empty, or a bound is not kept");
+        }
+        return place;
+    }
+
+    private int stepped(Word top, int strategy) {
+        stepper.refresh();
+        int place = stepper.pick(top, strategy, 0);
+        return place >= 0 && !stepper.isMade(top, place) ? BROKEN : place;
+    }
+
+    public int end(int strategy) throws IllegalArgumentException, IllegalStateException {
+        int count = steps(strategy);
+        Word top = fromTop(0);
+        if (top != null) {
+            top.set(first.at, first.size);
+        }
+        return count;
+    }
+
+    public int steps(int strategy) throws IllegalArgumentException, IllegalStateException {
+        if (strategy < 0 || strategy > 3) {
+            throw new IllegalArgumentException("no such strategy");
+        }
+        Word top = fromTop(0);
+        int count = BROKEN;
+        if (top != null) {
+            stepper.refresh();
+            first.set(top.at, top.size);
+            count = stepper.toEnd(first, strategy, 0, null);
+        }
+        if (count < 0) {
+            throw new IllegalStateException("the stack is empty, or a bound is not kept");
+        }
+        return count;
+    }
+
+    public int redexes() throws IllegalStateException {
+        Word top = fromTop(0);
+        stepper.refresh();
+        int count = top == null ? BROKEN : stepper.lookAtAll(top, 0);
+        if (count == BROKEN) {
+            throw new IllegalStateException("the stack is empty, or a bound is not kept");
+        }
+        return count;
+    }
+
+    public int overlaps() throws IllegalStateException {
+        int count = peaks.made(NONE);
+        if (count == BROKEN) {
+            throw new IllegalStateException("a bound is not kept");
+        }
+        return count;
+    }
+
+    public String overlap(int i, int what)
+            throws IllegalArgumentException, IllegalStateException, IndexOutOfBoundsException {
+        if (what < 0 || what > 4) {
+            throw new IllegalArgumentException("no such what");
+        }
+        int count = peaks.made(i);
+        if (count == BROKEN) {
+            throw new IllegalStateException("a bound is not kept");
+        }
+        if (i < 0 || i >= count) {
+            throw new IndexOutOfBoundsException("no such overlap");
+        }
+        Word w = what == 0 ? peaks.peak : what % 2 == 1 ? peaks.left : peaks.right;
+        if (what > 2 && stepper.toEnd(w, 0, PLAIN, null) < 0) {
+            throw new IllegalStateException("a bound is not kept");
+        }
+        return textOf(w);
+    }
+
+    public int missing() throws IllegalStateException {
+        int i = peaks.firstMissing();
+        if (i == BROKEN) {
+            throw new IllegalStateException("a bound is not kept");
+        }
+        return i;
+    }
+
+    public int complete() throws IllegalStateException {
+        int told = completion.advance();
+        if (told == BROKEN) {
+            throw new IllegalStateException("refused");
+        }
+        return told;
+    }
+
+    public int finish(int most) throws IllegalArgumentException {
+        if (most < 1 || most > 12) {
+            throw new IllegalArgumentException("no such number");
+        }
+        int count = 0;
+        while (count < most && completion.advance() >= 0) {
+            count++;
+        }
+        return count;
+    }
+
+    public int restart() {
+        rows.forget();
+        for (int k = 0; k < rows.equationCount && k < rows.equations.length; k++) {
+            Pair pair = rows.equations[k];
+            if (pair != null) {
+                rows.waits(pair);
+            }
+        }
+        return rows.waitCount;
+    }
+
+    public int example(int n, boolean isFinished) throws IllegalArgumentException {
+        if (n < 0 || n > 2) {
+            throw new IllegalArgumentException("no such example");
+        }
+        stackSize = 0;
+        symbolCount = 0;
+        rows.forget();
+        rows.equationCount = 0;
+        orders.which = 0;
+        tell(0, 1);
+        tell(2, 1);
+        tell(n == 0 ? 1 : 2, 1);
+        if (n > 0) {
+            tell(1, 1);
+        }
+        if (n == 2) {
+            sums[1] = true;
+        }
+        tellAll(n == 0 ? GROUPS_TOLD : n == 1 ? LISTS_TOLD : RINGS_TOLD);
+        if (isFinished && n != 1) {
+            tellAll(n == 0 ? GROUPS_MORE : RINGS_MORE);
+        }
+        return rows.equationCount;
+    }
+
+    /** Tells equations, side behind side. */
+    private void tellAll(int[] sides) {
+        int p = 0;
+        while (p < sides.length) {
+            int middle = Terms.behind(sides, p);
+            int end = Terms.behind(sides, middle);
+            first.size = 0;
+            second.size = 0;
+            first.adds(sides, p, middle, MOST_SIZE);
+            second.adds(sides, middle, end, MOST_SIZE);
+            rows.told(first, second, names);
+            p = end > p ? end : sides.length;
+        }
+    }
+
+    public int many(int what) throws IllegalArgumentException {
+        if (what < 0 || what > 11) {
+            throw new IllegalArgumentException("no such what");
+        }
+        return counted(what);
+    }
+
+    private int counted(int what) {
+        switch (what) {
+            case 0:
+                return symbolCount;
+            case 1:
+                return stackSize;
+            case 2:
+                return rows.equationCount;
+            case 3:
+                return rows.ruleCount;
+            case 4:
+                return rows.waitCount;
+            case 5:
+                return rows.unturnedCount;
+            case 6:
+                return rows.guardedCount;
+            case 7:
+                return orders.which;
+            case 8:
+                return rows.dropped;
+            case 9:
+                return rows.made;
+            case 10:
+                return rows.nextAge;
+            default:
+                return knocks;
+        }
+    }
+
+    public String row(int what, int i) throws IllegalArgumentException, IndexOutOfBoundsException {
+        if (what < 0 || what > 6) {
+            throw new IllegalArgumentException("no such row");
+        }
+        if (i < 0 || i >= counted(what)) {
+            throw new IndexOutOfBoundsException("nothing at that place");
+        }
+        writeRow(what, i);
+        return out.toString();
+    }
+
+    private void writeRow(int what, int i) {
+        out.setLength(0);
+        if (what == 0) {
+            writeSymbol(i);
+        } else if (what == 1) {
+            Word w = fromTop(stackSize - 1 - i);
+            if (w != null) {
+                Terms.write(out, w.at, 0, w.size, open);
+            }
+        } else if (what == 6) {
+            writeGuarded(i);
+        } else {
+            Pair[] of = what == 2 ? rows.equations : what == 3 ? rows.rules : what == 4 ? rows.waiting : rows.unturned;
+            Pair pair = i >= 0 && i < of.length ? of[i] : null;
+            if (pair != null) {
+                writeSides(pair.left, what == 3 ? '>' : '=', pair.right);
+            }
+        }
+    }
+
+    private void writeSymbol(int f) {
+        if (!isSymbol(f)) {
+            return;
+        }
+        out.append((char) ('a' + f)).append(arities[f]).append(orders.weights[f]);
+        if (sums[f]) {
+            out.append('+');
+        }
+    }
+
+    private void writeGuarded(int i) {
+        Guarded rule = i >= 0 && i < rows.guarded.length ? rows.guarded[i] : null;
+        if (rule != null) {
+            writeSides(rule.left, '>', rule.right);
+            out.append('|');
+            writeSides(rule.one, '=', rule.other);
+        }
+    }
+
+    private void writeSides(int[] left, char between, int[] right) {
+        Terms.write(out, left, 0, left.length, open);
+        out.append(between);
+        Terms.write(out, right, 0, right.length, open);
+    }
+
+    public int ofRule(int i, int what) throws IndexOutOfBoundsException, IllegalArgumentException {
+        Pair rule = ruleAt(i);
+        if (rule == null) {
+            throw new IndexOutOfBoundsException("no such rule");
+        }
+        if (what < 0 || what > 2) {
+            throw new IllegalArgumentException("no such what");
+        }
+        return what == 0 ? rule.left.length : what == 1 ? rule.right.length : Math.min(MANY_USES, rule.uses);
+    }
+
+    private Pair ruleAt(int i) {
+        return i >= 0 && i < rows.ruleCount && i < rows.rules.length ? rows.rules[i] : null;
+    }
+
+    public boolean same() throws IllegalStateException {
+        int alike = endsAlike();
+        if (alike == BROKEN) {
+            throw new IllegalStateException("there are no two terms, or a bound is not kept");
+        }
+        return alike == 1;
+    }
+
+    /** 1 if the plain ends of the second and the top are alike; both traces are made. */
+    private int endsAlike() {
+        Word top = fromTop(0);
+        Word below = fromTop(1);
+        if (top == null || below == null) {
+            return BROKEN;
+        }
+        first.set(below.at, below.size);
+        second.set(top.at, top.size);
+        if (stepper.toEnd(first, 0, PLAIN, completion.first) < 0
+                || stepper.toEnd(second, 0, PLAIN, completion.second) < 0) {
+            return BROKEN;
+        }
+        return first.isLike(second) ? 1 : 0;
+    }
+
+    /** How many uses the proof has; NONE if the ends are not alike. Its chain is the draft then. */
+    private int proved() {
+        int alike = endsAlike();
+        if (alike != 1) {
+            return alike == 0 ? NONE : BROKEN;
+        }
+        int count = completion.first.broughtBack() + completion.second.broughtBack();
+        if (count > MOST_USES) {
+            return BROKEN;
+        }
+        completion.draft.clear();
+        completion.draft.addAll(completion.first);
+        completion.draft.addTurned(completion.second);
+        return count;
+    }
+
+    public int proofSize() throws IllegalStateException, NoSuchElementException {
+        int count = proved();
+        if (count == BROKEN) {
+            throw new IllegalStateException("there are no two terms, or a bound is not kept");
+        }
+        if (count == NONE) {
+            throw new NoSuchElementException("the ends are not alike");
+        }
+        return count;
+    }
+
+    public String proofUse(int i) throws IllegalStateException, NoSuchElementException, IndexOutOfBoundsException {
+        int count = proofSize();
+        if (i < 0 || i >= count) {
+            throw new IndexOutOfBoundsException("no such use");
+        }
+        if (!isWalked(i + 1)) {
+            throw new IllegalStateException("a bound is not kept");
+        }
+        out.setLength(0);
+        out.append(proof.number).append(proof.isBack ? '<' : '>').append(proof.place);
+        return out.toString();
+    }
+
+    public String proofTerm(int i) throws IllegalStateException, NoSuchElementException, IndexOutOfBoundsException {
+        int count = proofSize();
+        if (i < 0 || i > count) {
+            throw new IndexOutOfBoundsException("no such term");
+        }
+        if (!isWalked(i)) {
+            throw new IllegalStateException("a bound is not kept");
+        }
+        return textOf(proof.now);
+    }
+
+    /** Walks the proof as many uses far. */
+    private boolean isWalked(int count) {
+        Word below = fromTop(1);
+        if (below == null) {
+            return false;
+        }
+        proof.start(below.at, below.size, completion.draft);
+        for (int k = 0; k < count; k++) {
+            if (!proof.isMoved()) {
+                return false;
+            }
+        }
+        return true;
+    }
+
+    public boolean isProved() throws IllegalStateException, NoSuchElementException {
+        int count = proofSize();
+        Word top = fromTop(0);
+        Word below = fromTop(1);
+        return count >= 0 && top != null && below != null
+                && proof.isLeading(below.at, below.size, top.at, top.size, completion.draft);
+    }
+
+    public int sumForm() throws IllegalStateException {
+        Word top = fromTop(0);
+        if (top == null) {
+            throw new IllegalStateException("the stack is empty");
+        }
+        return summed(top);
+    }
+
+    public boolean likeSums() throws IllegalStateException {
+        Word top = fromTop(0);
+        Word below = fromTop(1);
+        if (top == null || below == null) {
+            throw new IllegalStateException("there are no two terms");
+        }
+        first.set(top.at, top.size);
+        second.set(below.at, below.size);
+        summed(first);
+        summed(second);
+        return first.isLike(second);
+    }
+
+    /** The sum form of w, from the last sum to the first one: what lies within is done then. Tells how many sums. */
+    private int summed(Word w) {
+        int count = 0;
+        for (int p = w.size - 1; p >= 0; p--) {
+            int c = p < w.at.length ? w.at[p] : NONE;
+            if (c >= 0 && isSymbol(c / 3) && sums[c / 3]) {
+                sorter.sort(w, p);
+                count++;
+            }
+        }
+        return count;
+    }
+
+    public int ends(int size) throws IllegalArgumentException, IllegalStateException {
+        if (size < 1 || size > 6) {
+            throw new IllegalArgumentException("no such size");
+        }
+        int count = grounds.made(size, symbolCount);
+        if (count == BROKEN) {
+            throw new IllegalStateException("too many");
+        }
+        return count;
+    }
+
+    public int tables(int n) throws IllegalArgumentException, IllegalStateException {
+        if (n != 2 && n != 3) {
+            throw new IllegalArgumentException("no such number of values");
+        }
+        int all = values.lay(n, symbolCount);
+        if (all == BROKEN) {
+            throw new IllegalStateException("too many tables");
+        }
+        int count = 0;
+        for (int k = 0; k < all; k++) {
+            count += values.isModel(n) ? 1 : 0;
+            values.advance(n);
+        }
+        return count;
+    }
+
+    public String table(int n) throws IllegalArgumentException, IllegalStateException {
+        if (n != 2 && n != 3) {
+            throw new IllegalArgumentException("no such number of values");
+        }
+        Word top = fromTop(0);
+        Word below = fromTop(1);
+        int all = top == null || below == null ? BROKEN : values.lay(n, symbolCount);
+        if (all == BROKEN) {
+            throw new IllegalStateException("there are no two terms, or too many tables");
+        }
+        for (int k = 0; k < all; k++) {
+            if (values.isUnlike(below.at, below.size, top.at, top.size, n) && values.isModel(n)) {
+                out.setLength(0);
+                values.write(out, symbolCount);
+                return out.toString();
+            }
+            values.advance(n);
+        }
+        return "-";
+    }
+
+    public int knock() {
+        knocks++;
+        return knocks;
+    }
+
+    public boolean isSound() {
+        return isWhole();
+    }
+
+    private boolean isWhole() {
+        for (int k = 0; k < rows.ruleCount; k++) {
+            Pair rule = ruleAt(k);
+            if (rule == null) {
+                continue;
+            }
+            int[] left = rule.left;
+            int[] right = rule.right;
+            if (!orders.isGreater(orders.which, left, 0, left.length, right, right.length)) {
+                return false;
+            }
+            if (rule.uses <= SOUND_USES && !proof.isLeading(left, left.length, right, right.length, rule.chain)) {
+                return false;
+            }
+        }
+        return rows.waitCount > 0 || rows.unturnedCount > 0 || peaks.firstMissing() < 0;
+    }
+
+    public long digest() {
+        long d = 6107;
+        for (int what = 0; what < 12; what++) {
+            d = d * 31 + counted(what);
+        }
+        for (int what = 0; what < 7; what++) {
+            int n = counted(what);
+            for (int i = 0; i < n; i++) {
+                writeRow(what, i);
+                for (int k = 0; k < out.length(); k++) {
+                    d = d * 31 + out.charAt(k);
+                }
+                d = d * 31 + 10;
+            }
+        }
+        for (int k = 0; k < rows.ruleCount; k++) {
+            Pair rule = ruleAt(k);
+            d = d * 31 + (rule == null ? 0 : Math.min(MANY_USES, rule.uses));
+        }
+        return d * 31 + (isWhole() ? 1 : 0);
+    }
+
+    /** A row of numbers of which the first ones count. */
+    private static final class Word {
+        int[] at;
+        int size;
+
+        Word(int most) {
+            at = new int[most < 1 ? 1 : most];
+        }
+
+        void set(int[] t, int n) {
+            int count = n < 0 ? 0 : n > at.length ? at.length : n;
+            count = count > t.length ? t.length : count;
+            System.arraycopy(t, 0, at, 0, count);
+            size = count;
+        }
+
+        /** Adds some of t, if that keeps the size below most; tells whether it did. */
+        boolean adds(int[] t, int from, int to, int most) {
+            int n = to - from;
+            if (from < 0 || n < 0 || to > t.length) {
+                return false;
+            }
+            if (size + n > most || size + n > at.length) {
+                return false;
+            }
+            System.arraycopy(t, from, at, size, n);
+            size += n;
+            return true;
+        }
+
+        boolean isLike(Word other) {
+            return size == other.size && Terms.isAlike(at, 0, other.at, 0, size);
+        }
+    }
+
+    /** What can be told of terms alone. */
+    private static final class Terms {
+        /** The number behind the part that begins at p. */
+        static int behind(int[] t, int p) {
+            int q = p;
+            int missing = 1;
+            while (missing > 0 && q >= 0 && q < t.length) {
+                int c = t[q];
+                missing += (c < 0 ? 0 : c % 3) - 1;
+                q++;
+            }
+            return q;
+        }
+
+        static boolean isAlike(int[] a, int p, int[] b, int q, int n) {
+            if (p < 0 || q < 0 || n < 0 || p + n > a.length || q + n > b.length) {
+                return false;
+            }
+            for (int k = 0; k < n; k++) {
+                if (a[p + k] != b[q + k]) {
+                    return false;
+                }
+            }
+            return true;
+        }
+
+        /** Gives the variables of t, that have none yet, the next names; tells how many names there are. */
+        static int name(int[] names, int known, int[] t, int n) {
+            int next = known;
+            for (int k = 0; k < n && k < t.length; k++) {
+                int v = -1 - t[k];
+                if (v >= 0 && v < names.length && names[v] < 0) {
+                    names[v] = next;
+                    next++;
+                }
+            }
+            return next;
+        }
+
+        /** What has no name becomes x0, as the uses of a chain need it. */
+        static void rename(int[] t, int from, int to, int[] names) {
+            for (int k = from; k < to && k < t.length; k++) {
+                int v = k < 0 ? NONE : -1 - t[k];
+                if (v >= 0 && v < names.length) {
+                    t[k] = -1 - (names[v] < 0 ? 0 : names[v]);
+                }
+            }
+        }
+
+        static int[] named(Word w, int[] names) {
+            int[] t = Arrays.copyOf(w.at, w.size < 0 ? 0 : w.size);
+            rename(t, 0, t.length, names);
+            return t;
+        }
+
+        static int greatestVariable(int[] t, int n) {
+            int greatest = NONE;
+            for (int k = 0; k < n && k < t.length; k++) {
+                greatest = Math.max(greatest, -1 - t[k]);
+            }
+            return greatest;
+        }
+
+        static int deepest(int[] t, int n, int[] open) {
+            int depth = 0;
+            int most = 0;
+            for (int k = 0; k < n && k < t.length; k++) {
+                int count = t[k] < 0 ? 0 : t[k] % 3;
+                most = Math.max(most, depth + 1);
+                if (count > 0 && depth < open.length) {
+                    open[depth] = count;
+                    depth++;
+                } else {
+                    depth = closed(open, depth);
+                }
+            }
+            return most;
+        }
+
+        /** How many symbols still wait for arguments behind one that waits for none. */
+        private static int closed(int[] open, int depth) {
+            int d = depth;
+            while (d > 0 && d <= open.length) {
+                open[d - 1]--;
+                if (open[d - 1] > 0) {
+                    break;
+                }
+                d--;
+            }
+            return d;
+        }
+
+        static void write(StringBuilder out, int[] t, int from, int to, int[] open) {
+            int depth = 0;
+            for (int k = from; k < to && k >= 0 && k < t.length; k++) {
+                int c = t[k];
+                if (c < 0) {
+                    out.append('x').append(-1 - c);
+                } else {
+                    out.append((char) ('a' + c / 3));
+                }
+                if (c >= 0 && c % 3 > 0 && depth < open.length) {
+                    out.append('(');
+                    open[depth] = c % 3;
+                    depth++;
+                } else {
+                    int left = closed(open, depth);
+                    for (int d = left; d < depth; d++) {
+                        out.append(')');
+                    }
+                    if (left > 0) {
+                        out.append(',');
+                    }
+                    depth = left;
+                }
+            }
+        }
+    }
+
+    /** Two sides: an equation (with a number), a rule, an unturned one, or what waits. */
+    private static final class Pair {
+        final int[] left;
+        final int[] right;
+        final int variables;
+        final int number;
+        final int uses;
+        final Chain chain;
+        int age;
+
+        Pair(int[] left, int[] right, int variables, int number, int uses, Chain chain) {
+            this.left = left;
+            this.right = right;
+            this.variables = variables;
+            this.number = number;
+            this.uses = uses;
+            this.chain = chain;
+        }
+    }
+
+    /** A conditional rule. */
+    private static final class Guarded {
+        final int[] left;
+        final int[] right;
+        final int[] one;
+        final int[] other;
+
+        Guarded(int[] left, int[] right, int[] one, int[] other) {
+            this.left = left;
+            this.right = right;
+            this.one = one;
+            this.other = other;
+        }
+    }
+
+    /**
+     * A row of uses. Each is written as: its length, 1 if it is back, how many arguments lead to its place,
+     * these, how many variables it puts something for, for each the size and the term, its length again
+     * (so that a chain can be walked from both ends).
+     */
+    private static final class Chain {
+        final Pair[] refs;
+        final int[] code;
+        int uses;
+        int length;
+        private int head;
+
+        Chain(int mostUses, int most) {
+            refs = new Pair[mostUses < 0 ? 0 : mostUses];
+            code = new int[most < 0 ? 0 : most];
+        }
+
+        void clear() {
+            uses = 0;
+            length = 0;
+        }
+
+        void cell(int v) {
+            if (length >= 0 && length < code.length) {
+                code[length] = v;
+                length++;
+            }
+        }
+
+        int at(int k) {
+            return k >= 0 && k < code.length ? code[k] : 0;
+        }
+
+        /** Begins a use at a place of t; what it puts for each variable has to follow. */
+        void opens(Pair pair, boolean isBack, int[] t, int place) {
+            if (uses < refs.length) {
+                refs[uses] = pair;
+                uses++;
+            }
+            head = length;
+            cell(0);
+            cell(isBack ? 1 : 0);
+            cell(0);
+            int p = 0;
+            while (p < place) {
+                int argument = 0;
+                int child = p + 1;
+                int next = Terms.behind(t, child);
+                while (next <= place && argument < 2) {
+                    child = next;
+                    next = Terms.behind(t, child);
+                    argument++;
+                }
+                cell(argument);
+                p = child;
+            }
+            if (head + 2 < code.length) {
+                code[head + 2] = length - head - 3;
+            }
+            cell(pair.variables);
+        }
+
+        void closes() {
+            int n = length - head + 1;
+            cell(n);
+            if (head >= 0 && head < code.length) {
+                code[head] = n;
+            }
+        }
+
+        void puts(int[] t, int from, int to) {
+            cell(to - from);
+            for (int k = from; k < to && k >= 0 && k < t.length; k++) {
+                cell(t[k]);
+            }
+        }
+
+        /** A step of w at a place, by the binding that made it. */
+        void addStep(Pair pair, boolean isBack, Word w, int place, int[] bound) {
+            opens(pair, isBack, w.at, place);
+            for (int v = 0; v < pair.variables; v++) {
+                int p = v < bound.length ? bound[v] : NONE;
+                if (p >= 0) {
+                    puts(w.at, p, Terms.behind(w.at, p));
+                } else {
+                    cell(1);
+                    cell(-1);
+                }
+            }
+            closes();
+        }
+
+        void addAll(Chain c) {
+            for (int k = 0; k < c.uses && k < c.refs.length && uses < refs.length; k++) {
+                refs[uses] = c.refs[k];
+                uses++;
+            }
+            for (int k = 0; k < c.length; k++) {
+                cell(c.at(k));
+            }
+        }
+
+        /** Backwards and turned. */
+        void addTurned(Chain c) {
+            int end = c.length;
+            for (int k = c.uses - 1; k >= 0 && k < c.refs.length && uses < refs.length; k--) {
+                int from = end - c.at(end - 1);
+                refs[uses] = c.refs[k];
+                uses++;
+                for (int q = from; q < end; q++) {
+                    cell(q == from + 1 ? 1 - c.at(q) : c.at(q));
+                }
+                end = from;
+            }
+        }
+
+        void rename(int[] names) {
+            int p = 0;
+            for (int k = 0; k < uses; k++) {
+                int q = p + 3 + at(p + 2);
+                int n = at(q);
+                q++;
+                for (int v = 0; v < n; v++) {
+                    int size = at(q);
+                    Terms.rename(code, q + 1, q + 1 + size, names);
+                    q += 1 + size;
+                }
+                p += at(p);
+            }
+        }
+
+        Chain packed() {
+            Chain c = new Chain(uses, length);
+            c.addAll(this);
+            return c;
+        }
+
+        /** How many uses it has, brought back. */
+        int broughtBack() {
+            int sum = 0;
+            for (int k = 0; k < uses && k < refs.length; k++) {
+                Pair p = refs[k];
+                sum = Math.min(MANY_USES + 1, sum + (p == null ? 0 : p.uses));
+            }
+            return sum;
+        }
+    }
+
+    /** All rows but the stack and the symbols. */
+    private static final class Rows {
+        final Pair[] equations = new Pair[10];
+        int equationCount;
+        final Pair[] rules = new Pair[14];
+        int ruleCount;
+        final Pair[] unturned = new Pair[6];
+        int unturnedCount;
+        final Pair[] waiting = new Pair[120];
+        int waitCount;
+        final Guarded[] guarded = new Guarded[4];
+        int guardedCount;
+        int nextAge;
+        int dropped;
+        int made;
+        private final Pair[] keptRules = new Pair[14];
+        private int keptRuleCount;
+        private final Pair[] keptWaiting = new Pair[120];
+        private int keptWaitCount;
+        private int keptAge;
+        /** The next step is known to be refused; so it isn't tried again before something is told. */
+        boolean isStuck;
+
+        /** What waits is held in the order in which it is taken. */
+        boolean waits(Pair pair) {
+            if (waitCount < 0 || waitCount >= waiting.length) {
+                return false;
+            }
+            pair.age = nextAge;
+            nextAge++;
+            int k = waitCount;
+            while (k > 0 && isAhead(pair, waiting[k - 1])) {
+                waiting[k] = waiting[k - 1];
+                k--;
+            }
+            waiting[k] = pair;
+            waitCount++;
+            return true;
+        }
+
+        /** A new one is never ahead of one with the same size. */
+        private static boolean isAhead(Pair young, Pair old) {
+            return old != null && young.left.length + young.right.length < old.left.length + old.right.length;
+        }
+
+        Pair takeNext() {
+            Pair next = waitCount > 0 ? waiting[0] : null;
+            if (next != null) {
+                waitCount--;
+                System.arraycopy(waiting, 1, waiting, 0, waiting.length - 1);
+            }
+            return next;
+        }
+
+        void removeRule(int i) {
+            for (int k = i; k >= 0 && k + 1 < ruleCount && k + 1 < rules.length; k++) {
+                rules[k] = rules[k + 1];
+            }
+            ruleCount--;
+        }
+
+        void keep() {
+            System.arraycopy(rules, 0, keptRules, 0, rules.length);
+            System.arraycopy(waiting, 0, keptWaiting, 0, waiting.length);
+            keptRuleCount = ruleCount;
+            keptWaitCount = waitCount;
+            keptAge = nextAge;
+        }
+
+        void bringBack() {
+            System.arraycopy(keptRules, 0, rules, 0, rules.length);
+            System.arraycopy(keptWaiting, 0, waiting, 0, waiting.length);
+            ruleCount = keptRuleCount;
+            waitCount = keptWaitCount;
+            nextAge = keptAge;
+        }
+
+        void forget() {
+            ruleCount = 0;
+            unturnedCount = 0;
+            waitCount = 0;
+            guardedCount = 0;
+            isStuck = false;
+        }
+
+        /** A new equation of the sides a and b; it waits. */
+        int told(Word a, Word b, int[] names) {
+            Arrays.fill(names, NONE);
+            int known = Terms.name(names, 0, a.at, a.size);
+            known = Terms.name(names, known, b.at, b.size);
+            int n = equationCount;
+            if (n < 0 || n >= equations.length) {
+                return NONE;
+            }
+            Pair pair = new Pair(Terms.named(a, names), Terms.named(b, names), known, n, 1, null);
+            equations[n] = pair;
+            equationCount++;
+            isStuck = false;
+            waits(pair);
+            return n;
+        }
+    }
+
+    /** The two orders. */
+    private static final class Orders {
+        int which;
+        final int[] weights = new int[SYMBOLS];
+        private final byte[] found = new byte[(MOST_SIZE + 1) * COMES];
+        private final int[] ends = new int[MOST_SIZE + 2];
+        private final int[] otherEnds = new int[COMES + 2];
+        private final int[] often = new int[NAMES];
+
+        /** Whether the part of s from one place up to another is greater than t. */
+        boolean isGreater(int order, int[] s, int from, int to, int[] t, int n) {
+            return order == 0 ? isByPaths(s, from, to, t, n) : isByWeights(s, from, to, t, n);
+        }
+
+        boolean isOver(int order, Word s, Word t) {
+            return isGreater(order, s.at, 0, s.size, t.at, t.size);
+        }
+
+        private boolean isByPaths(int[] s, int from, int to, int[] t, int n) {
+            int m = to - from;
+            if (from < 0 || m < 1 || n < 1 || to > s.length || n > t.length) {
+                return false;
+            }
+            if (m > MOST_SIZE || n > COMES || m * n > found.length) {
+                return false;
+            }
+            measure(s, from, m, ends);
+            measure(t, 0, n, otherEnds);
+            for (int i = m - 1; i >= 0; i--) {
+                for (int j = n - 1; j >= 0; j--) {
+                    found[i * n + j] = (byte) pathsAt(s[from + i], t[j], i, j, n);
+                }
+            }
+            return found[0] == 1;
+        }
+
+        /** For each place the place behind its part. */
+        private static void measure(int[] t, int from, int n, int[] ends) {
+            for (int k = n - 1; k >= 0 && k < ends.length; k--) {
+                int c = from + k < t.length ? t[from + k] : NONE;
+                int e = k + 1;
+                for (int a = c < 0 ? 0 : c % 3; a > 0 && e < ends.length && e < n; a--) {
+                    e = ends[e];
+                }
+                ends[k] = e;
+            }
+        }
+
+        /** 2 if the parts at i and j are alike, 1 if that at i is greater; all behind both is known. */
+        private int pathsAt(int c, int d, int i, int j, int n) {
+            if (c < 0) {
+                return c == d ? 2 : 0;
+            }
+            int a = i + 1;
+            for (int k = c % 3; k > 0; k--) {
+                if (known(a, j, n) != 0) {
+                    return 1;
+                }
+                a = a < ends.length ? ends[a] : a;
+            }
+            if (d < 0 || c < d) {
+                return 0;
+            }
+            return c == d ? pathsAlike(c % 3, i, j, n) : pathsOver(d % 3, i, j, n);
+        }
+
+        private int pathsOver(int count, int i, int j, int n) {
+            int b = j + 1;
+            for (int k = count; k > 0; k--) {
+                if (known(i, b, n) != 1) {
+                    return 0;
+                }
+                b = b < otherEnds.length ? otherEnds[b] : b;
+            }
+            return 1;
+        }
+
+        private int pathsAlike(int count, int i, int j, int n) {
+            int a = i + 1;
+            int b = j + 1;
+            int first = 2;
+            for (int k = count; k > 0 && first == 2; k--) {
+                first = known(a, b, n);
+                a = a < ends.length ? ends[a] : a;
+                b = b < otherEnds.length ? otherEnds[b] : b;
+            }
+            return first == 1 ? pathsOver(count, i, j, n) : first;
+        }
+
+        private int known(int i, int j, int n) {
+            int k = i * n + j;
+            return k >= 0 && k < found.length ? found[k] : 0;
+        }
+
+        private boolean isByWeights(int[] s, int from, int to, int[] t, int n) {
+            int p = from;
+            int end = to;
+            int q = 0;
+            int otherEnd = n;
+            while (p < end) {
+                int more = surplus(s, p, end, t, q, otherEnd);
+                if (more != 0) {
+                    return more > 0;
+                }
+                if (p < 0 || p >= s.length || q >= t.length || s[p] < 0 || t[q] < 0) {
+                    return false;
+                }
+                if (s[p] != t[q]) {
+                    return s[p] > t[q];
+                }
+                int left = s[p] % 3;
+                p++;
+                q++;
+                while (left > 0 && Terms.isAlike(s, p, t, q, Terms.behind(s, p) - p)) {
+                    q += Terms.behind(s, p) - p;
+                    p = Terms.behind(s, p);
+                    left--;
+                }
+                if (left == 0) {
+                    return false;
+                }
+                end = Terms.behind(s, p);
+                otherEnd = Terms.behind(t, q);
+            }
+            return false;
+        }
+
+        /** How much more weight the one has; less than nothing too, if a variable stands more often in the other. */
+        private int surplus(int[] s, int p, int end, int[] t, int q, int otherEnd) {
+            Arrays.fill(often, 0);
+            int more = weightOf(s, p, end, 1) - weightOf(t, q, otherEnd, -1);
+            for (int v = 0; v < often.length; v++) {
+                if (often[v] < 0) {
+                    return -1;
+                }
+            }
+            return more;
+        }
+
+        private int weightOf(int[] t, int from, int to, int sign) {
+            int sum = 0;
+            for (int k = from; k < to && k >= 0 && k < t.length; k++) {
+                int v = -1 - t[k];
+                if (v >= 0) {
+                    sum++;
+                    if (v < often.length) {
+                        often[v] += sign;
+                    }
+                } else if (t[k] / 3 < weights.length) {
+                    sum += weights[t[k] / 3];
+                }
+            }
+            return sum;
+        }
+
+        int weightOf(Word w) {
+            return weightOf(w.at, 0, w.size, 1);
+        }
+    }
+
+    /** For each variable of a pattern the place of what is put for it. */
+    private static final class Binding {
+        final int[] bound = new int[NAMES];
+
+        /** Whether the pattern matches the part of w at p. */
+        boolean takes(int[] pattern, int n, Word w, int p) {
+            if (p < 0 || p >= w.size || p >= w.at.length || n < 1 || n > pattern.length) {
+                return false;
+            }
+            if (pattern[0] >= 0 && pattern[0] != w.at[p]) {
+                return false;
+            }
+            Arrays.fill(bound, NONE);
+            int[] t = w.at;
+            int q = p;
+            for (int k = 0; k < n; k++) {
+                int v = -1 - pattern[k];
+                if (q >= w.size || q >= t.length || v >= bound.length) {
+                    return false;
+                }
+                if (v < 0) {
+                    if (t[q] != pattern[k]) {
+                        return false;
+                    }
+                    q++;
+                } else {
+                    int end = Terms.behind(t, q);
+                    if (bound[v] < 0) {
+                        bound[v] = q;
+                    } else if (!Terms.isAlike(t, q, t, bound[v], end - q)) {
+                        return false;
+                    }
+                    q = end;
+                }
+            }
+            return true;
+        }
+
+        /** Adds a side to out, with parts of w for its variables; not if one has none, or out gets too large. */
+        boolean makes(int[] side, int n, Word w, Word out, int most) {
+            for (int k = 0; k < n && k < side.length; k++) {
+                int v = -1 - side[k];
+                if (v < 0) {
+                    if (!out.adds(side, k, k + 1, most)) {
+                        return false;
+                    }
+                } else {
+                    int p = v < bound.length ? bound[v] : NONE;
+                    if (p < 0 || !out.adds(w.at, p, Terms.behind(w.at, p), most)) {
+                        return false;
+                    }
+                }
+            }
+            return true;
+        }
+    }
+
+    /** Steps and ends. A depth of PLAIN is without conditional rules. */
+    private static final class Stepper {
+        private final Rows rows;
+        private final Orders orders;
+        private final Binding binding;
+        private final Word comes = new Word(COMES);
+        private final Word spare = new Word(MOST_SIZE + 1);
+        private final Word[] ones = new Word[DEPTH];
+        private final Word[] others = new Word[DEPTH];
+        private final boolean[] isRedex = new boolean[MOST_SIZE + 1];
+        private final Memo memo = new Memo();
+        private int fuel;
+        /** The use that was found last. */
+        private Pair pair;
+        private boolean isBack;
+        private int[] side;
+
+        Stepper(Rows rows, Orders orders, Binding binding) {
+            this.rows = rows;
+            this.orders = orders;
+            this.binding = binding;
+            for (int k = 0; k < DEPTH; k++) {
+                ones[k] = new Word(MOST_SIZE + 1);
+                others[k] = new Word(MOST_SIZE + 1);
+            }
+        }
+
+        /** To be called ahead of each call of the face that is full. */
+        void refresh() {
+            fuel = FUEL;
+            if (rows.guardedCount > 0) {
+                memo.clear();
+            }
+        }
+
+        /** Looks for the first plain use at p. */
+        boolean isPlain(Word w, int p) {
+            for (int k = 0; k < rows.ruleCount && k < rows.rules.length; k++) {
+                Pair rule = rows.rules[k];
+                if (rule != null && binding.takes(rule.left, rule.left.length, w, p)) {
+                    pair = rule;
+                    isBack = false;
+                    side = rule.right;
+                    return true;
+                }
+            }
+            for (int k = 0; k < rows.unturnedCount && k < rows.unturned.length; k++) {
+                Pair two = rows.unturned[k];
+                if (two != null && (isTurning(two, two.left, two.right, w, p)
+                        || isTurning(two, two.right, two.left, w, p))) {
+                    return true;
+                }
+            }
+            return false;
+        }
+
+        private boolean isTurning(Pair two, int[] goes, int[] come, Word w, int p) {
+            if (!binding.takes(goes, goes.length, w, p)) {
+                return false;
+            }
+            comes.size = 0;
+            if (!binding.makes(come, come.length, w, comes, COMES)) {
+                return false;
+            }
+            int to = Terms.behind(w.at, p);
+            if (!orders.isGreater(orders.which, w.at, p, to, comes.at, comes.size)) {
+                return false;
+            }
+            pair = two;
+            isBack = goes == two.right;
+            side = come;
+            return true;
+        }
+
+        /** Looks for the first use at p: 1 if there is one, 0 if there is none. */
+        int useAt(Word w, int p, int depth) {
+            if (isPlain(w, p)) {
+                return 1;
+            }
+            if (depth == PLAIN) {
+                return 0;
+            }
+            fuel--;
+            if (fuel < 0) {
+                return BROKEN;
+            }
+            for (int k = 0; k < rows.guardedCount && k < rows.guarded.length; k++) {
+                Guarded rule = rows.guarded[k];
+                if (rule == null || !binding.takes(rule.left, rule.left.length, w, p)) {
+                    continue;
+                }
+                int holds = holds(rule, w, depth);
+                if (holds == BROKEN) {
+                    return BROKEN;
+                }
+                // The conditions have left other things bound.
+                if (holds == 1 && binding.takes(rule.left, rule.left.length, w, p)) {
+                    pair = null;
+                    isBack = false;
+                    side = rule.right;
+                    return 1;
+                }
+            }
+            return 0;
+        }
+
+        private int holds(Guarded rule, Word w, int depth) {
+            if (depth < 0 || depth >= DEPTH) {
+                return BROKEN;
+            }
+            Word one = ones[depth];
+            Word other = others[depth];
+            if (one == null || other == null) {
+                return BROKEN;
+            }
+            one.size = 0;
+            other.size = 0;
+            if (!binding.makes(rule.one, rule.one.length, w, one, MOST_SIZE)
+                    || !binding.makes(rule.other, rule.other.length, w, other, MOST_SIZE)) {
+                return BROKEN;
+            }
+            if (endInside(one, depth + 1) == BROKEN || endInside(other, depth + 1) == BROKEN) {
+                return BROKEN;
+            }
+            return one.isLike(other) ? 1 : 0;
+        }
+
+        /** The full end of what a condition is of; what was found out is noted, as it is asked for again and again. */
+        private int endInside(Word w, int depth) {
+            if (memo.isKnown(w)) {
+                return 0;
+            }
+            int mark = memo.begin(w);
+            int p = 0;
+            int count = 0;
+            while (p < w.size) {
+                int found = useAt(w, p, depth);
+                if (found == BROKEN || found == 1 && (count >= MOST_STEPS || !isMade(w, p))) {
+                    return BROKEN;
+                }
+                count += found;
+                p = found == 1 ? 0 : p + 1;
+            }
+            memo.add(mark, w);
+            return 0;
+        }
+
+        /** Makes the step of the use that was found at p. */
+        boolean isMade(Word w, int p) {
+            int[] come = side;
+            spare.size = 0;
+            if (come == null || !spare.adds(w.at, 0, p, MOST_SIZE)) {
+                return false;
+            }
+            if (!binding.makes(come, come.length, w, spare, MOST_SIZE)) {
+                return false;
+            }
+            if (!spare.adds(w.at, Terms.behind(w.at, p), w.size, MOST_SIZE)) {
+                return false;
+            }
+            w.set(spare.at, spare.size);
+            return true;
+        }
+
+        /** The place of the next step; then the use is found. */
+        int pick(Word w, int strategy, int depth) {
+            if (strategy != 0) {
+                int all = lookAtAll(w, depth);
+                if (all == BROKEN) {
+                    return BROKEN;
+                }
+                int p = all == 0 ? NONE : chosen(w, strategy);
+                return p >= 0 && useAt(w, p, depth) != 1 ? BROKEN : p;
+            }
+            for (int p = 0; p < w.size; p++) {
+                int found = useAt(w, p, depth);
+                if (found != 0) {
+                    return found == 1 ? p : BROKEN;
+                }
+            }
+            return NONE;
+        }
+
+        /** Notes which places are redexes; tells how many. */
+        int lookAtAll(Word w, int depth) {
+            int count = 0;
+            for (int p = 0; p < w.size && p < isRedex.length; p++) {
+                int found = useAt(w, p, depth);
+                if (found == BROKEN) {
+                    return BROKEN;
+                }
+                isRedex[p] = found == 1;
+                count += found;
+            }
+            return count;
+        }
+
+        private int chosen(Word w, int strategy) {
+            int best = NONE;
+            int over = 0;
+            for (int p = 0; p < w.size && p < isRedex.length; p++) {
+                if (!isRedex[p]) {
+                    continue;
+                }
+                if (strategy == 3) {
+                    best = p;
+                } else if (strategy == 2) {
+                    if (p >= over) {
+                        best = p;
+                        over = Terms.behind(w.at, p);
+                    }
+                } else if (best < 0 || p < Terms.behind(w.at, best)) {
+                    // Only what lies within takes the place of the smaller one.
+                    best = p;
+                } else {
+                    break;
+                }
+            }
+            return best;
+        }
+
+        /** Takes w to its end; tells by how many steps. Its uses are noted in trace, if there is one. */
+        int toEnd(Word w, int strategy, int depth, Chain trace) {
+            if (trace != null) {
+                trace.clear();
+            }
+            for (int count = 0; count <= MOST_STEPS; count++) {
+                int p = pick(w, strategy, depth);
+                if (p < 0) {
+                    return p == NONE ? count : BROKEN;
+                }
+                if (count == MOST_STEPS) {
+                    return BROKEN;
+                }
+                if (trace != null && pair != null) {
+                    trace.addStep(pair, isBack, w, p, binding.bound);
+                }
+                if (!isMade(w, p)) {
+                    return BROKEN;
+                }
+            }
+            return BROKEN;
+        }
+    }
+
+    /** Ends that were found, for the time of one call. */
+    private static final class Memo {
+        private final int[] heads = new int[1024];
+        private final int[] notes = new int[60000];
+        private int size;
+
+        void clear() {
+            Arrays.fill(heads, NONE);
+            size = 0;
+        }
+
+        private static int hash(Word w) {
+            int h = w.size;
+            for (int k = 0; k < w.size && k < w.at.length; k++) {
+                h = h * 31 + w.at[k];
+            }
+            return (h ^ (h >>> 10)) & 1023;
+        }
+
+        /** Replaces w by its end, if that is known. A note is: the next one, both sizes, both terms. */
+        boolean isKnown(Word w) {
+            int k = heads[hash(w)];
+            for (int n = 0; n < notes.length && k >= 0 && k + 2 < notes.length; n++) {
+                int from = k + 3;
+                if (notes[k + 1] == w.size && Terms.isAlike(notes, from, w.at, 0, w.size)) {
+                    int to = from + w.size;
+                    w.size = 0;
+                    return w.adds(notes, to, to + notes[k + 2], MOST_SIZE);
+                }
+                k = notes[k];
+            }
+            return false;
+        }
+
+        /** Keeps what w is now; NONE if there is no room for that. */
+        int begin(Word w) {
+            int k = size;
+            if (k + 3 + 2 * MOST_SIZE + 2 > notes.length) {
+                return NONE;
+            }
+            notes[k] = hash(w);
+            notes[k + 1] = w.size;
+            for (int i = 0; i < w.size && i < w.at.length && k + 3 + i < notes.length; i++) {
+                notes[k + 3 + i] = w.at[i];
+            }
+            size = k + 3 + w.size + MOST_SIZE;
+            return k;
+        }
+
+        void add(int mark, Word w) {
+            if (mark < 0 || mark + 2 >= notes.length) {
+                return;
+            }
+            int head = notes[mark] & 1023;
+            int from = mark + 3 + notes[mark + 1];
+            for (int i = 0; i < w.size && i < w.at.length && from + i >= 0 && from + i < notes.length; i++) {
+                notes[from + i] = w.at[i];
+            }
+            notes[mark + 2] = w.size;
+            notes[mark] = heads[head];
+            heads[head] = mark;
+        }
+    }
+
+    /** Common instances, and the peaks of overlaps. */
+    private static final class Meeting {
+        private final int[] t = new int[4 * MOST_SIZE + 8];
+        private int size;
+        private final int[] bound = new int[NAMES];
+        private final int[] work = new int[4096];
+        private final int[] walk = new int[4096];
+        private int fuel;
+        final Word peak = new Word(MOST_SIZE + 1);
+        final Word left = new Word(MOST_SIZE + 1);
+        final Word right = new Word(MOST_SIZE + 1);
+
+        private int load(int[] term, int n, int shift) {
+            int from = size;
+            for (int k = 0; k < n && k < term.length && size < t.length; k++) {
+                t[size] = term[k] < 0 ? term[k] - shift : term[k];
+                size++;
+            }
+            return from;
+        }
+
+        /** The common instance of two words comes into peak, not named. */
+        int meets(Word a, Word b, boolean isApart) {
+            size = 0;
+            int p = load(a.at, a.size, 0);
+            int q = load(b.at, b.size, isApart ? APART : 0);
+            int found = worked(p, q);
+            peak.size = 0;
+            if (found == 1 && !isAdded(p, q, peak)) {
+                return BROKEN;
+            }
+            return found;
+        }
+
+        private int worked(int p, int q) {
+            Arrays.fill(bound, NONE);
+            fuel = FUEL;
+            work[0] = p;
+            work[1] = q;
+            int n = 2;
+            while (n >= 2 && fuel > 0) {
+                fuel--;
+                int a = resolved(work[n - 2]);
+                int b = resolved(work[n - 1]);
+                n -= 2;
+                if (a < 0 || b < 0 || n + 4 > work.length) {
+                    return BROKEN;
+                }
+                if (t[a] < 0 || t[b] < 0) {
+                    int put = t[a] == t[b] ? 1 : t[a] < 0 ? bind(-1 - t[a], b) : bind(-1 - t[b], a);
+                    if (put != 1) {
+                        return put;
+                    }
+                } else if (t[a] != t[b]) {
+                    return CLASH;
+                } else {
+                    n = pushArguments(a, b, n);
+                }
+            }
+            return n == 0 ? 1 : BROKEN;
+        }
+
+        /** The first pair of arguments comes on top. */
+        private int pushArguments(int a, int b, int n) {
+            int count = t[a] % 3;
+            if (count == 2) {
+                work[n] = Terms.behind(t, a + 1);
+                work[n + 1] = Terms.behind(t, b + 1);
+            }
+            int k = count == 2 ? n + 2 : n;
+            if (count > 0) {
+                work[k] = a + 1;
+                work[k + 1] = b + 1;
+                k += 2;
+            }
+            return k;
+        }
+
+        /** Behind variables for which something was put; NONE if there is no such place. */
+        private int resolved(int p) {
+            int q = p;
+            for (int k = 0; k <= NAMES; k++) {
+                if (q < 0 || q >= size || q >= t.length) {
+                    return NONE;
+                }
+                int v = -1 - t[q];
+                if (v < 0 || v >= bound.length || bound[v] < 0) {
+                    return q;
+                }
+                q = bound[v];
+            }
+            return NONE;
+        }
+
+        private int bind(int v, int p) {
+            if (v < 0 || v >= bound.length) {
+                return BROKEN;
+            }
+            int n = 1;
+            walk[0] = p;
+            while (n > 0 && fuel > 0) {
+                fuel--;
+                n--;
+                int q = resolved(walk[n]);
+                if (q < 0 || n + 2 > walk.length) {
+                    return BROKEN;
+                }
+                if (t[q] == -1 - v) {
+                    return RING;
+                }
+                int count = t[q] < 0 ? 0 : t[q] % 3;
+                if (count == 2) {
+                    walk[n] = Terms.behind(t, q + 1);
+                    n++;
+                }
+                if (count > 0) {
+                    walk[n] = q + 1;
+                    n++;
+                }
+            }
+            if (n > 0) {
+                return BROKEN;
+            }
+            bound[v] = p;
+            return 1;
+        }
+
+        /** Adds what stands from one place up to another, with all that was put for variables. */
+        private boolean isAdded(int from, int to, Word out) {
+            for (int p = from; p < to && p >= 0 && p < t.length; p++) {
+                if (t[p] >= 0) {
+                    if (!out.adds(t, p, p + 1, MOST_SIZE)) {
+                        return false;
+                    }
+                } else if (!isAddedWhole(p, out)) {
+                    return false;
+                }
+            }
+            return true;
+        }
+
+        private boolean isAddedWhole(int p, Word out) {
+            int n = 1;
+            walk[0] = p;
+            while (n > 0 && n + 1 < walk.length) {
+                n--;
+                int q = resolved(walk[n]);
+                if (q < 0 || !out.adds(t, q, q + 1, MOST_SIZE)) {
+                    return false;
+                }
+                int count = t[q] < 0 ? 0 : t[q] % 3;
+                if (count == 2) {
+                    walk[n] = Terms.behind(t, q + 1);
+                    n++;
+                }
+                if (count > 0) {
+                    walk[n] = q + 1;
+                    n++;
+                }
+            }
+            return n == 0;
+        }
+
+        /** The overlap of the rule a into the rule b at p: 1 if there is one; peak, left and right are not named. */
+        int crosses(Pair a, Pair b, int p) {
+            if (a == null || b == null || p < 0 || p >= b.left.length) {
+                return 0;
+            }
+            if (b.left[p] < 0 || a.left.length < 1 || a.left[0] != b.left[p]) {
+                return 0;
+            }
+            size = 0;
+            int over = load(a.left, a.left.length, APART);
+            int under = load(b.left, b.left.length, 0);
+            int comes = load(a.right, a.right.length, APART);
+            int goes = load(b.right, b.right.length, 0);
+            int found = worked(over, under + p);
+            if (found != 1) {
+                return found == BROKEN ? BROKEN : 0;
+            }
+            int behind = Terms.behind(b.left, p);
+            peak.size = 0;
+            left.size = 0;
+            right.size = 0;
+            return isAdded(under, comes, peak)
+                    && isAdded(under, under + p, left) && isAdded(comes, goes, left)
+                    && isAdded(under + behind, comes, left)
+                    && isAdded(goes, size, right) ? 1 : BROKEN;
+        }
+
+        /** Writes what is put for the variables of a rule of the overlap into a chain. */
+        void putsInto(Chain chain, Pair rule, int shift, Word spare) {
+            for (int v = 0; v < rule.variables; v++) {
+                spare.size = 0;
+                // The place behind all that was loaded holds the variable by itself.
+                if (size < t.length) {
+                    t[size] = -1 - v - shift;
+                    size++;
+                    isAddedWhole(size - 1, spare);
+                    size--;
+                }
+                chain.puts(spare.at, 0, spare.size);
+            }
+        }
+    }
+
+    /** The row of overlaps. */
+    private static final class Overlaps {
+        private final Rows rows;
+        private final Stepper stepper;
+        private final Meeting meeting;
+        final Word peak = new Word(MOST_SIZE + 1);
+        final Word left = new Word(MOST_SIZE + 1);
+        final Word right = new Word(MOST_SIZE + 1);
+        private final int[] names = new int[NAMES];
+
+        Overlaps(Rows rows, Stepper stepper, Meeting meeting) {
+            this.rows = rows;
+            this.stepper = stepper;
+            this.meeting = meeting;
+        }
+
+        /** Makes the whole row and keeps the one that is wanted; tells how many there are. */
+        int made(int wanted) {
+            int count = 0;
+            for (int i = 0; i < rows.ruleCount && i < rows.rules.length; i++) {
+                for (int j = 0; j < rows.ruleCount && j < rows.rules.length; j++) {
+                    Pair under = rows.rules[j];
+                    int n = under == null ? 0 : under.left.length;
+                    for (int p = i < j ? 0 : 1; p < n; p++) {
+                        int found = meeting.crosses(rows.rules[i], under, p);
+                        if (found == BROKEN) {
+                            return BROKEN;
+                        }
+                        if (found == 1 && count == wanted) {
+                            keep();
+                        }
+                        count += found;
+                    }
+                }
+            }
+            return count;
+        }
+
+        private void keep() {
+            peak.set(meeting.peak.at, meeting.peak.size);
+            left.set(meeting.left.at, meeting.left.size);
+            right.set(meeting.right.at, meeting.right.size);
+            Arrays.fill(names, NONE);
+            Terms.name(names, 0, peak.at, peak.size);
+            Terms.rename(peak.at, 0, peak.size, names);
+            Terms.rename(left.at, 0, left.size, names);
+            Terms.rename(right.at, 0, right.size, names);
+        }
+
+        /** The first overlap whose ends are not alike. */
+        int firstMissing() {
+            if (made(NONE) == BROKEN) {
+                return BROKEN;
+            }
+            int count = 0;
+            for (int i = 0; i < rows.ruleCount && i < rows.rules.length; i++) {
+                for (int j = 0; j < rows.ruleCount && j < rows.rules.length; j++) {
+                    Pair under = rows.rules[j];
+                    int n = under == null ? 0 : under.left.length;
+                    for (int p = i < j ? 0 : 1; p < n; p++) {
+                        if (meeting.crosses(rows.rules[i], under, p) != 1) {
+                            continue;
+                        }
+                        keep();
+                        if (stepper.toEnd(left, 0, PLAIN, null) < 0 || stepper.toEnd(right, 0, PLAIN, null) < 0) {
+                            return BROKEN;
+                        }
+                        if (!left.isLike(right)) {
+                            return count;
+                        }
+                        count++;
+                    }
+                }
+            }
+            return NONE;
+        }
+    }
+
+    /** Steps of completion. */
+    private static final class Completion {
+        private final Rows rows;
+        private final Orders orders;
+        private final Stepper stepper;
+        private final Meeting meeting;
+        final Chain first = new Chain(MOST_STEPS + 1, 8000);
+        final Chain second = new Chain(MOST_STEPS + 1, 8000);
+        final Chain draft = new Chain(MOST_USES + 1, 45000);
+        private final Word left = new Word(MOST_SIZE + 1);
+        private final Word right = new Word(MOST_SIZE + 1);
+        private final Word spare = new Word(MOST_SIZE + 1);
+        private final Binding binding = new Binding();
+        private final int[] names = new int[NAMES];
+
+        Completion(Rows rows, Orders orders, Stepper stepper, Meeting meeting) {
+            this.rows = rows;
+            this.orders = orders;
+            this.stepper = stepper;
+            this.meeting = meeting;
+        }
+
+        /** A step of completion: what it told, NONE if nothing waits, BROKEN if it is refused. */
+        int advance() {
+            if (rows.waitCount == 0) {
+                return NONE;
+            }
+            if (rows.isStuck) {
+                return BROKEN;
+            }
+            rows.keep();
+            int told = taken(rows.takeNext());
+            if (told == BROKEN) {
+                rows.bringBack();
+                rows.isStuck = true;
+            } else {
+                rows.made++;
+                rows.dropped += told == 0 ? 1 : 0;
+            }
+            return told;
+        }
+
+        private int taken(Pair pair) {
+            if (pair == null) {
+                return BROKEN;
+            }
+            left.set(pair.left, pair.left.length);
+            right.set(pair.right, pair.right.length);
+            if (stepper.toEnd(left, 0, PLAIN, first) < 0 || stepper.toEnd(right, 0, PLAIN, second) < 0) {
+                return BROKEN;
+            }
+            if (left.isLike(right)) {
+                return 0;
+            }
+            if (orders.isOver(orders.which, left, right)) {
+                return isRule(turned(pair, false)) ? 1 : BROKEN;
+            }
+            if (orders.isOver(orders.which, right, left)) {
+                return isRule(turned(pair, true)) ? 2 : BROKEN;
+            }
+            if (rows.unturnedCount < 0 || rows.unturnedCount >= rows.unturned.length) {
+                return BROKEN;
+            }
+            rows.unturned[rows.unturnedCount] = turned(pair, false);
+            rows.unturnedCount++;
+            return 3;
+        }
+
+        /** The pair of both ends, named, with its chain. */
+        private Pair turned(Pair pair, boolean isExchanged) {
+            Word a = isExchanged ? right : left;
+            Word b = isExchanged ? left : right;
+            Arrays.fill(names, NONE);
+            int known = Terms.name(names, 0, a.at, a.size);
+            known = Terms.name(names, known, b.at, b.size);
+            int uses = Math.min(MANY_USES + 1, first.broughtBack() + pair.uses + second.broughtBack());
+            Chain chain = null;
+            if (uses <= MOST_USES) {
+                draft.clear();
+                draft.addTurned(isExchanged ? second : first);
+                addChain(pair, isExchanged);
+                draft.addAll(isExchanged ? first : second);
+                draft.rename(names);
+                chain = draft.packed();
+            }
+            return new Pair(Terms.named(a, names), Terms.named(b, names), known, NONE, uses, chain);
+        }
+
+        /** An equation that waits has no chain of its own: it is its own use. */
+        private void addChain(Pair pair, boolean isTurned) {
+            if (pair.number >= 0) {
+                draft.opens(pair, isTurned, pair.left, 0);
+                for (int v = 0; v < pair.variables; v++) {
+                    draft.cell(1);
+                    draft.cell(-1 - v);
+                }
+                draft.closes();
+            } else if (pair.chain != null && isTurned) {
+                draft.addTurned(pair.chain);
+            } else if (pair.chain != null) {
+                draft.addAll(pair.chain);
+            }
+        }
+
+        private boolean isRule(Pair rule) {
+            if (!isRoomMade(rule)) {
+                return false;
+            }
+            int n = rows.ruleCount;
+            if (n < 0 || n >= rows.rules.length) {
+                return false;
+            }
+            rows.rules[n] = rule;
+            rows.ruleCount++;
+            for (int k = 0; k < n; k++) {
+                if (!isShortened(k)) {
+                    return false;
+                }
+            }
+            return isOverlapped(n);
+        }
+
+        /** Old rules whose left sides the new one matches have to wait. */
+        private boolean isRoomMade(Pair rule) {
+            int k = 0;
+            while (k < rows.ruleCount && k < rows.rules.length) {
+                Pair old = rows.rules[k];
+                if (old != null && isWithin(rule, old)) {
+                    if (!rows.waits(old)) {
+                        return false;
+                    }
+                    rows.removeRule(k);
+                } else {
+                    k++;
+                }
+            }
+            return true;
+        }
+
+        private boolean isWithin(Pair rule, Pair old) {
+            spare.set(old.left, old.left.length);
+            for (int p = 0; p < spare.size; p++) {
+                if (binding.takes(rule.left, rule.left.length, spare, p)) {
+                    return true;
+                }
+            }
+            return false;
+        }
+
+        /** The right side of an old rule becomes its end. */
+        private boolean isShortened(int k) {
+            Pair old = k >= 0 && k < rows.rules.length ? rows.rules[k] : null;
+            if (old == null) {
+                return true;
+            }
+            right.set(old.right, old.right.length);
+            int count = stepper.toEnd(right, 0, PLAIN, second);
+            if (count <= 0) {
+                return count == 0;
+            }
+            int uses = Math.min(MANY_USES + 1, old.uses + second.broughtBack());
+            Chain chain = null;
+            if (uses <= MOST_USES && old.chain != null) {
+                draft.clear();
+                draft.addAll(old.chain);
+                draft.addAll(second);
+                chain = draft.packed();
+            }
+            int[] end = Arrays.copyOf(right.at, right.size < 0 ? 0 : right.size);
+            rows.rules[k] = new Pair(old.left, end, old.variables, NONE, uses, chain);
+            return true;
+        }
+
+        /** The overlaps of the last rule wait. */
+        private boolean isOverlapped(int last) {
+            for (int i = 0; i <= last && i < rows.rules.length; i++) {
+                for (int j = i < last ? last : 0; j <= last && j < rows.rules.length; j++) {
+                    Pair under = rows.rules[j];
+                    int n = under == null ? 0 : under.left.length;
+                    for (int p = i < j ? 0 : 1; p < n; p++) {
+                        int found = meeting.crosses(rows.rules[i], under, p);
+                        if (found == BROKEN) {
+                            return false;
+                        }
+                        if (found == 1 && !meeting.left.isLike(meeting.right)
+                                && !rows.waits(opened(rows.rules[i], under, p))) {
+                            return false;
+                        }
+                    }
+                }
+            }
+            return true;
+        }
+
+        /** The pair of an overlap, named, with its chain. */
+        private Pair opened(Pair over, Pair under, int p) {
+            Word a = meeting.left;
+            Word b = meeting.right;
+            Arrays.fill(names, NONE);
+            int known = Terms.name(names, 0, a.at, a.size);
+            known = Terms.name(names, known, b.at, b.size);
+            int uses = Math.min(MANY_USES + 1, over.uses + under.uses);
+            Chain chain = null;
+            if (uses <= MOST_USES) {
+                draft.clear();
+                draft.opens(over, true, under.left, p);
+                meeting.putsInto(draft, over, APART, spare);
+                draft.closes();
+                draft.opens(under, false, under.left, 0);
+                meeting.putsInto(draft, under, 0, spare);
+                draft.closes();
+                draft.rename(names);
+                chain = draft.packed();
+            }
+            return new Pair(Terms.named(a, names), Terms.named(b, names), known, NONE, uses, chain);
+        }
+    }
+
+    /**
+     * Walks a chain, brought back, from a term on. A frame is a chain that is walked: from which end, at which
+     * place of the whole term, and what is put for the variables (from where on in env: how many, then for each
+     * its size and the term). A variable for which nothing is put stays what it is.
+     */
+    private static final class Proof {
+        private static final int FRAMES = MOST_USES + 2;
+        private final Chain[] chains = new Chain[FRAMES];
+        private final int[] index = new int[FRAMES];
+        private final int[] position = new int[FRAMES];
+        private final boolean[] turned = new boolean[FRAMES];
+        private final int[] base = new int[FRAMES];
+        private final int[] from = new int[FRAMES];
+        private int depth;
+        private final int[] env = new int[LARGE];
+        private int top;
+        Word now = new Word(LARGE);
+        private Word next = new Word(LARGE);
+        /** The use that was made last. */
+        int number;
+        boolean isBack;
+        int place;
+        /** Whether its sides stood where they have to. */
+        boolean isRight;
+        boolean isBroken;
+
+        void start(int[] t, int n, Chain chain) {
+            now.set(t, n);
+            isBroken = false;
+            top = 0;
+            push(0);
+            chains[0] = chain;
+            index[0] = 0;
+            position[0] = 0;
+            turned[0] = false;
+            base[0] = 0;
+            from[0] = 0;
+            depth = 1;
+        }
+
+        private void push(int v) {
+            if (top >= 0 && top < env.length) {
+                env[top] = v;
+                top++;
+            } else {
+                isBroken = true;
+            }
+        }
+
+        /** Makes the next use of an equation; tells whether there was one. */
+        boolean isMoved() {
+            int fuel = FUEL;
+            while (depth > 0 && depth <= FRAMES && !isBroken && fuel > 0) {
+                fuel--;
+                int f = depth - 1;
+                Chain c = chains[f];
+                if (c == null || index[f] >= c.uses) {
+                    depth--;
+                    top = from[f];
+                    continue;
+                }
+                int k = turned[f] ? c.uses - 1 - index[f] : index[f];
+                int record = turned[f] ? position[f] - c.at(position[f] - 1) : position[f];
+                position[f] = turned[f] ? record : record + c.at(record);
+                index[f]++;
+                Pair pair = k >= 0 && k < c.refs.length ? c.refs[k] : null;
+                if (pair == null) {
+                    isBroken = true;
+                } else if (uses(pair, c, record, f)) {
+                    return true;
+                }
+            }
+            return false;
+        }
+
+        /** Makes a use of an equation, or opens the chain of anything else. */
+        private boolean uses(Pair pair, Chain c, int record, int f) {
+            boolean isTurned = (c.at(record + 1) == 1) != turned[f];
+            int p = reached(c, record, base[f]);
+            int block = top;
+            if (!isPut(c, record, from[f])) {
+                isBroken = true;
+                return false;
+            }
+            if (pair.number >= 0) {
+                number = pair.number;
+                isBack = isTurned;
+                place = p;
+                replace(isTurned ? pair.right : pair.left, isTurned ? pair.left : pair.right, p, block);
+                top = block;
+                return !isBroken;
+            }
+            Chain inner = pair.chain;
+            if (inner == null || depth >= FRAMES) {
+                isBroken = true;
+                return false;
+            }
+            chains[depth] = inner;
+            index[depth] = 0;
+            position[depth] = isTurned ? inner.length : 0;
+            turned[depth] = isTurned;
+            base[depth] = p;
+            from[depth] = block;
+            depth++;
+            return false;
+        }
+
+        /** The place to which the arguments of a use lead. */
+        private int reached(Chain c, int record, int start) {
+            int p = start;
+            int n = c.at(record + 2);
+            for (int k = 0; k < n; k++) {
+                int argument = c.at(record + 3 + k);
+                p++;
+                for (int a = 0; a < argument && a < 2; a++) {
+                    p = Terms.behind(now.at, p);
+                }
+            }
+            return p;
+        }
+
+        /** Writes what a use puts for variables, by what the chain around it puts. */
+        private boolean isPut(Chain c, int record, int outer) {
+            int q = record + 3 + c.at(record + 2);
+            int n = c.at(q);
+            q++;
+            push(n);
+            for (int v = 0; v < n && !isBroken; v++) {
+                int size = c.at(q);
+                int mark = top;
+                push(0);
+                for (int k = 1; k <= size; k++) {
+                    pushPut(c.at(q + k), outer);
+                }
+                if (mark < env.length) {
+                    env[mark] = top - mark - 1;
+                }
+                q += 1 + size;
+            }
+            return !isBroken;
+        }
+
+        private void pushPut(int code, int outer) {
+            int p = code < 0 ? found(-1 - code, outer) : NONE;
+            if (p < 0) {
+                push(code);
+                return;
+            }
+            for (int k = 1; k <= env[p] && p + k < env.length; k++) {
+                push(env[p + k]);
+            }
+        }
+
+        /** Where in env stands what is put for a variable; NONE if nothing is. */
+        private int found(int v, int outer) {
+            int n = outer >= 0 && outer < env.length ? env[outer] : 0;
+            if (v >= n) {
+                return NONE;
+            }
+            int p = outer + 1;
+            for (int k = 0; k < v && p >= 0 && p < env.length; k++) {
+                p += 1 + env[p];
+            }
+            return p >= 0 && p < env.length ? p : NONE;
+        }
+
+        /** Puts the one side for the other at p. */
+        private void replace(int[] goes, int[] comes, int p, int block) {
+            next.size = 0;
+            boolean isMade = isFilled(goes, block);
+            int behind = Terms.behind(now.at, p);
+            isRight = isMade && next.size == behind - p && Terms.isAlike(next.at, 0, now.at, p, next.size);
+            next.size = 0;
+            if (!next.adds(now.at, 0, p, LARGE) || !isFilled(comes, block)
+                    || !next.adds(now.at, behind, now.size, LARGE)) {
+                isBroken = true;
+                return;
+            }
+            Word w = now;
+            now = next;
+            next = w;
+        }
+
+        private boolean isFilled(int[] side, int block) {
+            for (int k = 0; k < side.length; k++) {
+                int p = side[k] < 0 ? found(-1 - side[k], block) : NONE;
+                boolean isAdded = p < 0 ? next.adds(side, k, k + 1, LARGE)
+                        : next.adds(env, p + 1, p + 1 + env[p], LARGE);
+                if (!isAdded) {
+                    return false;
+                }
+            }
+            return true;
+        }
+
+        /** Whether a chain leads from one side to the other one, each use as it has to be. */
+        boolean isLeading(int[] left, int n, int[] right, int m, Chain chain) {
+            start(left, n, chain);
+            int count = 0;
+            while (count <= MOST_USES && isMoved()) {
+                if (!isRight) {
+                    return false;
+                }
+                count++;
+            }
+            return !isBroken && now.size == m && Terms.isAlike(now.at, 0, right, 0, m);
+        }
+    }
+
+    /** Finite tables. */
+    private static final class Tables {
+        private final Rows rows;
+        private final int[] arities;
+        private final int[] from = new int[SYMBOLS + 1];
+        final int[] entries = new int[16];
+        private final int[] given = new int[8];
+        private final int[] held = new int[MOST_SIZE + 1];
+        private int count;
+
+        Tables(Rows rows, int[] arities) {
+            this.rows = rows;
+            this.arities = arities;
+        }
+
+        /** Lays all tables of n values out; tells how many there are, BROKEN if too many. */
+        int lay(int n, int symbols) {
+            count = 0;
+            for (int f = 0; f < symbols && f < arities.length; f++) {
+                from[f] = count;
+                count += arities[f] == 0 ? 1 : arities[f] == 1 ? n : n * n;
+            }
+            Arrays.fill(entries, 0);
+            int all = 1;
+            for (int k = 0; k < count; k++) {
+                all *= n;
+                if (all > MOST_TABLES) {
+                    return BROKEN;
+                }
+            }
+            return all;
+        }
+
+        /** The next tables of the row. */
+        void advance(int n) {
+            for (int k = Math.min(count, entries.length) - 1; k >= 0; k--) {
+                entries[k]++;
+                if (entries[k] < n) {
+                    return;
+                }
+                entries[k] = 0;
+            }
+        }
+
+        boolean isModel(int n) {
+            for (int k = 0; k < rows.equationCount && k < rows.equations.length; k++) {
+                Pair pair = rows.equations[k];
+                if (pair != null && isUnlike(pair.left, pair.left.length, pair.right, pair.right.length, n)) {
+                    return false;
+                }
+            }
+            return true;
+        }
+
+        boolean isUnlike(int[] s, int sizeOfS, int[] t, int sizeOfT, int n) {
+            int most = Math.max(Terms.greatestVariable(s, sizeOfS), Terms.greatestVariable(t, sizeOfT)) + 1;
+            int all = 1;
+            for (int v = 0; v < most && v < given.length; v++) {
+                all *= n;
+            }
+            Arrays.fill(given, 0);
+            for (int k = 0; k < all; k++) {
+                if (valueOf(s, sizeOfS, n) != valueOf(t, sizeOfT, n)) {
+                    return true;
+                }
+                for (int v = 0; v < given.length; v++) {
+                    given[v]++;
+                    if (given[v] < n) {
+                        break;
+                    }
+                    given[v] = 0;
+                }
+            }
+            return false;
+        }
+
+        /** From the last sign to the first one, so that all arguments are held as their symbol comes. */
+        private int valueOf(int[] t, int size, int n) {
+            int h = 0;
+            for (int k = Math.min(size, t.length) - 1; k >= 0; k--) {
+                int c = t[k];
+                int value = 0;
+                if (c < 0) {
+                    value = -1 - c < given.length ? given[-1 - c] : 0;
+                } else {
+                    int entry = c / 3 < from.length ? from[c / 3] : 0;
+                    if (c % 3 == 2 && h >= 2) {
+                        entry += held[h - 1] * n + held[h - 2];
+                        h -= 2;
+                    } else if (c % 3 == 1 && h >= 1) {
+                        entry += held[h - 1];
+                        h--;
+                    }
+                    value = entry >= 0 && entry < entries.length ? entries[entry] : 0;
+                }
+                if (h < held.length) {
+                    held[h] = value;
+                    h++;
+                }
+            }
+            return h > 0 ? held[0] : 0;
+        }
+
+        void write(StringBuilder out, int symbols) {
+            for (int f = 0; f < symbols && f < from.length; f++) {
+                if (f > 0) {
+                    out.append(',');
+                }
+                int to = f + 1 < symbols ? from[f + 1] : count;
+                for (int k = from[f]; k < to && k >= 0 && k < entries.length; k++) {
+                    out.append(entries[k]);
+                }
+            }
+        }
+    }
+
+    /** Sorts the items of sums. */
+    private static final class Sorter {
+        private final int[] from = new int[MOST_SIZE + 1];
+        private final Word made = new Word(MOST_SIZE + 1);
+        private int count;
+
+        /** Sorts the sum at p, whose arguments are in their sum form. */
+        void sort(Word w, int p) {
+            int sum = w.at[p];
+            int end = Terms.behind(w.at, p);
+            count = 0;
+            int q = p;
+            while (q < end && q < w.at.length) {
+                if (w.at[q] == sum) {
+                    q++;
+                } else {
+                    place(w.at, q);
+                    q = Terms.behind(w.at, q);
+                }
+            }
+            made.size = 0;
+            for (int k = 0; k < count; k++) {
+                if (k + 1 < count) {
+                    made.adds(w.at, p, p + 1, MOST_SIZE);
+                }
+                made.adds(w.at, from[k], Terms.behind(w.at, from[k]), MOST_SIZE);
+            }
+            if (p + made.size <= w.at.length) {
+                System.arraycopy(made.at, 0, w.at, p, made.size);
+            }
+        }
+
+        private void place(int[] t, int q) {
+            if (count < 0 || count >= from.length) {
+                return;
+            }
+            int k = count;
+            while (k > 0 && isAhead(t, q, from[k - 1])) {
+                from[k] = from[k - 1];
+                k--;
+            }
+            from[k] = q;
+            count++;
+        }
+
+        /** Texts differ as their first signs do that are not the same; x is behind all letters. */
+        private static boolean isAhead(int[] t, int p, int q) {
+            int n = Math.min(Terms.behind(t, p) - p, Terms.behind(t, q) - q);
+            for (int k = 0; k < n; k++) {
+                int c = t[p + k];
+                int d = t[q + k];
+                if (c != d) {
+                    return c >= 0 && d >= 0 ? c < d : c >= 0 || d < 0 && c > d;
+                }
+            }
+            return false;
+        }
+    }
+
+    /** Ground terms without a redex, by their sizes. */
+    private static final class Grounds {
+        private final int[] arities;
+        private final Stepper stepper;
+        private final int[] terms = new int[(MOST_ENDS + 1) * 6];
+        /** Where those of a size begin. */
+        private final int[] from = new int[8];
+        private int count;
+        private final Word made = new Word(MOST_SIZE + 1);
+
+        Grounds(int[] arities, Stepper stepper) {
+            this.arities = arities;
+            this.stepper = stepper;
+        }
+
+        /** How many there are of a size; BROKEN if there are too many up to that. */
+        int made(int size, int symbols) {
+            count = 0;
+            for (int n = 1; n <= size && n + 1 < from.length; n++) {
+                from[n] = count;
+                for (int f = 0; f < symbols && f < arities.length; f++) {
+                    if (arities[f] == 0 && n == 1 && !isAdded(f * 3, NONE, NONE, n)
+                            || arities[f] == 1 && !isEachAdded(f * 3 + 1, n)
+                            || arities[f] == 2 && !isEachPairAdded(f * 3 + 2, n)) {
+                        return BROKEN;
+                    }
+                }
+                from[n + 1] = count;
+            }
+            return size >= 1 && size + 1 < from.length ? from[size + 1] - from[size] : BROKEN;
+        }
+
+        private boolean isEachAdded(int symbol, int n) {
+            for (int k = n < 2 ? count : from[n - 1]; k < from[n]; k++) {
+                if (!isAdded(symbol, k, NONE, n)) {
+                    return false;
+                }
+            }
+            return true;
+        }
+
+        private boolean isEachPairAdded(int symbol, int n) {
+            for (int m = 1; m < n - 1; m++) {
+                for (int k = from[m]; k < from[m + 1]; k++) {
+                    for (int i = from[n - 1 - m]; i < from[n - m]; i++) {
+                        if (!isAdded(symbol, k, i, n)) {
+                            return false;
+                        }
+                    }
+                }
+            }
+            return true;
+        }
+
+        /** A term is added if it is no redex itself, as none lies within its arguments. */
+        private boolean isAdded(int symbol, int a, int b, int n) {
+            made.at[0] = symbol;
+            made.size = 1;
+            if (a >= 0) {
+                made.adds(terms, a * 6, Terms.behind(terms, a * 6), MOST_SIZE);
+            }
+            if (b >= 0) {
+                made.adds(terms, b * 6, Terms.behind(terms, b * 6), MOST_SIZE);
+            }
+            if (stepper.isPlain(made, 0)) {
+                return true;
+            }
+            if (count >= MOST_ENDS || made.size != n || n > 6) {
+                return false;
+            }
+            System.arraycopy(made.at, 0, terms, count * 6, n);
+            count++;
+            return true;
+        }
+    }
+}
