@@ -31,7 +31,8 @@ public final class Rewritehall {
     /** Conditions in conditions go so deep at most; three calls stand open for each. */
     private static final int DEPTH = 80;
     private static final int FUEL = 1000000;
-    private static final int PLAIN = -1;
+    private static final int HEADS = 1024;
+    private static final int NOTES = 60000;
 
     private static final int[] GROUPS_TOLD = {
         5, 0, -1, -1,
@@ -74,14 +75,14 @@ public final class Rewritehall {
     private final Meeting meeting = new Meeting();
     private final Completion completion = new Completion(rows, orders, stepper, meeting);
     private final Proof proof = new Proof();
-    private final Overlaps peaks = new Overlaps(rows, stepper, meeting);
     private final Tables values = new Tables(rows, arities);
-    private final Sorter sorter = new Sorter();
     private final Grounds grounds = new Grounds(arities, stepper);
     private final Word first = new Word(MOST_SIZE + 1);
     private final Word second = new Word(MOST_SIZE + 1);
     private final int[] names = new int[NAMES];
     private final int[] open = new int[LARGE];
+    private final int[] items = new int[MOST_SIZE + 1];
+    private final Word sorted = new Word(MOST_SIZE + 1);
     private final StringBuilder out = new StringBuilder();
 
     public Rewritehall() {
@@ -216,7 +217,7 @@ public final class Rewritehall {
             throw new IndexOutOfBoundsException("no such place");
         }
         first.size = 0;
-        first.adds(top.at, place, Terms.behind(top.at, place), MOST_SIZE);
+        first.adds(top.at, place, Word.behind(top.at, place), MOST_SIZE);
         top.set(first.at, first.size);
         return top.size;
     }
@@ -233,7 +234,7 @@ public final class Rewritehall {
         }
         first.size = 0;
         if (!first.adds(below.at, 0, place, MOST_SIZE) || !first.adds(top.at, 0, top.size, MOST_SIZE)
-                || !first.adds(below.at, Terms.behind(below.at, place), below.size, MOST_SIZE)) {
+                || !first.adds(below.at, Word.behind(below.at, place), below.size, MOST_SIZE)) {
             throw new IllegalStateException("too large");
         }
         stackSize--;
@@ -251,7 +252,7 @@ public final class Rewritehall {
 
     private String textOf(Word w) {
         out.setLength(0);
-        Terms.write(out, w.at, 0, w.size, open);
+        Word.write(out, w.at, 0, w.size, open);
         return out.toString();
     }
 
@@ -264,14 +265,14 @@ public final class Rewritehall {
             case 0:
                 return w.size;
             case 1:
-                return Terms.deepest(w.at, w.size, open);
+                return Word.deepest(w.at, w.size, open);
             case 2:
                 Arrays.fill(names, NONE);
-                return Terms.name(names, 0, w.at, w.size);
+                return Word.name(names, 0, w.at, w.size);
             case 3:
                 return orders.weightOf(w);
             case 4:
-                return Math.max(NONE, Terms.greatestVariable(w.at, w.size));
+                return Math.max(NONE, Word.greatestVariable(w.at, w.size));
             default:
                 throw new IllegalArgumentException("no such what");
         }
@@ -290,7 +291,7 @@ public final class Rewritehall {
             case 1:
                 return c < 0 ? -1 - c : NONE;
             case 2:
-                return Terms.behind(top.at, place) - place;
+                return Word.behind(top.at, place) - place;
             case 3:
                 return around(top.at, place);
             case 4:
@@ -308,7 +309,7 @@ public final class Rewritehall {
     /** The greatest place that a place is within. */
     private static int around(int[] t, int place) {
         for (int p = place - 1; p >= 0; p--) {
-            if (Terms.behind(t, p) > place) {
+            if (Word.behind(t, p) > place) {
                 return p;
             }
         }
@@ -334,7 +335,7 @@ public final class Rewritehall {
                 out.append(';');
             }
             out.append('x').append(v).append('=');
-            Terms.write(out, top.at, p, Terms.behind(top.at, p), open);
+            Word.write(out, top.at, p, Word.behind(top.at, p), open);
         }
         return out.toString();
     }
@@ -351,8 +352,8 @@ public final class Rewritehall {
         }
         first.set(meeting.peak.at, meeting.peak.size);
         Arrays.fill(names, NONE);
-        Terms.name(names, 0, first.at, first.size);
-        Terms.rename(first.at, 0, first.size, names);
+        Word.name(names, 0, first.at, first.size);
+        Word.rename(first.at, 0, first.size, names);
         return textOf(first);
     }
 
@@ -394,7 +395,7 @@ public final class Rewritehall {
         if (left == null || left.at[0] < 0 || !isGuardable(left)) {
             throw new IllegalArgumentException("the left side is not greater");
         }
-        rows.guarded[n] = new Guarded(namedFromTop(3), namedFromTop(2), namedFromTop(1), namedFromTop(0));
+        rows.guarded[n] = new Pair(namedFromTop(3), namedFromTop(2), namedFromTop(1), namedFromTop(0));
         rows.guardedCount++;
         stackSize -= 4;
         return n;
@@ -403,10 +404,10 @@ public final class Rewritehall {
     /** Whether the three terms on the top may stand with this left side; its variables are named. */
     private boolean isGuardable(Word left) {
         Arrays.fill(names, NONE);
-        int known = Terms.name(names, 0, left.at, left.size);
+        int known = Word.name(names, 0, left.at, left.size);
         for (int k = 0; k < 3; k++) {
             Word w = fromTop(k);
-            if (w == null || Terms.name(names, known, w.at, w.size) > known || !orders.isOver(orders.which, left, w)) {
+            if (w == null || Word.name(names, known, w.at, w.size) > known || !orders.isOver(orders.which, left, w)) {
                 return false;
             }
         }
@@ -415,7 +416,7 @@ public final class Rewritehall {
 
     private int[] namedFromTop(int i) {
         Word w = fromTop(i);
-        return Terms.named(w == null ? first : w, names);
+        return Word.named(w == null ? first : w, names);
     }
 
     public int order(int which) throws IllegalArgumentException, IllegalStateException {
@@ -445,16 +446,20 @@ public final class Rewritehall {
 
     private int stepped(Word top, int strategy) {
         stepper.refresh();
-        int place = stepper.pick(top, strategy, 0);
+        int place = stepper.pick(top, strategy);
         return place >= 0 && !stepper.isMade(top, place) ? BROKEN : place;
     }
 
     public int end(int strategy) throws IllegalArgumentException, IllegalStateException {
-        int count = steps(strategy);
-        Word top = fromTop(0);
-        if (top != null) {
-            top.set(first.at, first.size);
+        if (strategy < 0 || strategy > 3) {
+            throw new IllegalArgumentException("no such strategy");
         }
+        Word top = loaded();
+        int count = top == null ? BROKEN : stepper.fullEnd(first, strategy);
+        if (top == null || count < 0) {
+            throw new IllegalStateException("the stack is empty, or a bound is not kept");
+        }
+        top.set(first.at, first.size);
         return count;
     }
 
@@ -462,23 +467,27 @@ public final class Rewritehall {
         if (strategy < 0 || strategy > 3) {
             throw new IllegalArgumentException("no such strategy");
         }
-        Word top = fromTop(0);
-        int count = BROKEN;
-        if (top != null) {
-            stepper.refresh();
-            first.set(top.at, top.size);
-            count = stepper.toEnd(first, strategy, 0, null);
-        }
+        int count = loaded() == null ? BROKEN : stepper.fullEnd(first, strategy);
         if (count < 0) {
             throw new IllegalStateException("the stack is empty, or a bound is not kept");
         }
         return count;
     }
 
+    /** The top, which stands in first too, to be taken to its end there; null if there is none. */
+    private Word loaded() {
+        Word top = fromTop(0);
+        if (top != null) {
+            stepper.refresh();
+            first.set(top.at, top.size);
+        }
+        return top;
+    }
+
     public int redexes() throws IllegalStateException {
         Word top = fromTop(0);
         stepper.refresh();
-        int count = top == null ? BROKEN : stepper.lookAtAll(top, 0);
+        int count = top == null ? BROKEN : stepper.lookAtAll(top);
         if (count == BROKEN) {
             throw new IllegalStateException("the stack is empty, or a bound is not kept");
         }
@@ -486,7 +495,7 @@ public final class Rewritehall {
     }
 
     public int overlaps() throws IllegalStateException {
-        int count = peaks.made(NONE);
+        int count = completion.peaks(NONE);
         if (count == BROKEN) {
             throw new IllegalStateException("a bound is not kept");
         }
@@ -498,22 +507,22 @@ public final class Rewritehall {
         if (what < 0 || what > 4) {
             throw new IllegalArgumentException("no such what");
         }
-        int count = peaks.made(i);
+        int count = completion.peaks(i);
         if (count == BROKEN) {
             throw new IllegalStateException("a bound is not kept");
         }
         if (i < 0 || i >= count) {
             throw new IndexOutOfBoundsException("no such overlap");
         }
-        Word w = what == 0 ? peaks.peak : what % 2 == 1 ? peaks.left : peaks.right;
-        if (what > 2 && stepper.toEnd(w, 0, PLAIN, null) < 0) {
+        Word w = what == 0 ? completion.peak : what % 2 == 1 ? completion.peakLeft : completion.peakRight;
+        if (what > 2 && stepper.plainEnd(w, null) < 0) {
             throw new IllegalStateException("a bound is not kept");
         }
         return textOf(w);
     }
 
     public int missing() throws IllegalStateException {
-        int i = peaks.firstMissing();
+        int i = completion.firstMissing();
         if (i == BROKEN) {
             throw new IllegalStateException("a bound is not kept");
         }
@@ -579,8 +588,8 @@ public final class Rewritehall {
     private void tellAll(int[] sides) {
         int p = 0;
         while (p < sides.length) {
-            int middle = Terms.behind(sides, p);
-            int end = Terms.behind(sides, middle);
+            int middle = Word.behind(sides, p);
+            int end = Word.behind(sides, middle);
             first.size = 0;
             second.size = 0;
             first.adds(sides, p, middle, MOST_SIZE);
@@ -644,10 +653,10 @@ public final class Rewritehall {
         } else if (what == 1) {
             Word w = fromTop(stackSize - 1 - i);
             if (w != null) {
-                Terms.write(out, w.at, 0, w.size, open);
+                Word.write(out, w.at, 0, w.size, open);
             }
         } else if (what == 6) {
-            writeGuarded(i);
+            writePair(i);
         } else {
             Pair[] of = what == 2 ? rows.equations : what == 3 ? rows.rules : what == 4 ? rows.waiting : rows.unturned;
             Pair pair = i >= 0 && i < of.length ? of[i] : null;
@@ -667,8 +676,8 @@ public final class Rewritehall {
         }
     }
 
-    private void writeGuarded(int i) {
-        Guarded rule = i >= 0 && i < rows.guarded.length ? rows.guarded[i] : null;
+    private void writePair(int i) {
+        Pair rule = i >= 0 && i < rows.guarded.length ? rows.guarded[i] : null;
         if (rule != null) {
             writeSides(rule.left, '>', rule.right);
             out.append('|');
@@ -677,9 +686,9 @@ public final class Rewritehall {
     }
 
     private void writeSides(int[] left, char between, int[] right) {
-        Terms.write(out, left, 0, left.length, open);
+        Word.write(out, left, 0, left.length, open);
         out.append(between);
-        Terms.write(out, right, 0, right.length, open);
+        Word.write(out, right, 0, right.length, open);
     }
 
     public int ofRule(int i, int what) throws IndexOutOfBoundsException, IllegalArgumentException {
@@ -714,8 +723,7 @@ public final class Rewritehall {
         }
         first.set(below.at, below.size);
         second.set(top.at, top.size);
-        if (stepper.toEnd(first, 0, PLAIN, completion.first) < 0
-                || stepper.toEnd(second, 0, PLAIN, completion.second) < 0) {
+        if (stepper.plainEnd(first, completion.first) < 0 || stepper.plainEnd(second, completion.second) < 0) {
             return BROKEN;
         }
         return first.isLike(second) ? 1 : 0;
@@ -749,7 +757,13 @@ public final class Rewritehall {
     }
 
     public String proofUse(int i) throws IllegalStateException, NoSuchElementException, IndexOutOfBoundsException {
-        int count = proofSize();
+        int count = proved();
+        if (count == BROKEN) {
+            throw new IllegalStateException("there are no two terms, or a bound is not kept");
+        }
+        if (count == NONE) {
+            throw new NoSuchElementException("the ends are not alike");
+        }
         if (i < 0 || i >= count) {
             throw new IndexOutOfBoundsException("no such use");
         }
@@ -762,7 +776,13 @@ public final class Rewritehall {
     }
 
     public String proofTerm(int i) throws IllegalStateException, NoSuchElementException, IndexOutOfBoundsException {
-        int count = proofSize();
+        int count = proved();
+        if (count == BROKEN) {
+            throw new IllegalStateException("there are no two terms, or a bound is not kept");
+        }
+        if (count == NONE) {
+            throw new NoSuchElementException("the ends are not alike");
+        }
         if (i < 0 || i > count) {
             throw new IndexOutOfBoundsException("no such term");
         }
@@ -788,7 +808,13 @@ public final class Rewritehall {
     }
 
     public boolean isProved() throws IllegalStateException, NoSuchElementException {
-        int count = proofSize();
+        int count = proved();
+        if (count == BROKEN) {
+            throw new IllegalStateException("there are no two terms, or a bound is not kept");
+        }
+        if (count == NONE) {
+            throw new NoSuchElementException("the ends are not alike");
+        }
         Word top = fromTop(0);
         Word below = fromTop(1);
         return count >= 0 && top != null && below != null
@@ -822,11 +848,57 @@ public final class Rewritehall {
         for (int p = w.size - 1; p >= 0; p--) {
             int c = p < w.at.length ? w.at[p] : NONE;
             if (c >= 0 && isSymbol(c / 3) && sums[c / 3]) {
-                sorter.sort(w, p);
+                sort(w, p, c);
                 count++;
             }
         }
         return count;
+    }
+
+    /** Sorts the items of the sum at p, whose arguments are in their sum form. */
+    private void sort(Word w, int p, int sum) {
+        int end = Word.behind(w.at, p);
+        int count = 0;
+        int q = p;
+        while (q < end && q < w.at.length) {
+            if (w.at[q] == sum) {
+                q++;
+                continue;
+            }
+            int k = count;
+            while (k > 0 && k < items.length && isAhead(w.at, q, items[k - 1])) {
+                items[k] = items[k - 1];
+                k--;
+            }
+            if (k < items.length) {
+                items[k] = q;
+                count++;
+            }
+            q = Word.behind(w.at, q);
+        }
+        sorted.size = 0;
+        for (int k = 0; k < count && k < items.length; k++) {
+            if (k + 1 < count) {
+                sorted.adds(w.at, p, p + 1, MOST_SIZE);
+            }
+            sorted.adds(w.at, items[k], Word.behind(w.at, items[k]), MOST_SIZE);
+        }
+        for (int k = 0; k < sorted.size && k < sorted.at.length && p + k < w.at.length; k++) {
+            w.at[p + k] = sorted.at[k];
+        }
+    }
+
+    /** Texts differ as their first signs do that are not the same; x is behind all letters. */
+    private static boolean isAhead(int[] t, int p, int q) {
+        int n = Math.min(Word.behind(t, p) - p, Word.behind(t, q) - q);
+        for (int k = 0; k < n && p + k < t.length && q + k < t.length; k++) {
+            int c = t[p + k];
+            int d = t[q + k];
+            if (c != d) {
+                return c >= 0 && d >= 0 ? c < d : c >= 0 || d < 0 && c > d;
+            }
+        }
+        return false;
     }
 
     public int ends(int size) throws IllegalArgumentException, IllegalStateException {
@@ -901,7 +973,7 @@ public final class Rewritehall {
                 return false;
             }
         }
-        return rows.waitCount > 0 || rows.unturnedCount > 0 || peaks.firstMissing() < 0;
+        return rows.waitCount > 0 || rows.unturnedCount > 0 || completion.firstMissing() < 0;
     }
 
     public long digest() {
@@ -957,12 +1029,9 @@ public final class Rewritehall {
         }
 
         boolean isLike(Word other) {
-            return size == other.size && Terms.isAlike(at, 0, other.at, 0, size);
+            return size == other.size && isAlike(at, 0, other.at, 0, size);
         }
-    }
 
-    /** What can be told of terms alone. */
-    private static final class Terms {
         /** The number behind the part that begins at p. */
         static int behind(int[] t, int p) {
             int q = p;
@@ -1080,10 +1149,12 @@ public final class Rewritehall {
         }
     }
 
-    /** Two sides: an equation (with a number), a rule, an unturned one, or what waits. */
+    /** Two sides: an equation (with a number), a rule, an unturned one, or what waits; or a conditional rule. */
     private static final class Pair {
         final int[] left;
         final int[] right;
+        final int[] one;
+        final int[] other;
         final int variables;
         final int number;
         final int uses;
@@ -1093,25 +1164,23 @@ public final class Rewritehall {
         Pair(int[] left, int[] right, int variables, int number, int uses, Chain chain) {
             this.left = left;
             this.right = right;
+            this.one = left;
+            this.other = right;
             this.variables = variables;
             this.number = number;
             this.uses = uses;
             this.chain = chain;
         }
-    }
 
-    /** A conditional rule. */
-    private static final class Guarded {
-        final int[] left;
-        final int[] right;
-        final int[] one;
-        final int[] other;
-
-        Guarded(int[] left, int[] right, int[] one, int[] other) {
+        Pair(int[] left, int[] right, int[] one, int[] other) {
             this.left = left;
             this.right = right;
             this.one = one;
             this.other = other;
+            this.variables = 0;
+            this.number = NONE;
+            this.uses = 0;
+            this.chain = null;
         }
     }
 
@@ -1162,10 +1231,10 @@ public final class Rewritehall {
             while (p < place) {
                 int argument = 0;
                 int child = p + 1;
-                int next = Terms.behind(t, child);
+                int next = Word.behind(t, child);
                 while (next <= place && argument < 2) {
                     child = next;
-                    next = Terms.behind(t, child);
+                    next = Word.behind(t, child);
                     argument++;
                 }
                 cell(argument);
@@ -1198,7 +1267,7 @@ public final class Rewritehall {
             for (int v = 0; v < pair.variables; v++) {
                 int p = v < bound.length ? bound[v] : NONE;
                 if (p >= 0) {
-                    puts(w.at, p, Terms.behind(w.at, p));
+                    puts(w.at, p, Word.behind(w.at, p));
                 } else {
                     cell(1);
                     cell(-1);
@@ -1239,7 +1308,7 @@ public final class Rewritehall {
                 q++;
                 for (int v = 0; v < n; v++) {
                     int size = at(q);
-                    Terms.rename(code, q + 1, q + 1 + size, names);
+                    Word.rename(code, q + 1, q + 1 + size, names);
                     q += 1 + size;
                 }
                 p += at(p);
@@ -1273,7 +1342,7 @@ public final class Rewritehall {
         int unturnedCount;
         final Pair[] waiting = new Pair[120];
         int waitCount;
-        final Guarded[] guarded = new Guarded[4];
+        final Pair[] guarded = new Pair[4];
         int guardedCount;
         int nextAge;
         int dropped;
@@ -1351,13 +1420,13 @@ public final class Rewritehall {
         /** A new equation of the sides a and b; it waits. */
         int told(Word a, Word b, int[] names) {
             Arrays.fill(names, NONE);
-            int known = Terms.name(names, 0, a.at, a.size);
-            known = Terms.name(names, known, b.at, b.size);
+            int known = Word.name(names, 0, a.at, a.size);
+            known = Word.name(names, known, b.at, b.size);
             int n = equationCount;
             if (n < 0 || n >= equations.length) {
                 return NONE;
             }
-            Pair pair = new Pair(Terms.named(a, names), Terms.named(b, names), known, n, 1, null);
+            Pair pair = new Pair(Word.named(a, names), Word.named(b, names), known, n, 1, null);
             equations[n] = pair;
             equationCount++;
             isStuck = false;
@@ -1370,159 +1439,133 @@ public final class Rewritehall {
     private static final class Orders {
         int which;
         final int[] weights = new int[SYMBOLS];
+        /** For a place of each of two terms 2 if the parts there are alike, 1 if the first one is greater. */
         private final byte[] found = new byte[(MOST_SIZE + 1) * COMES];
         private final int[] ends = new int[MOST_SIZE + 2];
         private final int[] otherEnds = new int[COMES + 2];
         private final int[] often = new int[NAMES];
 
-        /** Whether the part of s from one place up to another is greater than t. */
-        boolean isGreater(int order, int[] s, int from, int to, int[] t, int n) {
-            return order == 0 ? isByPaths(s, from, to, t, n) : isByWeights(s, from, to, t, n);
-        }
-
         boolean isOver(int order, Word s, Word t) {
             return isGreater(order, s.at, 0, s.size, t.at, t.size);
         }
 
-        private boolean isByPaths(int[] s, int from, int to, int[] t, int n) {
+        /** Whether the part of s from one place up to another is greater than t. */
+        boolean isGreater(int order, int[] s, int from, int to, int[] t, int n) {
             int m = to - from;
             if (from < 0 || m < 1 || n < 1 || to > s.length || n > t.length) {
                 return false;
             }
-            if (m > MOST_SIZE || n > COMES || m * n > found.length) {
+            if (m >= ends.length || n >= otherEnds.length || m * n > found.length) {
                 return false;
             }
             measure(s, from, m, ends);
             measure(t, 0, n, otherEnds);
+            return order == 0 ? isByPaths(s, from, m, t, n) : isByWeights(s, from, m, t, n);
+        }
+
+        /** For each place the place behind its part. */
+        private static void measure(int[] t, int from, int n, int[] ends) {
+            for (int k = n - 1; k >= 0; k--) {
+                int c = t[from + k];
+                int end = k + 1;
+                for (int a = c < 0 ? 0 : c % 3; a > 0 && end < n; a--) {
+                    end = ends[end];
+                }
+                ends[k] = end;
+            }
+        }
+
+        /** From the last places to the first ones, so that all about arguments is found ahead of what needs it. */
+        private boolean isByPaths(int[] s, int from, int m, int[] t, int n) {
             for (int i = m - 1; i >= 0; i--) {
+                int c = s[from + i];
                 for (int j = n - 1; j >= 0; j--) {
-                    found[i * n + j] = (byte) pathsAt(s[from + i], t[j], i, j, n);
+                    int d = t[j];
+                    boolean isInside = false;
+                    int a = i + 1;
+                    for (int k = c < 0 ? 0 : c % 3; k > 0 && a < m; k--) {
+                        isInside = isInside || found[a * n + j] != 0;
+                        a = ends[a];
+                    }
+                    boolean isOver = true;
+                    int differ = 2;
+                    a = i + 1;
+                    int b = j + 1;
+                    for (int k = d < 0 ? 0 : d % 3; k > 0 && b < n; k--) {
+                        isOver = isOver && found[i * n + b] == 1;
+                        if (c == d && differ == 2 && a < m) {
+                            differ = found[a * n + b];
+                            a = ends[a];
+                        }
+                        b = otherEnds[b];
+                    }
+                    int value = 0;
+                    if (c == d && differ == 2) {
+                        value = 2;
+                    } else if (isInside || d >= 0 && c >= d && isOver && (c > d || differ == 1)) {
+                        value = 1;
+                    }
+                    found[i * n + j] = (byte) value;
                 }
             }
             return found[0] == 1;
         }
 
-        /** For each place the place behind its part. */
-        private static void measure(int[] t, int from, int n, int[] ends) {
-            for (int k = n - 1; k >= 0 && k < ends.length; k--) {
-                int c = from + k < t.length ? t[from + k] : NONE;
-                int e = k + 1;
-                for (int a = c < 0 ? 0 : c % 3; a > 0 && e < ends.length && e < n; a--) {
-                    e = ends[e];
-                }
-                ends[k] = e;
-            }
-        }
-
-        /** 2 if the parts at i and j are alike, 1 if that at i is greater; all behind both is known. */
-        private int pathsAt(int c, int d, int i, int j, int n) {
-            if (c < 0) {
-                return c == d ? 2 : 0;
-            }
-            int a = i + 1;
-            for (int k = c % 3; k > 0; k--) {
-                if (known(a, j, n) != 0) {
-                    return 1;
-                }
-                a = a < ends.length ? ends[a] : a;
-            }
-            if (d < 0 || c < d) {
-                return 0;
-            }
-            return c == d ? pathsAlike(c % 3, i, j, n) : pathsOver(d % 3, i, j, n);
-        }
-
-        private int pathsOver(int count, int i, int j, int n) {
-            int b = j + 1;
-            for (int k = count; k > 0; k--) {
-                if (known(i, b, n) != 1) {
-                    return 0;
-                }
-                b = b < otherEnds.length ? otherEnds[b] : b;
-            }
-            return 1;
-        }
-
-        private int pathsAlike(int count, int i, int j, int n) {
-            int a = i + 1;
-            int b = j + 1;
-            int first = 2;
-            for (int k = count; k > 0 && first == 2; k--) {
-                first = known(a, b, n);
-                a = a < ends.length ? ends[a] : a;
-                b = b < otherEnds.length ? otherEnds[b] : b;
-            }
-            return first == 1 ? pathsOver(count, i, j, n) : first;
-        }
-
-        private int known(int i, int j, int n) {
-            int k = i * n + j;
-            return k >= 0 && k < found.length ? found[k] : 0;
-        }
-
-        private boolean isByWeights(int[] s, int from, int to, int[] t, int n) {
-            int p = from;
-            int end = to;
+        private boolean isByWeights(int[] s, int from, int m, int[] t, int n) {
+            int p = 0;
             int q = 0;
+            int end = m;
             int otherEnd = n;
-            while (p < end) {
-                int more = surplus(s, p, end, t, q, otherEnd);
-                if (more != 0) {
-                    return more > 0;
+            while (p < end && q < otherEnd) {
+                Arrays.fill(often, 0);
+                int more = 0;
+                boolean isLacking = false;
+                for (int k = p; k < end; k++) {
+                    int v = -1 - s[from + k];
+                    if (v >= 0 && v < often.length) {
+                        often[v]++;
+                    }
+                    more += v >= 0 ? 1 : s[from + k] / 3 < weights.length ? weights[s[from + k] / 3] : 0;
                 }
-                if (p < 0 || p >= s.length || q >= t.length || s[p] < 0 || t[q] < 0) {
-                    return false;
+                for (int k = q; k < otherEnd; k++) {
+                    int v = -1 - t[k];
+                    if (v >= 0 && v < often.length) {
+                        often[v]--;
+                        isLacking = isLacking || often[v] < 0;
+                    }
+                    more -= v >= 0 ? 1 : t[k] / 3 < weights.length ? weights[t[k] / 3] : 0;
                 }
-                if (s[p] != t[q]) {
-                    return s[p] > t[q];
+                int c = s[from + p];
+                if (isLacking || more != 0 || c < 0 || t[q] < 0) {
+                    return !isLacking && more > 0;
                 }
-                int left = s[p] % 3;
-                p++;
-                q++;
-                while (left > 0 && Terms.isAlike(s, p, t, q, Terms.behind(s, p) - p)) {
-                    q += Terms.behind(s, p) - p;
-                    p = Terms.behind(s, p);
-                    left--;
+                if (c != t[q]) {
+                    return c > t[q];
                 }
-                if (left == 0) {
-                    return false;
+                int k = 1;
+                while (p + k < end && q + k < otherEnd && s[from + p + k] == t[q + k]) {
+                    k++;
                 }
-                end = Terms.behind(s, p);
-                otherEnd = Terms.behind(t, q);
+                int a = p + 1;
+                while (a < end && ends[a] <= p + k) {
+                    a = ends[a];
+                }
+                // What is ahead of these arguments is the same in both.
+                q += a - p;
+                p = a;
+                end = p < end ? ends[p] : end;
+                otherEnd = q < otherEnd ? otherEnds[q] : otherEnd;
             }
             return false;
         }
 
-        /** How much more weight the one has; less than nothing too, if a variable stands more often in the other. */
-        private int surplus(int[] s, int p, int end, int[] t, int q, int otherEnd) {
-            Arrays.fill(often, 0);
-            int more = weightOf(s, p, end, 1) - weightOf(t, q, otherEnd, -1);
-            for (int v = 0; v < often.length; v++) {
-                if (often[v] < 0) {
-                    return -1;
-                }
-            }
-            return more;
-        }
-
-        private int weightOf(int[] t, int from, int to, int sign) {
+        int weightOf(Word w) {
             int sum = 0;
-            for (int k = from; k < to && k >= 0 && k < t.length; k++) {
-                int v = -1 - t[k];
-                if (v >= 0) {
-                    sum++;
-                    if (v < often.length) {
-                        often[v] += sign;
-                    }
-                } else if (t[k] / 3 < weights.length) {
-                    sum += weights[t[k] / 3];
-                }
+            for (int k = 0; k < w.size && k < w.at.length; k++) {
+                int f = w.at[k] < 0 ? NONE : w.at[k] / 3;
+                sum += f < 0 ? 1 : f < weights.length ? weights[f] : 0;
             }
             return sum;
-        }
-
-        int weightOf(Word w) {
-            return weightOf(w.at, 0, w.size, 1);
         }
     }
 
@@ -1552,10 +1595,10 @@ public final class Rewritehall {
                     }
                     q++;
                 } else {
-                    int end = Terms.behind(t, q);
+                    int end = Word.behind(t, q);
                     if (bound[v] < 0) {
                         bound[v] = q;
-                    } else if (!Terms.isAlike(t, q, t, bound[v], end - q)) {
+                    } else if (!Word.isAlike(t, q, t, bound[v], end - q)) {
                         return false;
                     }
                     q = end;
@@ -1565,8 +1608,8 @@ public final class Rewritehall {
         }
 
         /** Adds a side to out, with parts of w for its variables; not if one has none, or out gets too large. */
-        boolean makes(int[] side, int n, Word w, Word out, int most) {
-            for (int k = 0; k < n && k < side.length; k++) {
+        boolean makes(int[] side, Word w, Word out, int most) {
+            for (int k = 0; k < side.length; k++) {
                 int v = -1 - side[k];
                 if (v < 0) {
                     if (!out.adds(side, k, k + 1, most)) {
@@ -1574,7 +1617,7 @@ public final class Rewritehall {
                     }
                 } else {
                     int p = v < bound.length ? bound[v] : NONE;
-                    if (p < 0 || !out.adds(w.at, p, Terms.behind(w.at, p), most)) {
+                    if (p < 0 || !out.adds(w.at, p, Word.behind(w.at, p), most)) {
                         return false;
                     }
                 }
@@ -1583,7 +1626,7 @@ public final class Rewritehall {
         }
     }
 
-    /** Steps and ends. A depth of PLAIN is without conditional rules. */
+    /** Steps and ends; and the ends of conditions that were found, for the time of one call. */
     private static final class Stepper {
         private final Rows rows;
         private final Orders orders;
@@ -1593,7 +1636,9 @@ public final class Rewritehall {
         private final Word[] ones = new Word[DEPTH];
         private final Word[] others = new Word[DEPTH];
         private final boolean[] isRedex = new boolean[MOST_SIZE + 1];
-        private final Memo memo = new Memo();
+        private final int[] heads = new int[HEADS];
+        private final int[] notes = new int[NOTES];
+        private int noted;
         private int fuel;
         /** The use that was found last. */
         private Pair pair;
@@ -1610,11 +1655,12 @@ public final class Rewritehall {
             }
         }
 
-        /** To be called ahead of each call of the face that is full. */
+        /** To be called ahead of all that is full, once for each call of the face. */
         void refresh() {
             fuel = FUEL;
             if (rows.guardedCount > 0) {
-                memo.clear();
+                Arrays.fill(heads, NONE);
+                noted = 0;
             }
         }
 
@@ -1629,32 +1675,23 @@ public final class Rewritehall {
                     return true;
                 }
             }
-            for (int k = 0; k < rows.unturnedCount && k < rows.unturned.length; k++) {
-                Pair two = rows.unturned[k];
-                if (two != null && (isTurning(two, two.left, two.right, w, p)
-                        || isTurning(two, two.right, two.left, w, p))) {
+            for (int k = 0; k < 2 * rows.unturnedCount && k < 2 * rows.unturned.length; k++) {
+                Pair two = rows.unturned[k / 2];
+                if (two == null) {
+                    continue;
+                }
+                int[] goes = k % 2 == 0 ? two.left : two.right;
+                int[] come = k % 2 == 0 ? two.right : two.left;
+                comes.size = 0;
+                if (binding.takes(goes, goes.length, w, p) && binding.makes(come, w, comes, COMES)
+                        && orders.isGreater(orders.which, w.at, p, Word.behind(w.at, p), comes.at, comes.size)) {
+                    pair = two;
+                    isBack = k % 2 == 1;
+                    side = come;
                     return true;
                 }
             }
             return false;
-        }
-
-        private boolean isTurning(Pair two, int[] goes, int[] come, Word w, int p) {
-            if (!binding.takes(goes, goes.length, w, p)) {
-                return false;
-            }
-            comes.size = 0;
-            if (!binding.makes(come, come.length, w, comes, COMES)) {
-                return false;
-            }
-            int to = Terms.behind(w.at, p);
-            if (!orders.isGreater(orders.which, w.at, p, to, comes.at, comes.size)) {
-                return false;
-            }
-            pair = two;
-            isBack = goes == two.right;
-            side = come;
-            return true;
         }
 
         /** Looks for the first use at p: 1 if there is one, 0 if there is none. */
@@ -1662,15 +1699,12 @@ public final class Rewritehall {
             if (isPlain(w, p)) {
                 return 1;
             }
-            if (depth == PLAIN) {
-                return 0;
-            }
             fuel--;
             if (fuel < 0) {
                 return BROKEN;
             }
             for (int k = 0; k < rows.guardedCount && k < rows.guarded.length; k++) {
-                Guarded rule = rows.guarded[k];
+                Pair rule = rows.guarded[k];
                 if (rule == null || !binding.takes(rule.left, rule.left.length, w, p)) {
                     continue;
                 }
@@ -1689,7 +1723,7 @@ public final class Rewritehall {
             return 0;
         }
 
-        private int holds(Guarded rule, Word w, int depth) {
+        private int holds(Pair rule, Word w, int depth) {
             if (depth < 0 || depth >= DEPTH) {
                 return BROKEN;
             }
@@ -1700,8 +1734,7 @@ public final class Rewritehall {
             }
             one.size = 0;
             other.size = 0;
-            if (!binding.makes(rule.one, rule.one.length, w, one, MOST_SIZE)
-                    || !binding.makes(rule.other, rule.other.length, w, other, MOST_SIZE)) {
+            if (!binding.makes(rule.one, w, one, MOST_SIZE) || !binding.makes(rule.other, w, other, MOST_SIZE)) {
                 return BROKEN;
             }
             if (endInside(one, depth + 1) == BROKEN || endInside(other, depth + 1) == BROKEN) {
@@ -1710,12 +1743,12 @@ public final class Rewritehall {
             return one.isLike(other) ? 1 : 0;
         }
 
-        /** The full end of what a condition is of; what was found out is noted, as it is asked for again and again. */
+        /** The full end of what a condition is of; it is noted, as it is asked for again and again. */
         private int endInside(Word w, int depth) {
-            if (memo.isKnown(w)) {
+            if (isKnown(w)) {
                 return 0;
             }
-            int mark = memo.begin(w);
+            int mark = noteBefore(w);
             int p = 0;
             int count = 0;
             while (p < w.size) {
@@ -1726,7 +1759,7 @@ public final class Rewritehall {
                 count += found;
                 p = found == 1 ? 0 : p + 1;
             }
-            memo.add(mark, w);
+            noteBehind(mark, w);
             return 0;
         }
 
@@ -1737,28 +1770,28 @@ public final class Rewritehall {
             if (come == null || !spare.adds(w.at, 0, p, MOST_SIZE)) {
                 return false;
             }
-            if (!binding.makes(come, come.length, w, spare, MOST_SIZE)) {
+            if (!binding.makes(come, w, spare, MOST_SIZE)) {
                 return false;
             }
-            if (!spare.adds(w.at, Terms.behind(w.at, p), w.size, MOST_SIZE)) {
+            if (!spare.adds(w.at, Word.behind(w.at, p), w.size, MOST_SIZE)) {
                 return false;
             }
             w.set(spare.at, spare.size);
             return true;
         }
 
-        /** The place of the next step; then the use is found. */
-        int pick(Word w, int strategy, int depth) {
+        /** The place of the next step (full); then the use is found. */
+        int pick(Word w, int strategy) {
             if (strategy != 0) {
-                int all = lookAtAll(w, depth);
+                int all = lookAtAll(w);
                 if (all == BROKEN) {
                     return BROKEN;
                 }
                 int p = all == 0 ? NONE : chosen(w, strategy);
-                return p >= 0 && useAt(w, p, depth) != 1 ? BROKEN : p;
+                return p >= 0 && useAt(w, p, 0) != 1 ? BROKEN : p;
             }
             for (int p = 0; p < w.size; p++) {
-                int found = useAt(w, p, depth);
+                int found = useAt(w, p, 0);
                 if (found != 0) {
                     return found == 1 ? p : BROKEN;
                 }
@@ -1766,11 +1799,11 @@ public final class Rewritehall {
             return NONE;
         }
 
-        /** Notes which places are redexes; tells how many. */
-        int lookAtAll(Word w, int depth) {
+        /** Notes which places are redexes (full); tells how many. */
+        int lookAtAll(Word w) {
             int count = 0;
             for (int p = 0; p < w.size && p < isRedex.length; p++) {
-                int found = useAt(w, p, depth);
+                int found = useAt(w, p, 0);
                 if (found == BROKEN) {
                     return BROKEN;
                 }
@@ -1792,9 +1825,9 @@ public final class Rewritehall {
                 } else if (strategy == 2) {
                     if (p >= over) {
                         best = p;
-                        over = Terms.behind(w.at, p);
+                        over = Word.behind(w.at, p);
                     }
-                } else if (best < 0 || p < Terms.behind(w.at, best)) {
+                } else if (best < 0 || p < Word.behind(w.at, best)) {
                     // Only what lies within takes the place of the smaller one.
                     best = p;
                 } else {
@@ -1804,55 +1837,58 @@ public final class Rewritehall {
             return best;
         }
 
-        /** Takes w to its end; tells by how many steps. Its uses are noted in trace, if there is one. */
-        int toEnd(Word w, int strategy, int depth, Chain trace) {
-            if (trace != null) {
-                trace.clear();
-            }
+        /** Takes w to its full end; tells by how many steps. */
+        int fullEnd(Word w, int strategy) {
             for (int count = 0; count <= MOST_STEPS; count++) {
-                int p = pick(w, strategy, depth);
+                int p = pick(w, strategy);
                 if (p < 0) {
                     return p == NONE ? count : BROKEN;
                 }
-                if (count == MOST_STEPS) {
-                    return BROKEN;
-                }
-                if (trace != null && pair != null) {
-                    trace.addStep(pair, isBack, w, p, binding.bound);
-                }
-                if (!isMade(w, p)) {
+                if (count == MOST_STEPS || !isMade(w, p)) {
                     return BROKEN;
                 }
             }
             return BROKEN;
         }
-    }
 
-    /** Ends that were found, for the time of one call. */
-    private static final class Memo {
-        private final int[] heads = new int[1024];
-        private final int[] notes = new int[60000];
-        private int size;
-
-        void clear() {
-            Arrays.fill(heads, NONE);
-            size = 0;
+        /** Takes w to its plain end; tells by how many steps. Its uses are noted in trace, if there is one. */
+        int plainEnd(Word w, Chain trace) {
+            if (trace != null) {
+                trace.clear();
+            }
+            int count = 0;
+            int p = 0;
+            while (p < w.size) {
+                if (!isPlain(w, p)) {
+                    p++;
+                    continue;
+                }
+                if (trace != null && pair != null) {
+                    trace.addStep(pair, isBack, w, p, binding.bound);
+                }
+                if (count >= MOST_STEPS || !isMade(w, p)) {
+                    return BROKEN;
+                }
+                count++;
+                p = 0;
+            }
+            return count;
         }
 
-        private static int hash(Word w) {
+        private static int headOf(Word w) {
             int h = w.size;
             for (int k = 0; k < w.size && k < w.at.length; k++) {
                 h = h * 31 + w.at[k];
             }
-            return (h ^ (h >>> 10)) & 1023;
+            return Math.floorMod(h, HEADS);
         }
 
-        /** Replaces w by its end, if that is known. A note is: the next one, both sizes, both terms. */
-        boolean isKnown(Word w) {
-            int k = heads[hash(w)];
+        /** Replaces w by its end, if that is noted. A note is: the next one, both sizes, both terms. */
+        private boolean isKnown(Word w) {
+            int k = heads[headOf(w)];
             for (int n = 0; n < notes.length && k >= 0 && k + 2 < notes.length; n++) {
                 int from = k + 3;
-                if (notes[k + 1] == w.size && Terms.isAlike(notes, from, w.at, 0, w.size)) {
+                if (notes[k + 1] == w.size && Word.isAlike(notes, from, w.at, 0, w.size)) {
                     int to = from + w.size;
                     w.size = 0;
                     return w.adds(notes, to, to + notes[k + 2], MOST_SIZE);
@@ -1862,28 +1898,31 @@ public final class Rewritehall {
             return false;
         }
 
-        /** Keeps what w is now; NONE if there is no room for that. */
-        int begin(Word w) {
-            int k = size;
-            if (k + 3 + 2 * MOST_SIZE + 2 > notes.length) {
+        /** Notes what w is ahead of all steps; NONE if there is no room for that. */
+        private int noteBefore(Word w) {
+            int k = noted;
+            if (k < 0 || w.size > w.at.length || k + 3 + w.size + MOST_SIZE > notes.length) {
                 return NONE;
             }
-            notes[k] = hash(w);
+            notes[k] = headOf(w);
             notes[k + 1] = w.size;
-            for (int i = 0; i < w.size && i < w.at.length && k + 3 + i < notes.length; i++) {
+            for (int i = 0; i < w.size; i++) {
                 notes[k + 3 + i] = w.at[i];
             }
-            size = k + 3 + w.size + MOST_SIZE;
+            noted = k + 3 + w.size + MOST_SIZE;
             return k;
         }
 
-        void add(int mark, Word w) {
+        private void noteBehind(int mark, Word w) {
             if (mark < 0 || mark + 2 >= notes.length) {
                 return;
             }
-            int head = notes[mark] & 1023;
+            int head = notes[mark];
             int from = mark + 3 + notes[mark + 1];
-            for (int i = 0; i < w.size && i < w.at.length && from + i >= 0 && from + i < notes.length; i++) {
+            if (head < 0 || head >= heads.length || from < 0 || from + w.size > notes.length) {
+                return;
+            }
+            for (int i = 0; i < w.size && i < w.at.length; i++) {
                 notes[from + i] = w.at[i];
             }
             notes[mark + 2] = w.size;
@@ -1958,8 +1997,8 @@ public final class Rewritehall {
         private int pushArguments(int a, int b, int n) {
             int count = t[a] % 3;
             if (count == 2) {
-                work[n] = Terms.behind(t, a + 1);
-                work[n + 1] = Terms.behind(t, b + 1);
+                work[n] = Word.behind(t, a + 1);
+                work[n + 1] = Word.behind(t, b + 1);
             }
             int k = count == 2 ? n + 2 : n;
             if (count > 0) {
@@ -2004,7 +2043,7 @@ public final class Rewritehall {
                 }
                 int count = t[q] < 0 ? 0 : t[q] % 3;
                 if (count == 2) {
-                    walk[n] = Terms.behind(t, q + 1);
+                    walk[n] = Word.behind(t, q + 1);
                     n++;
                 }
                 if (count > 0) {
@@ -2044,7 +2083,7 @@ public final class Rewritehall {
                 }
                 int count = t[q] < 0 ? 0 : t[q] % 3;
                 if (count == 2) {
-                    walk[n] = Terms.behind(t, q + 1);
+                    walk[n] = Word.behind(t, q + 1);
                     n++;
                 }
                 if (count > 0) {
@@ -2072,7 +2111,7 @@ public final class Rewritehall {
             if (found != 1) {
                 return found == BROKEN ? BROKEN : 0;
             }
-            int behind = Terms.behind(b.left, p);
+            int behind = Word.behind(b.left, p);
             peak.size = 0;
             left.size = 0;
             right.size = 0;
@@ -2098,84 +2137,6 @@ public final class Rewritehall {
         }
     }
 
-    /** The row of overlaps. */
-    private static final class Overlaps {
-        private final Rows rows;
-        private final Stepper stepper;
-        private final Meeting meeting;
-        final Word peak = new Word(MOST_SIZE + 1);
-        final Word left = new Word(MOST_SIZE + 1);
-        final Word right = new Word(MOST_SIZE + 1);
-        private final int[] names = new int[NAMES];
-
-        Overlaps(Rows rows, Stepper stepper, Meeting meeting) {
-            this.rows = rows;
-            this.stepper = stepper;
-            this.meeting = meeting;
-        }
-
-        /** Makes the whole row and keeps the one that is wanted; tells how many there are. */
-        int made(int wanted) {
-            int count = 0;
-            for (int i = 0; i < rows.ruleCount && i < rows.rules.length; i++) {
-                for (int j = 0; j < rows.ruleCount && j < rows.rules.length; j++) {
-                    Pair under = rows.rules[j];
-                    int n = under == null ? 0 : under.left.length;
-                    for (int p = i < j ? 0 : 1; p < n; p++) {
-                        int found = meeting.crosses(rows.rules[i], under, p);
-                        if (found == BROKEN) {
-                            return BROKEN;
-                        }
-                        if (found == 1 && count == wanted) {
-                            keep();
-                        }
-                        count += found;
-                    }
-                }
-            }
-            return count;
-        }
-
-        private void keep() {
-            peak.set(meeting.peak.at, meeting.peak.size);
-            left.set(meeting.left.at, meeting.left.size);
-            right.set(meeting.right.at, meeting.right.size);
-            Arrays.fill(names, NONE);
-            Terms.name(names, 0, peak.at, peak.size);
-            Terms.rename(peak.at, 0, peak.size, names);
-            Terms.rename(left.at, 0, left.size, names);
-            Terms.rename(right.at, 0, right.size, names);
-        }
-
-        /** The first overlap whose ends are not alike. */
-        int firstMissing() {
-            if (made(NONE) == BROKEN) {
-                return BROKEN;
-            }
-            int count = 0;
-            for (int i = 0; i < rows.ruleCount && i < rows.rules.length; i++) {
-                for (int j = 0; j < rows.ruleCount && j < rows.rules.length; j++) {
-                    Pair under = rows.rules[j];
-                    int n = under == null ? 0 : under.left.length;
-                    for (int p = i < j ? 0 : 1; p < n; p++) {
-                        if (meeting.crosses(rows.rules[i], under, p) != 1) {
-                            continue;
-                        }
-                        keep();
-                        if (stepper.toEnd(left, 0, PLAIN, null) < 0 || stepper.toEnd(right, 0, PLAIN, null) < 0) {
-                            return BROKEN;
-                        }
-                        if (!left.isLike(right)) {
-                            return count;
-                        }
-                        count++;
-                    }
-                }
-            }
-            return NONE;
-        }
-    }
-
     /** Steps of completion. */
     private static final class Completion {
         private final Rows rows;
@@ -2185,6 +2146,10 @@ public final class Rewritehall {
         final Chain first = new Chain(MOST_STEPS + 1, 8000);
         final Chain second = new Chain(MOST_STEPS + 1, 8000);
         final Chain draft = new Chain(MOST_USES + 1, 45000);
+        /** The overlap of the row that was kept. */
+        final Word peak = new Word(MOST_SIZE + 1);
+        final Word peakLeft = new Word(MOST_SIZE + 1);
+        final Word peakRight = new Word(MOST_SIZE + 1);
         private final Word left = new Word(MOST_SIZE + 1);
         private final Word right = new Word(MOST_SIZE + 1);
         private final Word spare = new Word(MOST_SIZE + 1);
@@ -2207,7 +2172,14 @@ public final class Rewritehall {
                 return BROKEN;
             }
             rows.keep();
-            int told = taken(rows.takeNext());
+            int told = BROKEN;
+            Pair pair = rows.takeNext();
+            if (pair != null && areEnds(pair)) {
+                told = direction();
+                if (told != 0 && !(told == 3 ? isUnturned(turned(pair, false)) : isRule(turned(pair, told == 2)))) {
+                    told = BROKEN;
+                }
+            }
             if (told == BROKEN) {
                 rows.bringBack();
                 rows.isStuck = true;
@@ -2218,30 +2190,31 @@ public final class Rewritehall {
             return told;
         }
 
-        private int taken(Pair pair) {
-            if (pair == null) {
-                return BROKEN;
-            }
+        /** Makes the ends of both sides; tells whether the bounds are kept. */
+        private boolean areEnds(Pair pair) {
             left.set(pair.left, pair.left.length);
             right.set(pair.right, pair.right.length);
-            if (stepper.toEnd(left, 0, PLAIN, first) < 0 || stepper.toEnd(right, 0, PLAIN, second) < 0) {
-                return BROKEN;
-            }
+            return stepper.plainEnd(left, first) >= 0 && stepper.plainEnd(right, second) >= 0;
+        }
+
+        private int direction() {
             if (left.isLike(right)) {
                 return 0;
             }
             if (orders.isOver(orders.which, left, right)) {
-                return isRule(turned(pair, false)) ? 1 : BROKEN;
+                return 1;
             }
-            if (orders.isOver(orders.which, right, left)) {
-                return isRule(turned(pair, true)) ? 2 : BROKEN;
+            return orders.isOver(orders.which, right, left) ? 2 : 3;
+        }
+
+        private boolean isUnturned(Pair pair) {
+            int n = rows.unturnedCount;
+            if (n < 0 || n >= rows.unturned.length) {
+                return false;
             }
-            if (rows.unturnedCount < 0 || rows.unturnedCount >= rows.unturned.length) {
-                return BROKEN;
-            }
-            rows.unturned[rows.unturnedCount] = turned(pair, false);
+            rows.unturned[n] = pair;
             rows.unturnedCount++;
-            return 3;
+            return true;
         }
 
         /** The pair of both ends, named, with its chain. */
@@ -2249,8 +2222,8 @@ public final class Rewritehall {
             Word a = isExchanged ? right : left;
             Word b = isExchanged ? left : right;
             Arrays.fill(names, NONE);
-            int known = Terms.name(names, 0, a.at, a.size);
-            known = Terms.name(names, known, b.at, b.size);
+            int known = Word.name(names, 0, a.at, a.size);
+            known = Word.name(names, known, b.at, b.size);
             int uses = Math.min(MANY_USES + 1, first.broughtBack() + pair.uses + second.broughtBack());
             Chain chain = null;
             if (uses <= MOST_USES) {
@@ -2261,7 +2234,7 @@ public final class Rewritehall {
                 draft.rename(names);
                 chain = draft.packed();
             }
-            return new Pair(Terms.named(a, names), Terms.named(b, names), known, NONE, uses, chain);
+            return new Pair(Word.named(a, names), Word.named(b, names), known, NONE, uses, chain);
         }
 
         /** An equation that waits has no chain of its own: it is its own use. */
@@ -2332,7 +2305,7 @@ public final class Rewritehall {
                 return true;
             }
             right.set(old.right, old.right.length);
-            int count = stepper.toEnd(right, 0, PLAIN, second);
+            int count = stepper.plainEnd(right, second);
             if (count <= 0) {
                 return count == 0;
             }
@@ -2375,8 +2348,8 @@ public final class Rewritehall {
             Word a = meeting.left;
             Word b = meeting.right;
             Arrays.fill(names, NONE);
-            int known = Terms.name(names, 0, a.at, a.size);
-            known = Terms.name(names, known, b.at, b.size);
+            int known = Word.name(names, 0, a.at, a.size);
+            known = Word.name(names, known, b.at, b.size);
             int uses = Math.min(MANY_USES + 1, over.uses + under.uses);
             Chain chain = null;
             if (uses <= MOST_USES) {
@@ -2390,7 +2363,68 @@ public final class Rewritehall {
                 draft.rename(names);
                 chain = draft.packed();
             }
-            return new Pair(Terms.named(a, names), Terms.named(b, names), known, NONE, uses, chain);
+            return new Pair(Word.named(a, names), Word.named(b, names), known, NONE, uses, chain);
+        }
+
+        /** Makes the whole row of overlaps and keeps the one that is wanted; tells how many there are. */
+        int peaks(int wanted) {
+            int count = 0;
+            for (int i = 0; i < rows.ruleCount && i < rows.rules.length; i++) {
+                for (int j = 0; j < rows.ruleCount && j < rows.rules.length; j++) {
+                    Pair under = rows.rules[j];
+                    int n = under == null ? 0 : under.left.length;
+                    for (int p = i < j ? 0 : 1; p < n; p++) {
+                        int found = meeting.crosses(rows.rules[i], under, p);
+                        if (found == BROKEN) {
+                            return BROKEN;
+                        }
+                        if (found == 1 && count == wanted) {
+                            keepPeak();
+                        }
+                        count += found;
+                    }
+                }
+            }
+            return count;
+        }
+
+        private void keepPeak() {
+            peak.set(meeting.peak.at, meeting.peak.size);
+            peakLeft.set(meeting.left.at, meeting.left.size);
+            peakRight.set(meeting.right.at, meeting.right.size);
+            Arrays.fill(names, NONE);
+            Word.name(names, 0, peak.at, peak.size);
+            Word.rename(peak.at, 0, peak.size, names);
+            Word.rename(peakLeft.at, 0, peakLeft.size, names);
+            Word.rename(peakRight.at, 0, peakRight.size, names);
+        }
+
+        /** The first overlap whose ends are not alike; no bound counts behind it but those of the row. */
+        int firstMissing() {
+            if (peaks(NONE) == BROKEN) {
+                return BROKEN;
+            }
+            int count = 0;
+            for (int i = 0; i < rows.ruleCount && i < rows.rules.length; i++) {
+                for (int j = 0; j < rows.ruleCount && j < rows.rules.length; j++) {
+                    Pair under = rows.rules[j];
+                    int n = under == null ? 0 : under.left.length;
+                    for (int p = i < j ? 0 : 1; p < n; p++) {
+                        if (meeting.crosses(rows.rules[i], under, p) != 1) {
+                            continue;
+                        }
+                        keepPeak();
+                        if (stepper.plainEnd(peakLeft, null) < 0 || stepper.plainEnd(peakRight, null) < 0) {
+                            return BROKEN;
+                        }
+                        if (!peakLeft.isLike(peakRight)) {
+                            return count;
+                        }
+                        count++;
+                    }
+                }
+            }
+            return NONE;
         }
     }
 
@@ -2509,7 +2543,7 @@ public final class Rewritehall {
                 int argument = c.at(record + 3 + k);
                 p++;
                 for (int a = 0; a < argument && a < 2; a++) {
-                    p = Terms.behind(now.at, p);
+                    p = Word.behind(now.at, p);
                 }
             }
             return p;
@@ -2564,8 +2598,8 @@ public final class Rewritehall {
         private void replace(int[] goes, int[] comes, int p, int block) {
             next.size = 0;
             boolean isMade = isFilled(goes, block);
-            int behind = Terms.behind(now.at, p);
-            isRight = isMade && next.size == behind - p && Terms.isAlike(next.at, 0, now.at, p, next.size);
+            int behind = Word.behind(now.at, p);
+            isRight = isMade && next.size == behind - p && Word.isAlike(next.at, 0, now.at, p, next.size);
             next.size = 0;
             if (!next.adds(now.at, 0, p, LARGE) || !isFilled(comes, block)
                     || !next.adds(now.at, behind, now.size, LARGE)) {
@@ -2599,7 +2633,7 @@ public final class Rewritehall {
                 }
                 count++;
             }
-            return !isBroken && now.size == m && Terms.isAlike(now.at, 0, right, 0, m);
+            return !isBroken && now.size == m && Word.isAlike(now.at, 0, right, 0, m);
         }
     }
 
@@ -2658,7 +2692,7 @@ public final class Rewritehall {
         }
 
         boolean isUnlike(int[] s, int sizeOfS, int[] t, int sizeOfT, int n) {
-            int most = Math.max(Terms.greatestVariable(s, sizeOfS), Terms.greatestVariable(t, sizeOfT)) + 1;
+            int most = Math.max(Word.greatestVariable(s, sizeOfS), Word.greatestVariable(t, sizeOfT)) + 1;
             int all = 1;
             for (int v = 0; v < most && v < given.length; v++) {
                 all *= n;
@@ -2716,65 +2750,6 @@ public final class Rewritehall {
                     out.append(entries[k]);
                 }
             }
-        }
-    }
-
-    /** Sorts the items of sums. */
-    private static final class Sorter {
-        private final int[] from = new int[MOST_SIZE + 1];
-        private final Word made = new Word(MOST_SIZE + 1);
-        private int count;
-
-        /** Sorts the sum at p, whose arguments are in their sum form. */
-        void sort(Word w, int p) {
-            int sum = w.at[p];
-            int end = Terms.behind(w.at, p);
-            count = 0;
-            int q = p;
-            while (q < end && q < w.at.length) {
-                if (w.at[q] == sum) {
-                    q++;
-                } else {
-                    place(w.at, q);
-                    q = Terms.behind(w.at, q);
-                }
-            }
-            made.size = 0;
-            for (int k = 0; k < count; k++) {
-                if (k + 1 < count) {
-                    made.adds(w.at, p, p + 1, MOST_SIZE);
-                }
-                made.adds(w.at, from[k], Terms.behind(w.at, from[k]), MOST_SIZE);
-            }
-            if (p + made.size <= w.at.length) {
-                System.arraycopy(made.at, 0, w.at, p, made.size);
-            }
-        }
-
-        private void place(int[] t, int q) {
-            if (count < 0 || count >= from.length) {
-                return;
-            }
-            int k = count;
-            while (k > 0 && isAhead(t, q, from[k - 1])) {
-                from[k] = from[k - 1];
-                k--;
-            }
-            from[k] = q;
-            count++;
-        }
-
-        /** Texts differ as their first signs do that are not the same; x is behind all letters. */
-        private static boolean isAhead(int[] t, int p, int q) {
-            int n = Math.min(Terms.behind(t, p) - p, Terms.behind(t, q) - q);
-            for (int k = 0; k < n; k++) {
-                int c = t[p + k];
-                int d = t[q + k];
-                if (c != d) {
-                    return c >= 0 && d >= 0 ? c < d : c >= 0 || d < 0 && c > d;
-                }
-            }
-            return false;
         }
     }
 
@@ -2837,10 +2812,10 @@ public final class Rewritehall {
             made.at[0] = symbol;
             made.size = 1;
             if (a >= 0) {
-                made.adds(terms, a * 6, Terms.behind(terms, a * 6), MOST_SIZE);
+                made.adds(terms, a * 6, Word.behind(terms, a * 6), MOST_SIZE);
             }
             if (b >= 0) {
-                made.adds(terms, b * 6, Terms.behind(terms, b * 6), MOST_SIZE);
+                made.adds(terms, b * 6, Word.behind(terms, b * 6), MOST_SIZE);
             }
             if (stepper.isPlain(made, 0)) {
                 return true;
