@@ -31,8 +31,8 @@ public final class Rewritehall {
     /** Conditions in conditions go so deep at most; three calls stand open for each. */
     private static final int DEPTH = 80;
     private static final int FUEL = 1000000;
-    private static final int HEADS = 1024;
-    private static final int NOTES = 60000;
+    private static final int HEADS = 2048;
+    private static final int NOTES = 150000;
 
     private static final int[] GROUPS_TOLD = {
         5, 0, -1, -1,
@@ -1379,9 +1379,11 @@ public final class Rewritehall {
 
         Pair takeNext() {
             Pair next = waitCount > 0 ? waiting[0] : null;
+            for (int k = 1; k < waitCount && k < waiting.length; k++) {
+                waiting[k - 1] = waiting[k];
+            }
             if (next != null) {
                 waitCount--;
-                System.arraycopy(waiting, 1, waiting, 0, waiting.length - 1);
             }
             return next;
         }
@@ -1394,19 +1396,25 @@ public final class Rewritehall {
         }
 
         void keep() {
-            System.arraycopy(rules, 0, keptRules, 0, rules.length);
-            System.arraycopy(waiting, 0, keptWaiting, 0, waiting.length);
+            copy(rules, keptRules);
+            copy(waiting, keptWaiting);
             keptRuleCount = ruleCount;
             keptWaitCount = waitCount;
             keptAge = nextAge;
         }
 
         void bringBack() {
-            System.arraycopy(keptRules, 0, rules, 0, rules.length);
-            System.arraycopy(keptWaiting, 0, waiting, 0, waiting.length);
+            copy(keptRules, rules);
+            copy(keptWaiting, waiting);
             ruleCount = keptRuleCount;
             waitCount = keptWaitCount;
             nextAge = keptAge;
+        }
+
+        private static void copy(Pair[] from, Pair[] to) {
+            for (int k = 0; k < from.length && k < to.length; k++) {
+                to[k] = from[k];
+            }
         }
 
         void forget() {
@@ -1635,6 +1643,7 @@ public final class Rewritehall {
         private final Word spare = new Word(MOST_SIZE + 1);
         private final Word[] ones = new Word[DEPTH];
         private final Word[] others = new Word[DEPTH];
+        private final Word[] keys = new Word[DEPTH + 1];
         private final boolean[] isRedex = new boolean[MOST_SIZE + 1];
         private final int[] heads = new int[HEADS];
         private final int[] notes = new int[NOTES];
@@ -1652,6 +1661,7 @@ public final class Rewritehall {
             for (int k = 0; k < DEPTH; k++) {
                 ones[k] = new Word(MOST_SIZE + 1);
                 others[k] = new Word(MOST_SIZE + 1);
+                keys[k + 1] = new Word(MOST_SIZE + 1);
             }
         }
 
@@ -1748,7 +1758,11 @@ public final class Rewritehall {
             if (isKnown(w)) {
                 return 0;
             }
-            int mark = noteBefore(w);
+            Word key = depth >= 0 && depth < keys.length ? keys[depth] : null;
+            if (key == null) {
+                return BROKEN;
+            }
+            key.set(w.at, w.size);
             int p = 0;
             int count = 0;
             while (p < w.size) {
@@ -1759,7 +1773,7 @@ public final class Rewritehall {
                 count += found;
                 p = found == 1 ? 0 : p + 1;
             }
-            noteBehind(mark, w);
+            note(key, w);
             return 0;
         }
 
@@ -1898,36 +1912,25 @@ public final class Rewritehall {
             return false;
         }
 
-        /** Notes what w is ahead of all steps; NONE if there is no room for that. */
-        private int noteBefore(Word w) {
+        /** Notes that w is the end of key, if there is room for that. */
+        private void note(Word key, Word w) {
             int k = noted;
-            if (k < 0 || w.size > w.at.length || k + 3 + w.size + MOST_SIZE > notes.length) {
-                return NONE;
+            int from = k + 3 + key.size;
+            if (k < 0 || key.size > key.at.length || w.size > w.at.length || from + w.size > notes.length) {
+                return;
             }
-            notes[k] = headOf(w);
-            notes[k + 1] = w.size;
+            int head = headOf(key);
+            notes[k] = heads[head];
+            notes[k + 1] = key.size;
+            notes[k + 2] = w.size;
+            for (int i = 0; i < key.size; i++) {
+                notes[k + 3 + i] = key.at[i];
+            }
             for (int i = 0; i < w.size; i++) {
-                notes[k + 3 + i] = w.at[i];
-            }
-            noted = k + 3 + w.size + MOST_SIZE;
-            return k;
-        }
-
-        private void noteBehind(int mark, Word w) {
-            if (mark < 0 || mark + 2 >= notes.length) {
-                return;
-            }
-            int head = notes[mark];
-            int from = mark + 3 + notes[mark + 1];
-            if (head < 0 || head >= heads.length || from < 0 || from + w.size > notes.length) {
-                return;
-            }
-            for (int i = 0; i < w.size && i < w.at.length; i++) {
                 notes[from + i] = w.at[i];
             }
-            notes[mark + 2] = w.size;
-            notes[mark] = heads[head];
-            heads[head] = mark;
+            heads[head] = k;
+            noted = from + w.size;
         }
     }
 
