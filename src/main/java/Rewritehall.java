@@ -1159,7 +1159,6 @@ public final class Rewritehall {
         final int number;
         final int uses;
         final Chain chain;
-        int age;
 
         Pair(int[] left, int[] right, int variables, int number, int uses, Chain chain) {
             this.left = left;
@@ -1355,12 +1354,11 @@ public final class Rewritehall {
         /** The next step is known to be refused; so it isn't tried again before something is told. */
         boolean isStuck;
 
-        /** What waits is held in the order in which it is taken. */
+        /** What waits is held in the order in which it is taken; of the same size the oldest is ahead. */
         boolean waits(Pair pair) {
             if (waitCount < 0 || waitCount >= waiting.length) {
                 return false;
             }
-            pair.age = nextAge;
             nextAge++;
             int k = waitCount;
             while (k > 0 && isAhead(pair, waiting[k - 1])) {

@@ -1,0 +1,345 @@
+/** Promises 17 to 23: equations, conditional rules, the order, and steps by all strategies. */
+public final class StepsTest {
+    private static final Class<?> ARGUMENT = IllegalArgumentException.class;
+    private static final Class<?> STATE = IllegalStateException.class;
+
+    private StepsTest() {
+    }
+
+    public static void main(String[] args) {
+        equation();
+        fullEquations();
+        condition();
+        wrongConditions();
+        order();
+        wrongSteps();
+        strategies();
+        endsAndSteps();
+        unturnedUses();
+        sixtySteps();
+        sizeOfSteps();
+        conditionsHold();
+        conditionsComeLast();
+        boundsOfConditions();
+        boundsThatAreNotReached();
+        deepConditions();
+        Asked.finish("StepsTest");
+    }
+
+    private static void equation() {
+        Rewritehall hall = Asked.hall(0, 1, 2);
+        Asked.refused("17 empty", hall, STATE, () -> hall.equation());
+        Asked.push(hall, "a");
+        Asked.refused("17 one", hall, STATE, () -> hall.equation());
+        Asked.push(hall, "c(x3,x1)", "c(x4,x3)");
+        Asked.due("17 first", hall.equation(), 0);
+        Asked.push(hall, "b(a)");
+        Asked.due("17 second", hall.equation(), 1);
+        Asked.due("17 named", Asked.rows(hall, 2), "c(x0,x1)=c(x2,x0) a=b(a)");
+        Asked.due("17 waits", Asked.rows(hall, 4), "a=b(a) c(x0,x1)=c(x2,x0)");
+        Asked.due("17 ages", hall.many(10), 2);
+        Asked.due("17 the stack", hall.many(1), 0);
+    }
+
+    private static void fullEquations() {
+        Rewritehall hall = Asked.hall(0, 1);
+        for (int k = 0; k < 10; k++) {
+            Asked.push(hall, Asked.nested("b", 10 - k, "x0"), "a");
+            Asked.due("17 equation", hall.equation(), k);
+        }
+        Asked.push(hall, "a", "a");
+        Asked.refused("17 an eleventh", hall, STATE, () -> hall.equation());
+        Asked.due("17 the smallest is the next", hall.row(4, 0), "b(x0)=a");
+    }
+
+    private static void condition() {
+        Rewritehall hall = Asked.hall(0, 1, 2);
+        Asked.push(hall, "x5", "c(x3,b(x2))", "c(x3,x2)", "x3", "b(x2)");
+        Asked.due("18 first", hall.condition(), 0);
+        Asked.due("18 named by the left side", Asked.rows(hall, 6), "c(x0,b(x1))>c(x0,x1)|x0=b(x1)");
+        Asked.due("18 the stack", Asked.rows(hall, 1), "x5");
+        for (int k = 1; k < 4; k++) {
+            Asked.push(hall, "b(b(a))", "a", "b(a)", "a");
+            Asked.due("18 next", hall.condition(), k);
+        }
+        Asked.push(hall, "b(b(a))", "a", "b(a)", "a");
+        Asked.refused("18 a fifth", hall, STATE, () -> hall.condition());
+        hall.drop();
+        Asked.push(hall, "x0");
+        Asked.refused("18 a fifth that is wrong", hall, STATE, () -> hall.condition());
+    }
+
+    private static void wrongConditions() {
+        Rewritehall hall = Asked.hall(0, 1, 2);
+        Asked.refused("18 empty", hall, STATE, () -> hall.condition());
+        Asked.push(hall, "b(a)", "a", "a");
+        Asked.refused("18 three", hall, STATE, () -> hall.condition());
+        String[][] wrong = {{"x0", "a", "a", "a"}, {"b(x0)", "x1", "a", "a"}, {"b(x0)", "a", "x1", "a"},
+            {"b(x0)", "a", "x0", "x1"}, {"b(x0)", "b(x0)", "x0", "x0"}, {"b(x0)", "x0", "b(x0)", "x0"},
+            {"b(x0)", "x0", "x0", "b(b(x0))"}};
+        for (String[] four : wrong) {
+            Asked.push(hall, four);
+            Asked.refused("18 " + String.join(" ", four), hall, ARGUMENT, () -> hall.condition());
+            for (int k = 0; k < 4; k++) {
+                hall.drop();
+            }
+        }
+        Asked.push(hall, "b(x0)", "x0", "a", "x0");
+        Asked.due("18 that is right", hall.condition(), 0);
+    }
+
+    private static void order() {
+        Rewritehall hall = Asked.hall(0, 1, 2);
+        Asked.refused("19 -1", hall, ARGUMENT, () -> hall.order(-1));
+        Asked.refused("19 2", hall, ARGUMENT, () -> hall.order(2));
+        Asked.due("19 at first", hall.order(1), 0);
+        Asked.due("19 many", hall.many(7), 1);
+        Asked.due("19 again", hall.order(1), 1);
+        Asked.due("19 back", hall.order(0), 1);
+        Asked.tell(hall, "b(x0)=x0");
+        Asked.due("19 with equations", hall.order(0), 0);
+        hall.complete();
+        Asked.refused("19 with a rule", hall, STATE, () -> hall.order(0));
+        Asked.refused("19 with a rule, and wrong", hall, ARGUMENT, () -> hall.order(2));
+        hall.restart();
+        Asked.due("19 without the rule", hall.order(1), 0);
+        Rewritehall turned = Asked.hall(2);
+        Asked.tell(turned, "a(x0,x1)=a(x1,x0)");
+        Asked.due("19 unturned", turned.complete(), 3);
+        Asked.refused("19 with an unturned one", turned, STATE, () -> turned.order(1));
+        Rewritehall guarded = Asked.hall(0, 1);
+        Asked.push(guarded, "b(x0)", "x0", "x0", "a");
+        guarded.condition();
+        Asked.refused("19 with a conditional one", guarded, STATE, () -> guarded.order(1));
+        Rewritehall weighed = Asked.hall(0, 1, 2);
+        Asked.tell(weighed, "c(x0,x0)=b(b(b(b(x0))))");
+        weighed.order(1);
+        weighed.complete();
+        Asked.due("19 by weights", Asked.rows(weighed, 5), "c(x0,x0)=b(b(b(b(x0))))");
+        weighed.restart();
+        weighed.order(0);
+        weighed.complete();
+        Asked.due("19 by paths", Asked.rows(weighed, 3), "c(x0,x0)>b(b(b(b(x0))))");
+    }
+
+    private static void wrongSteps() {
+        Rewritehall hall = Asked.hall(0, 1);
+        Asked.refused("20 empty", hall, STATE, () -> hall.step(0));
+        Asked.refused("21 empty", hall, STATE, () -> hall.end(3));
+        Asked.refused("22 empty", hall, STATE, () -> hall.steps(3));
+        Asked.refused("23 empty", hall, STATE, () -> hall.redexes());
+        for (int strategy : new int[] {-1, 4}) {
+            Asked.refused("20 " + strategy, hall, ARGUMENT, () -> hall.step(strategy));
+            Asked.refused("21 " + strategy, hall, ARGUMENT, () -> hall.end(strategy));
+            Asked.refused("22 " + strategy, hall, ARGUMENT, () -> hall.steps(strategy));
+        }
+        Asked.push(hall, "b(a)");
+        Asked.due("20 no redex", hall.step(2), -1);
+        Asked.due("21 no redex", hall.end(1), 0);
+        Asked.due("22 no redex", hall.steps(0), 0);
+        Asked.due("23 no redex", hall.redexes(), 0);
+    }
+
+    /** d(x0) > a: the redexes of the term are nested in two arguments. */
+    private static void strategies() {
+        Rewritehall hall = Asked.hall(0, 1, 2, 1);
+        Asked.tell(hall, "d(x0)=b(x0)");
+        hall.complete();
+        String term = "c(d(c(a,d(d(a)))),d(b(d(a))))";
+        int[] places = {1, 5, 7, 9};
+        String[] behind = {"c(b(c(a,d(d(a)))),d(b(d(a))))", "c(d(c(a,d(b(a)))),d(b(d(a))))",
+            "c(d(c(a,d(d(a)))),b(b(d(a))))", "c(d(c(a,d(d(a)))),d(b(b(a))))"};
+        for (int strategy = 0; strategy < 4; strategy++) {
+            Asked.push(hall, term);
+            Asked.due("23 redexes", hall.redexes(), 5);
+            Asked.due("20 strategy " + strategy, hall.step(strategy), places[strategy]);
+            Asked.due("20 text " + strategy, hall.text(0), behind[strategy]);
+            hall.drop();
+        }
+        Asked.push(hall, "d(a)");
+        Asked.due("20 the place 0", hall.step(1), 0);
+        Asked.due("20 and no more", hall.step(1), -1);
+    }
+
+    private static void endsAndSteps() {
+        Rewritehall hall = Asked.hall(0, 1, 2, 1);
+        Asked.tell(hall, "d(x0)=c(x0,x0)");
+        hall.complete();
+        int[] counts = {7, 3, 7, 3};
+        for (int strategy = 0; strategy < 4; strategy++) {
+            Asked.push(hall, "d(d(d(a)))");
+            String before = Asked.state(hall);
+            Asked.due("22 strategy " + strategy, hall.steps(strategy), counts[strategy]);
+            Asked.due("22 nothing is changed", Asked.state(hall), before);
+            Asked.due("21 strategy " + strategy, hall.end(strategy), counts[strategy]);
+            Asked.due("21 text", hall.text(0), "c(c(c(a,a),c(a,a)),c(c(a,a),c(a,a)))");
+        }
+    }
+
+    private static void unturnedUses() {
+        Rewritehall hall = Asked.hall(0, 1, 2, 0);
+        Asked.tell(hall, "c(x0,x1)=c(x1,x0)", "c(x0,x1)=c(b(x2),x0)", "b(a)=b(d)");
+        Asked.due("3 unturned, a rule", hall.finish(12), 3);
+        Asked.due("3 the rows", Asked.rows(hall, 5), "c(x0,x1)=c(x1,x0) c(x0,x1)=c(b(x2),x0)");
+        Asked.due("3 the rule", Asked.rows(hall, 3), "b(d)>b(a)");
+        Asked.push(hall, "c(d,a)");
+        Asked.due("20 a greater part", hall.step(0), 0);
+        Asked.due("20 turned", hall.text(0), "c(a,d)");
+        Asked.due("20 nothing greater", hall.step(0), -1);
+        hall.drop();
+        Asked.push(hall, "c(x1,x0)");
+        Asked.due("20 variables are not greater", hall.redexes(), 0);
+        hall.drop();
+        Asked.push(hall, "c(b(d),x0)");
+        Asked.due("20 rules are ahead, but not at other places", hall.step(0), 1);
+        Asked.due("20 no use with a new variable", hall.end(0), 0);
+        Rewritehall back = Asked.hall(0, 1, 2, 0);
+        Asked.tell(back, "c(x0,b(x1))=c(x1,x0)");
+        Asked.due("3 unturned", back.complete(), 3);
+        Asked.push(back, "c(a,d)");
+        Asked.due("20 neither forth nor back", back.step(0), -1);
+        Asked.push(back, "c(d,a)");
+        Asked.due("20 back", back.step(0), 0);
+        Asked.due("20 back, text", back.text(0), "c(a,b(d))");
+        Asked.push(back, "c(d,b(a))");
+        Asked.due("20 forth", back.step(0), 0);
+        Asked.due("20 forth, text", back.text(0), "c(a,d)");
+        Asked.push(back, "c(c(d,d),a)");
+        Asked.due("20 back at 0", back.step(0), 0);
+        Asked.due("20 back, text", back.text(0), "c(a,b(c(d,d)))");
+    }
+
+    /** d(x0) > b(x0): a term with so many d has an end by so many steps; c(x,y) > b(b(..)) has one more. */
+    private static void sixtySteps() {
+        Rewritehall hall = Asked.hall(0, 1, 2, 1);
+        Asked.tell(hall, "d(x0)=b(b(x0))", "b(b(b(b(x0))))=b(b(x0))");
+        hall.finish(12);
+        Asked.due("3 the rules", Asked.rows(hall, 3), "d(x0)>b(b(x0)) b(b(b(b(x0))))>b(b(x0))");
+        Asked.push(hall, Asked.nested("d", 30, "b(a)"));
+        Asked.due("21 59 steps", hall.steps(3), 59);
+        hall.drop();
+        Asked.push(hall, Asked.nested("d", 30, "b(b(a))"));
+        Asked.due("21 60 steps", hall.end(3), 60);
+        Asked.due("21 60 steps, text", hall.text(0), "b(b(a))");
+        hall.drop();
+        Asked.push(hall, Asked.nested("d", 31, "a"));
+        Asked.due("21 61 steps", hall.redexes(), 31);
+        Asked.refused("21 61 steps", hall, STATE, () -> hall.end(3));
+        Asked.refused("22 61 steps", hall, STATE, () -> hall.steps(1));
+        Asked.refused("34 61 steps", hall, STATE, () -> hall.same());
+        Asked.due("20 a step of these", hall.step(3), 30);
+    }
+
+    private static void sizeOfSteps() {
+        Rewritehall hall = Asked.hall(0, 1, 2, 1);
+        Asked.tell(hall, "d(x0)=c(x0,x0)");
+        hall.complete();
+        Asked.push(hall, "d(" + Asked.nested("b", 18, "a") + ")");
+        Asked.due("20 size 39", hall.steps(0), 1);
+        hall.drop();
+        Asked.push(hall, "b(d(" + Asked.nested("b", 18, "a") + "))");
+        Asked.due("20 size 40", hall.steps(0), 1);
+        hall.drop();
+        Asked.push(hall, "d(" + Asked.nested("b", 19, "a") + ")");
+        Asked.refused("20 size 41", hall, STATE, () -> hall.step(0));
+        Asked.refused("21 size 41", hall, STATE, () -> hall.end(0));
+        Asked.due("23 it is a redex nevertheless", hall.redexes(), 1);
+        Asked.due("13 it is a redex nevertheless", hall.ofPlace(0, 4), 1);
+    }
+
+    /** d(x0) > x0, if x0 becomes a: b(b(x0)) > x0 is the rule for that. */
+    private static void conditionsHold() {
+        Rewritehall hall = Asked.hall(0, 1, 2, 1);
+        Asked.tell(hall, "b(b(x0))=x0");
+        hall.complete();
+        Asked.push(hall, "d(x0)", "b(x0)", "x0", "a");
+        hall.condition();
+        Asked.push(hall, "d(b(b(a)))");
+        Asked.due("23 two redexes", hall.redexes(), 2);
+        Asked.due("20 the condition holds", hall.step(0), 0);
+        Asked.due("20 text", hall.text(0), "b(b(b(a)))");
+        hall.drop();
+        Asked.push(hall, "d(b(a))");
+        Asked.due("20 it does not hold", hall.step(0), -1);
+        hall.drop();
+        Asked.push(hall, "d(d(b(a)))", "d(d(a))");
+        Asked.due("20 the outer one does not hold", hall.redexes(), 1);
+        Asked.due("21 inside first", hall.end(0), 1);
+        Asked.due("21 text", hall.text(0), "d(b(a))");
+        Asked.push(hall, "d(a)", "b(a)");
+        Asked.due("34 plain is without conditional ones", hall.same(), false);
+    }
+
+    private static void conditionsComeLast() {
+        Rewritehall hall = Asked.hall(0, 1, 2, 1);
+        Asked.push(hall, "d(x0)", "x0", "x0", "x0", "d(x0)", "b(x0)", "x0", "x0");
+        hall.condition();
+        Asked.due("18 its place", hall.many(6), 1);
+        hall.condition();
+        Asked.push(hall, "d(a)");
+        hall.step(0);
+        Asked.due("3 the first one in the row", hall.text(0), "b(a)");
+        Asked.tell(hall, "d(x0)=c(x0,x0)");
+        hall.complete();
+        Asked.push(hall, "d(a)");
+        hall.step(0);
+        Asked.due("3 rules are ahead", hall.text(0), "c(a,a)");
+    }
+
+    private static void boundsOfConditions() {
+        Rewritehall hall = Asked.hall(0, 1, 2, 1);
+        Asked.push(hall, "d(x0)", "a", "c(x0,x0)", "a");
+        hall.condition();
+        Asked.push(hall, "d(" + Asked.nested("b", 18, "a") + ")");
+        Asked.due("20 size 39 of one", hall.step(0), -1);
+        hall.drop();
+        Asked.push(hall, "d(" + Asked.nested("b", 19, "a") + ")");
+        Asked.refused("20 size 41 of one", hall, STATE, () -> hall.step(0));
+        Asked.refused("23 size 41 of one", hall, STATE, () -> hall.redexes());
+        Asked.refused("13 size 41 of one", hall, STATE, () -> hall.ofPlace(0, 4));
+        Asked.due("13 not asked for", hall.ofPlace(0, 2), 21);
+        Asked.due("13 at another place", hall.ofPlace(1, 4), 0);
+        Rewritehall steps = Asked.hall(0, 1, 1, 1);
+        Asked.tell(steps, "c(x0)=b(b(x0))", "b(b(b(b(x0))))=b(b(x0))");
+        steps.finish(12);
+        Asked.push(steps, "d(x0)", "a", "x0", "a");
+        steps.condition();
+        Asked.push(steps, "d(" + Asked.nested("c", 30, "b(b(a))") + ")");
+        Asked.due("13 61 steps at most by the place 0", steps.ofPlace(1, 4), 1);
+        Asked.due("13 as many as may be", steps.ofPlace(0, 4), 0);
+        steps.drop();
+        Asked.push(steps, "d(" + Asked.nested("c", 35, "a") + ")");
+        Asked.refused("13 too many steps", steps, STATE, () -> steps.ofPlace(0, 4));
+        Asked.refused("20 too many steps", steps, STATE, () -> steps.step(0));
+        Asked.due("13 inside it is a redex", steps.ofPlace(1, 4), 1);
+    }
+
+    /** By the strategy 0 places behind the first redex are not looked at, by others they are. */
+    private static void boundsThatAreNotReached() {
+        Rewritehall hall = Asked.hall(0, 1, 2, 1);
+        Asked.push(hall, "d(x0)", "a", "c(x0,x0)", "a");
+        hall.condition();
+        Asked.tell(hall, "b(b(a))=a");
+        hall.complete();
+        Asked.push(hall, "c(b(b(a)),d(" + Asked.nested("b", 24, "x0") + "))");
+        Asked.refused("20 all are looked at", hall, STATE, () -> hall.step(1));
+        Asked.refused("20 all are looked at", hall, STATE, () -> hall.step(2));
+        Asked.refused("20 all are looked at", hall, STATE, () -> hall.step(3));
+        Asked.refused("21 later it is looked at", hall, STATE, () -> hall.end(0));
+        Asked.due("20 up to the first one", hall.step(0), 1);
+    }
+
+    /** d(x0) > a, if x0 becomes a: each of so many d asks for all below it. */
+    private static void deepConditions() {
+        Rewritehall hall = Asked.hall(0, 1, 2, 1);
+        Asked.push(hall, "d(x0)", "a", "x0", "a");
+        hall.condition();
+        Asked.push(hall, Asked.nested("d", 39, "a"));
+        Asked.due("23 all hold", hall.redexes(), 39);
+        Asked.due("22 at once", hall.steps(0), 1);
+        Asked.due("22 from within", hall.steps(3), 39);
+        hall.drop();
+        Asked.push(hall, Asked.nested("d", 39, "x0"));
+        Asked.due("23 none holds", hall.redexes(), 0);
+    }
+}
