@@ -757,13 +757,7 @@ public final class Rewritehall {
     }
 
     public String proofUse(int i) throws IllegalStateException, NoSuchElementException, IndexOutOfBoundsException {
-        int count = proved();
-        if (count == BROKEN) {
-            throw new IllegalStateException("there are no two terms, or a bound is not kept");
-        }
-        if (count == NONE) {
-            throw new NoSuchElementException("the ends are not alike");
-        }
+        int count = proofSize();
         if (i < 0 || i >= count) {
             throw new IndexOutOfBoundsException("no such use");
         }
@@ -776,13 +770,7 @@ public final class Rewritehall {
     }
 
     public String proofTerm(int i) throws IllegalStateException, NoSuchElementException, IndexOutOfBoundsException {
-        int count = proved();
-        if (count == BROKEN) {
-            throw new IllegalStateException("there are no two terms, or a bound is not kept");
-        }
-        if (count == NONE) {
-            throw new NoSuchElementException("the ends are not alike");
-        }
+        int count = proofSize();
         if (i < 0 || i > count) {
             throw new IndexOutOfBoundsException("no such term");
         }
@@ -808,13 +796,7 @@ public final class Rewritehall {
     }
 
     public boolean isProved() throws IllegalStateException, NoSuchElementException {
-        int count = proved();
-        if (count == BROKEN) {
-            throw new IllegalStateException("there are no two terms, or a bound is not kept");
-        }
-        if (count == NONE) {
-            throw new NoSuchElementException("the ends are not alike");
-        }
+        int count = proofSize();
         Word top = fromTop(0);
         Word below = fromTop(1);
         return count >= 0 && top != null && below != null
