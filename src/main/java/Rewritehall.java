@@ -70,8 +70,7 @@ public final class Rewritehall {
     private int knocks;
     private final Orders orders = new Orders();
     private final Rows rows = new Rows();
-    private final Binding binding = new Binding();
-    private final Stepper stepper = new Stepper(rows, orders, binding);
+    private final Stepper stepper = new Stepper(rows, orders);
     private final Meeting meeting = new Meeting();
     private final Completion completion = new Completion(rows, orders, stepper, meeting);
     private final Proof proof = new Proof();
@@ -81,7 +80,6 @@ public final class Rewritehall {
     private final Word second = new Word(MOST_SIZE + 1);
     private final int[] names = new int[NAMES];
     private final int[] open = new int[LARGE];
-    private final int[] items = new int[MOST_SIZE + 1];
     private final Word sorted = new Word(MOST_SIZE + 1);
     private final StringBuilder out = new StringBuilder();
 
@@ -322,12 +320,13 @@ public final class Rewritehall {
         if (top == null || below == null) {
             throw new IllegalStateException("there are no two terms");
         }
-        if (!binding.takes(below.at, below.size, top, 0)) {
+        if (!stepper.binding.takes(below.at, below.size, top, 0)) {
             return "-";
         }
+        int[] bound = stepper.binding.bound;
         out.setLength(0);
-        for (int v = 0; v < binding.bound.length; v++) {
-            int p = binding.bound[v];
+        for (int v = 0; v < bound.length; v++) {
+            int p = bound[v];
             if (p < 0) {
                 continue;
             }
@@ -839,6 +838,8 @@ public final class Rewritehall {
 
     /** Sorts the items of the sum at p, whose arguments are in their sum form. */
     private void sort(Word w, int p, int sum) {
+        // No names are needed while this lasts.
+        int[] items = names;
         int end = Word.behind(w.at, p);
         int count = 0;
         int q = p;
@@ -1618,7 +1619,7 @@ public final class Rewritehall {
     private static final class Stepper {
         private final Rows rows;
         private final Orders orders;
-        private final Binding binding;
+        final Binding binding = new Binding();
         private final Word comes = new Word(COMES);
         private final Word spare = new Word(MOST_SIZE + 1);
         private final Word[] ones = new Word[DEPTH];
@@ -1634,10 +1635,9 @@ public final class Rewritehall {
         private boolean isBack;
         private int[] side;
 
-        Stepper(Rows rows, Orders orders, Binding binding) {
+        Stepper(Rows rows, Orders orders) {
             this.rows = rows;
             this.orders = orders;
-            this.binding = binding;
             for (int k = 0; k < DEPTH; k++) {
                 ones[k] = new Word(MOST_SIZE + 1);
                 others[k] = new Word(MOST_SIZE + 1);
@@ -2058,7 +2058,7 @@ public final class Rewritehall {
         private boolean isAddedWhole(int p, Word out) {
             int n = 1;
             walk[0] = p;
-            while (n > 0 && n + 1 < walk.length) {
+            for (int k = 0; k <= MOST_SIZE && n > 0 && n + 1 < walk.length; k++) {
                 n--;
                 int q = resolved(walk[n]);
                 if (q < 0 || !out.adds(t, q, q + 1, MOST_SIZE)) {

@@ -442,5 +442,20 @@ public final class CompletionTest {
         Asked.due("27 the last one", hall.row(3, 3), "e(x0)>a");
         Asked.due("33 four", hall.ofRule(3, 2), 4);
         Asked.due("45 sound", hall.isSound(), true);
+        Rewritehall far = Asked.hall(1, 1, 1, 1, 1);
+        Asked.tell(far, "a(a(x0))=x0");
+        for (int k = 1; k < 5; k++) {
+            String letter = String.valueOf((char) ('a' + k));
+            String below = String.valueOf((char) ('a' + k - 1));
+            Asked.tell(far, letter + "(x0)=" + Asked.nested(below, 38, "x0"));
+        }
+        Asked.due("28 five", far.finish(12), 5);
+        int[] uses = {1, 20, 38 * 20 + 1, 38 * 761 + 1, 1000000};
+        for (int k = 0; k < 5; k++) {
+            Asked.due("33 uses of " + far.row(3, k), far.ofRule(k, 2), uses[k]);
+        }
+        Asked.push(far, "c(a(x1))", "a(x1)");
+        Asked.refused("35 761 uses", far, STATE, () -> far.proofSize());
+        Asked.due("34 nevertheless", far.same(), true);
     }
 }
