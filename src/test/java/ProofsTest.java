@@ -22,6 +22,7 @@ public final class ProofsTest {
         unturnedUses();
         groups();
         aBoundThatIsJustKept();
+        aChainAtTheBound();
         aBoundOfSteps();
         aProofOfWhatAnOldRuleSaid();
         Asked.finish("ProofsTest");
@@ -224,6 +225,35 @@ public final class ProofsTest {
         Asked.refused("36 301 uses", far, STATE, () -> far.proofUse(0));
         Asked.refused("37 301 uses", far, STATE, () -> far.proofTerm(0));
         Asked.refused("38 301 uses", far, STATE, () -> far.isProved());
+    }
+
+    /** b has 13 uses; c has 300, whether it is there ahead of the rule for b or behind it; d has one more. */
+    private static void aChainAtTheBound() {
+        for (int late = 0; late < 2; late++) {
+            Rewritehall hall = Asked.hall(1, 1, 1, 1);
+            String c = "c(x0)=" + Asked.nested("b", 23, "x0");
+            Asked.tell(hall, "a(a(x0))=x0", "b(x0)=" + Asked.nested("a", 24, "x0"));
+            if (late == 0) {
+                Asked.tell(hall, c);
+            }
+            hall.finish(12);
+            if (late == 1) {
+                Asked.tell(hall, c);
+            }
+            Asked.tell(hall, "d(x0)=c(x0)");
+            hall.finish(12);
+            for (int k = 0; k < 4; k++) {
+                int uses = hall.row(3, k).equals("c(x0)>x0") ? 300 : hall.row(3, k).equals("d(x0)>x0") ? 301
+                    : hall.row(3, k).equals("b(x0)>x0") ? 13 : 1;
+                Asked.due("33 uses of " + hall.row(3, k), hall.ofRule(k, 2), uses);
+            }
+            Asked.push(hall, "c(a(x3))", "a(x3)");
+            Asked.due("35 300 uses of a rule", hall.proofSize(), 300);
+            Asked.due("38 300 uses of a rule", hall.isProved(), true);
+            Asked.due("37 within", hall.proofTerm(300), "a(x3)");
+            Asked.push(hall, "d(x0)", "x0");
+            Asked.refused("35 301 uses of a rule", hall, STATE, () -> hall.proofSize());
+        }
     }
 
     private static void aBoundOfSteps() {

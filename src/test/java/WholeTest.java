@@ -183,6 +183,10 @@ public final class WholeTest {
         Asked.due("43 not turned", hall.table(2), "0,0010,00");
         hall.drop();
         hall.drop();
+        Asked.push(hall, "x0", "a");
+        Asked.due("43 the very first ones", hall.table(2), "0,0000,00");
+        hall.drop();
+        hall.drop();
         Asked.push(hall, "c(a)", "c(c(a))");
         Asked.due("43 the first ones", hall.table(2), "0,0000,10");
         Asked.tell(hall, "a=c(a)");
