@@ -1560,7 +1560,7 @@ public final class Rewritehall {
 
     /** For each variable of a pattern the place of what is put for it. */
     private static final class Binding {
-        final int[] bound = new int[NAMES];
+        final int[] bound = new int[APART];
 
         /** Whether the pattern matches the part of w at p. */
         boolean takes(int[] pattern, int n, Word w, int p) {
