@@ -26,13 +26,9 @@ public final class Rewritehall {
     private static final int APART = 64;
     /** A side that comes has at most 20 variables, each with less than 40 in its place. */
     private static final int COMES = 1000;
-    /** Terms of a proof may be large; none is known to come near this. */
-    private static final int LARGE = 20000;
-    /** Conditions in conditions go so deep at most; three calls stand open for each. */
-    private static final int DEPTH = 80;
+    /** A text that is longer has no room beside all else. */
+    private static final int MOST_TEXT = 3000000;
     private static final int FUEL = 1000000;
-    private static final int HEADS = 2048;
-    private static final int NOTES = 150000;
 
     private static final int[] GROUPS_TOLD = {
         5, 0, -1, -1,
@@ -73,13 +69,13 @@ public final class Rewritehall {
     private final Stepper stepper = new Stepper(rows, orders);
     private final Meeting meeting = new Meeting();
     private final Completion completion = new Completion(rows, orders, stepper, meeting);
-    private final Proof proof = new Proof();
+    private final Proof proof = new Proof(stepper.forest);
     private final Tables values = new Tables(rows, arities);
     private final Grounds grounds = new Grounds(arities, stepper);
     private final Word first = new Word(MOST_SIZE + 1);
     private final Word second = new Word(MOST_SIZE + 1);
     private final int[] names = new int[NAMES];
-    private final int[] open = new int[LARGE];
+    private final int[] open = new int[MOST_SIZE + 1];
     private final Word sorted = new Word(MOST_SIZE + 1);
     private final StringBuilder out = new StringBuilder();
 
@@ -294,7 +290,7 @@ public final class Rewritehall {
                 return around(top.at, place);
             case 4:
                 stepper.refresh();
-                int found = stepper.useAt(top, place, 0);
+                int found = stepper.useAt(top, place);
                 if (found == BROKEN) {
                     throw new IllegalStateException("a bound is not kept");
                 }
@@ -320,10 +316,10 @@ public final class Rewritehall {
         if (top == null || below == null) {
             throw new IllegalStateException("there are no two terms");
         }
-        if (!stepper.binding.takes(below.at, below.size, top, 0)) {
+        if (!stepper.takes(below.at, below.size, top, 0)) {
             return "-";
         }
-        int[] bound = stepper.binding.bound;
+        int[] bound = stepper.bound;
         out.setLength(0);
         for (int v = 0; v < bound.length; v++) {
             int p = bound[v];
@@ -764,7 +760,8 @@ public final class Rewritehall {
             throw new IllegalStateException("a bound is not kept");
         }
         out.setLength(0);
-        out.append(proof.number).append(proof.isBack ? '<' : '>').append(proof.place);
+        out.append(proof.number).append(proof.isBack ? '<' : '>');
+        proof.writePlace(out);
         return out.toString();
     }
 
@@ -773,10 +770,11 @@ public final class Rewritehall {
         if (i < 0 || i > count) {
             throw new IndexOutOfBoundsException("no such term");
         }
-        if (!isWalked(i)) {
-            throw new IllegalStateException("a bound is not kept");
+        char[] signs = isWalked(i) ? stepper.forest.written(proof.now()) : null;
+        if (signs == null) {
+            throw new IllegalStateException("there is no room for a text as long as that");
         }
-        return textOf(proof.now);
+        return new String(signs);
     }
 
     /** Walks the proof as many uses far. */
@@ -1558,9 +1556,466 @@ public final class Rewritehall {
         }
     }
 
-    /** For each variable of a pattern the place of what is put for it. */
-    private static final class Binding {
+    /**
+     * Terms, each held once: a node is a sign with the nodes of its arguments, whose numbers are smaller than
+     * its own. A key holds, from the lowest bit on, the sign (4 bits; 15 is a variable), two arguments (21 each;
+     * of a variable the first one is its number), the size (6; 63 if it is greater), a number of steps (6),
+     * whether it is open (1), a stage (4), and whether it is kept as room is made (the sign).
+     * A note holds the next node in its row of the table (21), and what comes for it and its end (21 each).
+     * What stages, steps, coming and ends are, is for those to say who ask for them.
+     */
+    private static final class Forest {
+        static final int VARIABLE = 15;
+        /** Smaller numbers are no nodes. */
+        static final int FIRST = 4;
+        private static final int BITS = 21;
+        private static final int MOST = 1 << BITS;
+        private static final int ROOM = 1 << 12;
+        private static final int RESERVE = 1 << 15;
+        private static final long TERM = (1L << 46) - 1;
+        private static final long KEPT = 1L << 63;
+        private static final long NINE_DIGITS = 1000000000;
+        private long[] keys = new long[ROOM];
+        private long[] notes = new long[ROOM];
+        private int[] heads = new int[ROOM / 4];
+        private int count = FIRST;
+        private final int[] held = new int[2 * MOST_SIZE];
+        /** The way to a part: the nodes above it, and whether it goes on with the second argument of each. */
+        final int[] way = new int[MOST_SIZE + 2];
+        final boolean[] isSecond = new boolean[MOST_SIZE + 2];
+
+        void clear() {
+            count = FIRST;
+            Arrays.fill(heads, 0);
+        }
+
+        private static int bits(long word, int from, int n) {
+            return (int) (word >>> from) & (1 << n) - 1;
+        }
+
+        private static long with(long word, int from, int n, long value) {
+            long mask = (1L << n) - 1 << from;
+            return word & ~mask | value << from & mask;
+        }
+
+        private long keyOf(int n) {
+            return n >= FIRST && n < count && n < keys.length ? keys[n] : 0;
+        }
+
+        private long noteOf(int n) {
+            return n >= FIRST && n < count && n < notes.length ? notes[n] : 0;
+        }
+
+        int sign(int n) {
+            return bits(keyOf(n), 0, 4);
+        }
+
+        int arguments(int n) {
+            int c = sign(n);
+            return c == VARIABLE ? 0 : c % 3;
+        }
+
+        int first(int n) {
+            return bits(keyOf(n), 4, BITS);
+        }
+
+        int second(int n) {
+            return bits(keyOf(n), 25, BITS);
+        }
+
+        int sizeOf(int n) {
+            return bits(keyOf(n), 46, 6);
+        }
+
+        int stepsOf(int n) {
+            return bits(keyOf(n), 52, 6);
+        }
+
+        boolean isOpen(int n) {
+            return bits(keyOf(n), 58, 1) == 1;
+        }
+
+        int stageOf(int n) {
+            return bits(keyOf(n), 59, 4);
+        }
+
+        int comesOf(int n) {
+            return bits(noteOf(n), BITS, BITS);
+        }
+
+        int endOf(int n) {
+            return bits(noteOf(n), 2 * BITS, BITS);
+        }
+
+        void setStage(int n, int stage, int comes) {
+            if (n >= FIRST && n < count && n < keys.length && n < notes.length) {
+                keys[n] = with(keys[n], 59, 4, stage);
+                notes[n] = with(notes[n], BITS, BITS, comes);
+            }
+        }
+
+        void setEnd(int n, boolean isOpen, int end, int steps) {
+            if (n >= FIRST && n < count && n < keys.length && n < notes.length) {
+                keys[n] = with(with(keys[n], 52, 6, steps), 58, 1, isOpen ? 1 : 0);
+                notes[n] = with(notes[n], 2 * BITS, BITS, end);
+            }
+        }
+
+        private int headOf(long key) {
+            long h = (key ^ key >>> 25) * 0x9E3779B97F4A7C15L;
+            return (int) (h >>> 40) & heads.length - 1;
+        }
+
+        /** The node of a sign with these arguments; 0 if there is no room. */
+        int node(int sign, int a, int b) {
+            long key = with(with(sign, 4, BITS, a), 25, BITS, b);
+            int head = headOf(key);
+            // Each node of a row has a smaller number than the one ahead of it.
+            for (int n = heads[head]; n >= FIRST && n < count && n < notes.length; n = bits(notes[n], 0, BITS)) {
+                if ((keys[n] & TERM) == key) {
+                    return n;
+                }
+            }
+            if (count >= keys.length) {
+                if (count >= MOST) {
+                    return 0;
+                }
+                grow();
+                head = headOf(key);
+            }
+            int arguments = sign == VARIABLE ? 0 : sign % 3;
+            int size = 1 + (arguments > 0 ? sizeOf(a) : 0) + (arguments > 1 ? sizeOf(b) : 0);
+            keys[count] = with(key, 46, 6, Math.min(63, size));
+            notes[count] = heads[head];
+            heads[head] = count;
+            count++;
+            return count - 1;
+        }
+
+        private void grow() {
+            int length = Math.min(MOST, 8 * keys.length);
+            keys = Arrays.copyOf(keys, length);
+            notes = Arrays.copyOf(notes, length);
+            heads = new int[length / 4];
+            link();
+        }
+
+        /** Brings all nodes into the rows of the table. */
+        private void link() {
+            Arrays.fill(heads, 0);
+            for (int n = FIRST; n < count && n < keys.length && n < notes.length; n++) {
+                int head = headOf(keys[n] & TERM);
+                notes[n] = with(notes[n], 0, BITS, heads[head]);
+                heads[head] = n;
+            }
+        }
+
+        /** The node of the term from one place up to another; puts tells from a place on how many, and which, nodes are put for variables. */
+        int planted(int[] t, int from, int to, int[] puts, int at) {
+            int n = at >= 0 && at < puts.length ? puts[at] : 0;
+            int h = 0;
+            for (int k = Math.min(to, t.length) - 1; k >= from && k >= 0; k--) {
+                int c = t[k];
+                int made;
+                if (c < 0) {
+                    int p = -1 - c < n ? at - c : puts.length;
+                    made = p >= 0 && p < puts.length ? puts[p] : node(VARIABLE, -1 - c, 0);
+                } else {
+                    int arguments = c % 3;
+                    if (h < arguments) {
+                        return 0;
+                    }
+                    int a = arguments > 0 ? held[h - 1] : 0;
+                    int b = arguments > 1 ? held[h - 2] : 0;
+                    h -= arguments;
+                    made = node(c, a, b);
+                }
+                if (made < FIRST || h >= held.length) {
+                    return 0;
+                }
+                held[h] = made;
+                h++;
+            }
+            return h == 1 ? held[0] : 0;
+        }
+
+        /** Writes a term of the bound of size. */
+        void write(int node, Word out) {
+            int h = 1;
+            held[0] = node;
+            out.size = 0;
+            while (h > 0 && h + 1 < held.length && out.size < out.at.length) {
+                int n = held[h - 1];
+                int c = sign(n);
+                h--;
+                out.at[out.size] = c == VARIABLE ? -1 - first(n) : c;
+                out.size++;
+                if (arguments(n) > 1) {
+                    held[h] = second(n);
+                    h++;
+                }
+                if (arguments(n) > 0) {
+                    held[h] = first(n);
+                    h++;
+                }
+            }
+        }
+
+        /** What becomes of the term on the way to a part, as that part becomes something else. */
+        int rebuilt(int depth, int made) {
+            int n = made;
+            for (int k = Math.min(depth, way.length) - 1; k >= 0 && n >= FIRST; k--) {
+                int over = way[k];
+                n = isSecond[k] ? node(sign(over), first(over), n) : node(sign(over), n, second(over));
+            }
+            return n;
+        }
+
+        boolean isNearlyFull() {
+            return count > MOST - RESERVE;
+        }
+
+        /**
+         * Makes room: what is young or open is kept, and what that needs. Tells the new number of an open node;
+         * 0 if there is too little room then.
+         */
+        int makeRoom(int open) {
+            for (int n = FIRST; n < count && n < keys.length; n++) {
+                if (n >= count / 2 || isOpen(n)) {
+                    keys[n] |= KEPT;
+                }
+            }
+            boolean isMore = true;
+            for (int k = 0; k < 60 && isMore; k++) {
+                isMore = spreads(true);
+            }
+            spreads(false);
+            int kept = number();
+            int moved = bits(noteOf(open), 0, BITS);
+            rename();
+            move(kept);
+            link();
+            return count > MOST - 4 * RESERVE ? 0 : moved;
+        }
+
+        /** What is kept keeps its arguments, and what else it tells of; tells whether more is kept than was looked at. */
+        private boolean spreads(boolean isAll) {
+            boolean isMore = false;
+            for (int n = count - 1; n >= FIRST && n < keys.length; n--) {
+                if (keys[n] >= 0) {
+                    continue;
+                }
+                int arguments = arguments(n);
+                if (arguments > 0) {
+                    keep(first(n));
+                }
+                if (arguments > 1) {
+                    keep(second(n));
+                }
+                if (isAll) {
+                    isMore = keep(comesOf(n)) && comesOf(n) > n || isMore;
+                    isMore = keep(endOf(n)) && endOf(n) > n || isMore;
+                }
+            }
+            return isMore;
+        }
+
+        private boolean keep(int n) {
+            if (n < FIRST || n >= count || n >= keys.length || keys[n] < 0) {
+                return false;
+            }
+            keys[n] |= KEPT;
+            return true;
+        }
+
+        /** Each node that is kept notes its new number; tells the one behind the last. */
+        private int number() {
+            int next = FIRST;
+            for (int n = FIRST; n < count && n < keys.length && n < notes.length; n++) {
+                if (keys[n] < 0) {
+                    notes[n] = with(notes[n], 0, BITS, next);
+                    next++;
+                }
+            }
+            return next;
+        }
+
+        /** The new number of a node; 0 if it is not kept. */
+        private int renamed(int n) {
+            return n < FIRST ? n : keyOf(n) < 0 ? bits(noteOf(n), 0, BITS) : 0;
+        }
+
+        private void rename() {
+            for (int n = FIRST; n < count && n < keys.length && n < notes.length; n++) {
+                if (keys[n] >= 0) {
+                    continue;
+                }
+                int arguments = arguments(n);
+                int comes = renamed(comesOf(n));
+                int end = renamed(endOf(n));
+                setStage(n, comes == 0 ? 0 : stageOf(n), comes);
+                setEnd(n, isOpen(n), end, end == 0 && !isOpen(n) ? 0 : stepsOf(n));
+                if (arguments > 0) {
+                    keys[n] = with(keys[n], 4, BITS, renamed(first(n)));
+                }
+                if (arguments > 1) {
+                    keys[n] = with(keys[n], 25, BITS, renamed(second(n)));
+                }
+            }
+        }
+
+        private void move(int behind) {
+            for (int n = FIRST; n < count && n < keys.length && n < notes.length; n++) {
+                int to = renamed(n);
+                if (keys[n] < 0 && to >= FIRST && to <= n) {
+                    keys[to] = keys[n] & ~KEPT;
+                    notes[to] = notes[n];
+                }
+            }
+            count = behind;
+        }
+
+        private void tell(int n, long value) {
+            notes[n] = with(notes[n], BITS, 2 * BITS, value);
+        }
+
+        private long told(int n) {
+            return noteOf(n) >>> BITS;
+        }
+
+        /** Tells of each node the next nine digits of its size, from the last ones on; whether there are any. */
+        boolean areSizesTold(boolean isFirst) {
+            boolean isAny = false;
+            for (int n = FIRST; n < count && n < notes.length; n++) {
+                int arguments = arguments(n);
+                long sum = isFirst ? 1 : told(n) & 1;
+                sum += arguments > 0 ? toldSize(first(n)) : 0;
+                sum += arguments > 1 ? toldSize(second(n)) : 0;
+                // What is over is 0 or 1.
+                tell(n, sum % NINE_DIGITS * 2 + sum / NINE_DIGITS);
+                isAny = isAny || sum > 0;
+            }
+            return isAny;
+        }
+
+        long toldSize(int n) {
+            return told(n) >>> 1;
+        }
+
+        private void tellLengths() {
+            for (int n = FIRST; n < count && n < notes.length; n++) {
+                int arguments = arguments(n);
+                long length = sign(n) != VARIABLE ? 1 : first(n) < 10 ? 2 : 3;
+                length += arguments > 0 ? 2 + told(first(n)) : 0;
+                length += arguments > 1 ? 1 + told(second(n)) : 0;
+                tell(n, Math.min(length, MOST_TEXT + 1));
+            }
+        }
+
+        /** The text of a term of any size; null if there is no room for it. */
+        char[] written(int term) {
+            tellLengths();
+            int length = (int) told(term);
+            if (length < 1 || length > MOST_TEXT) {
+                return null;
+            }
+            char[] out = new char[length];
+            held[0] = term;
+            held[1] = 0;
+            int h = 2;
+            // Each time at least one sign is written.
+            for (int k = 0; k < length && h > 1 && h + 4 <= held.length; k++) {
+                h -= 2;
+                h = writeSign(held[h], held[h + 1], out, h);
+            }
+            return out;
+        }
+
+        /** Writes a sign with what is around its arguments; these are held, the shorter one last, so that few are. */
+        private int writeSign(int n, int from, char[] out, int h) {
+            int c = sign(n);
+            int arguments = arguments(n);
+            int a = first(n);
+            int b = second(n);
+            if (c == VARIABLE) {
+                set(out, from, 'x');
+                int last = a < 10 ? from + 1 : from + 2;
+                set(out, from + 1, (char) ('0' + a / 10 % 10));
+                set(out, last, (char) ('0' + a % 10));
+                return h;
+            }
+            set(out, from, (char) ('a' + c / 3));
+            if (arguments == 0) {
+                return h;
+            }
+            int behind = from + 2 + (int) told(a);
+            set(out, from + 1, '(');
+            set(out, behind, ',');
+            set(out, from + (int) told(n) - 1, ')');
+            if (arguments == 1) {
+                return hold(a, from + 2, h);
+            }
+            if (told(a) > told(b)) {
+                return hold(b, behind + 1, hold(a, from + 2, h));
+            }
+            return hold(a, from + 2, hold(b, behind + 1, h));
+        }
+
+        private static void set(char[] out, int at, char sign) {
+            if (at >= 0 && at < out.length) {
+                out[at] = sign;
+            }
+        }
+
+        private int hold(int n, int from, int h) {
+            if (h < 0 || h + 1 >= held.length) {
+                return h;
+            }
+            held[h] = n;
+            held[h + 1] = from;
+            return h + 2;
+        }
+    }
+
+    /** Steps and ends. */
+    private static final class Stepper {
+        /** What comes for a part: nothing, or something above the bound of size; or what has to be found first. */
+        private static final int NO_USE = 1;
+        private static final int TOO_LARGE = 2;
+        private static final int WANTS = 3;
+        /** Stages of a look: 1 + 2k with no use ahead of the conditional rule k, 2 + 2k with the end of its one. */
+        private static final int LOOKED = 15;
+        private static final int MOST_LOOKS = 1 << 26;
+        private static final int[] NO_PUTS = {0};
+        private final Rows rows;
+        private final Orders orders;
+        final Forest forest = new Forest();
+        /** For each variable of the pattern that was found last the place of what is put for it. */
         final int[] bound = new int[APART];
+        private final Word comes = new Word(COMES);
+        private final Word came = new Word(MOST_SIZE + 1);
+        private final Word spare = new Word(MOST_SIZE + 1);
+        private final Word part = new Word(MOST_SIZE + 1);
+        private final boolean[] isRedex = new boolean[MOST_SIZE + 1];
+        /** The use that was found last, and whether what comes by it is too large. */
+        private Pair pair;
+        private boolean isBack;
+        private int[] side;
+        private boolean isLarge;
+        /** The node whose end has to be found first. */
+        private int wanted;
+
+        Stepper(Rows rows, Orders orders) {
+            this.rows = rows;
+            this.orders = orders;
+        }
+
+        /** To be called ahead of all that is full, once for each call of the face. */
+        void refresh() {
+            if (rows.guardedCount > 0) {
+                forest.clear();
+            }
+        }
 
         /** Whether the pattern matches the part of w at p. */
         boolean takes(int[] pattern, int n, Word w, int p) {
@@ -1597,7 +2052,7 @@ public final class Rewritehall {
         }
 
         /** Adds a side to out, with parts of w for its variables; not if one has none, or out gets too large. */
-        boolean makes(int[] side, Word w, Word out, int most) {
+        private boolean makes(int[] side, Word w, Word out, int most) {
             for (int k = 0; k < side.length; k++) {
                 int v = -1 - side[k];
                 if (v < 0) {
@@ -1613,52 +2068,12 @@ public final class Rewritehall {
             }
             return true;
         }
-    }
-
-    /** Steps and ends; and the ends of conditions that were found, for the time of one call. */
-    private static final class Stepper {
-        private final Rows rows;
-        private final Orders orders;
-        final Binding binding = new Binding();
-        private final Word comes = new Word(COMES);
-        private final Word spare = new Word(MOST_SIZE + 1);
-        private final Word[] ones = new Word[DEPTH];
-        private final Word[] others = new Word[DEPTH];
-        private final Word[] keys = new Word[DEPTH + 1];
-        private final boolean[] isRedex = new boolean[MOST_SIZE + 1];
-        private final int[] heads = new int[HEADS];
-        private final int[] notes = new int[NOTES];
-        private int noted;
-        private int fuel;
-        /** The use that was found last. */
-        private Pair pair;
-        private boolean isBack;
-        private int[] side;
-
-        Stepper(Rows rows, Orders orders) {
-            this.rows = rows;
-            this.orders = orders;
-            for (int k = 0; k < DEPTH; k++) {
-                ones[k] = new Word(MOST_SIZE + 1);
-                others[k] = new Word(MOST_SIZE + 1);
-                keys[k + 1] = new Word(MOST_SIZE + 1);
-            }
-        }
-
-        /** To be called ahead of all that is full, once for each call of the face. */
-        void refresh() {
-            fuel = FUEL;
-            if (rows.guardedCount > 0) {
-                Arrays.fill(heads, NONE);
-                noted = 0;
-            }
-        }
 
         /** Looks for the first plain use at p. */
         boolean isPlain(Word w, int p) {
             for (int k = 0; k < rows.ruleCount && k < rows.rules.length; k++) {
                 Pair rule = rows.rules[k];
-                if (rule != null && binding.takes(rule.left, rule.left.length, w, p)) {
+                if (rule != null && takes(rule.left, rule.left.length, w, p)) {
                     pair = rule;
                     isBack = false;
                     side = rule.right;
@@ -1673,7 +2088,7 @@ public final class Rewritehall {
                 int[] goes = k % 2 == 0 ? two.left : two.right;
                 int[] come = k % 2 == 0 ? two.right : two.left;
                 comes.size = 0;
-                if (binding.takes(goes, goes.length, w, p) && binding.makes(come, w, comes, COMES)
+                if (takes(goes, goes.length, w, p) && makes(come, w, comes, COMES)
                         && orders.isGreater(orders.which, w.at, p, Word.behind(w.at, p), comes.at, comes.size)) {
                     pair = two;
                     isBack = k % 2 == 1;
@@ -1684,97 +2099,213 @@ public final class Rewritehall {
             return false;
         }
 
-        /** Looks for the first use at p: 1 if there is one, 0 if there is none. */
-        int useAt(Word w, int p, int depth) {
-            if (isPlain(w, p)) {
-                return 1;
-            }
-            fuel--;
-            if (fuel < 0) {
-                return BROKEN;
-            }
-            for (int k = 0; k < rows.guardedCount && k < rows.guarded.length; k++) {
-                Pair rule = rows.guarded[k];
-                if (rule == null || !binding.takes(rule.left, rule.left.length, w, p)) {
-                    continue;
-                }
-                int holds = holds(rule, w, depth);
-                if (holds == BROKEN) {
-                    return BROKEN;
-                }
-                // The conditions have left other things bound.
-                if (holds == 1 && binding.takes(rule.left, rule.left.length, w, p)) {
-                    pair = null;
-                    isBack = false;
-                    side = rule.right;
-                    return 1;
-                }
-            }
-            return 0;
+        /** Makes what comes by the use that was found in w. */
+        private void bring(Word w) {
+            came.size = 0;
+            isLarge = side == null || !makes(side, w, came, MOST_SIZE);
         }
 
-        private int holds(Pair rule, Word w, int depth) {
-            if (depth < 0 || depth >= DEPTH) {
-                return BROKEN;
-            }
-            Word one = ones[depth];
-            Word other = others[depth];
-            if (one == null || other == null) {
-                return BROKEN;
-            }
-            one.size = 0;
-            other.size = 0;
-            if (!binding.makes(rule.one, w, one, MOST_SIZE) || !binding.makes(rule.other, w, other, MOST_SIZE)) {
-                return BROKEN;
-            }
-            if (endInside(one, depth + 1) == BROKEN || endInside(other, depth + 1) == BROKEN) {
-                return BROKEN;
-            }
-            return one.isLike(other) ? 1 : 0;
-        }
-
-        /** The full end of what a condition is of; it is noted, as it is asked for again and again. */
-        private int endInside(Word w, int depth) {
-            if (isKnown(w)) {
-                return 0;
-            }
-            Word key = depth >= 0 && depth < keys.length ? keys[depth] : null;
-            if (key == null) {
-                return BROKEN;
-            }
-            key.set(w.at, w.size);
-            int p = 0;
-            int count = 0;
-            while (p < w.size) {
-                int found = useAt(w, p, depth);
-                if (found == BROKEN || found == 1 && (count >= MOST_STEPS || !isMade(w, p))) {
-                    return BROKEN;
+        /** Looks for the first use at p (full): 1 if there is one, 0 if there is none. What comes by it is made. */
+        int useAt(Word w, int p) {
+            if (rows.guardedCount == 0) {
+                boolean isThere = isPlain(w, p);
+                if (isThere) {
+                    bring(w);
                 }
-                count += found;
-                p = found == 1 ? 0 : p + 1;
+                return isThere ? 1 : 0;
             }
-            note(key, w);
-            return 0;
+            int asked = forest.planted(w.at, p, Word.behind(w.at, p), NO_PUTS, 0);
+            int found = asked < Forest.FIRST ? BROKEN : comesFor(asked);
+            if (found == BROKEN || found == NO_USE) {
+                return found == NO_USE ? 0 : BROKEN;
+            }
+            isLarge = found == TOO_LARGE;
+            if (!isLarge) {
+                forest.write(found, came);
+            }
+            return 1;
         }
 
-        /** Makes the step of the use that was found at p. */
+        /** Makes the step by which something came for the part at p. */
         boolean isMade(Word w, int p) {
-            int[] come = side;
             spare.size = 0;
-            if (come == null || !spare.adds(w.at, 0, p, MOST_SIZE)) {
-                return false;
-            }
-            if (!binding.makes(come, w, spare, MOST_SIZE)) {
-                return false;
-            }
-            if (!spare.adds(w.at, Word.behind(w.at, p), w.size, MOST_SIZE)) {
+            if (isLarge || !spare.adds(w.at, 0, p, MOST_SIZE) || !spare.adds(came.at, 0, came.size, MOST_SIZE)
+                    || !spare.adds(w.at, Word.behind(w.at, p), w.size, MOST_SIZE)) {
                 return false;
             }
             w.set(spare.at, spare.size);
             return true;
         }
 
-        /** The place of the next step (full); then the use is found. */
+        /**
+         * What comes for a node by its first use. Each node that is open waits for one that was opened behind it;
+         * its end is that which waits for it, and its steps are how many were made ahead of it to the same end.
+         * As conditions lie within conditions as deep as they like, that row takes the place of calls in calls.
+         */
+        private int comesFor(int asked) {
+            if (forest.stageOf(asked) == LOOKED) {
+                return forest.comesOf(asked);
+            }
+            int now = asked;
+            forest.setEnd(now, true, 0, 0);
+            for (int k = 0; k < MOST_LOOKS; k++) {
+                if (forest.isNearlyFull()) {
+                    now = forest.makeRoom(now);
+                }
+                int over = forest.endOf(now);
+                int found = now < Forest.FIRST ? BROKEN : over == 0 ? lookAt(now) : lookInside(now);
+                if (found == BROKEN) {
+                    return BROKEN;
+                }
+                if (over == 0 && found != WANTS) {
+                    forest.setEnd(now, false, 0, 0);
+                    return found;
+                }
+                now = found == WANTS ? opened(wanted, now, 0) : goneOn(now, found, over);
+            }
+            return BROKEN;
+        }
+
+        /** Opens a node for which another one waits; 0 if that may not be. */
+        private int opened(int n, int over, int steps) {
+            if (forest.isOpen(n) || steps > MOST_STEPS) {
+                return 0;
+            }
+            forest.setEnd(n, true, over, steps);
+            return n;
+        }
+
+        /** An open node made the step to the next one, or has none: then it is its own end. Tells what is looked at next. */
+        private int goneOn(int now, int next, int over) {
+            if (next == NO_USE) {
+                forest.setEnd(now, false, now, 0);
+                return over;
+            }
+            int end = knownEnd(next);
+            if (end < Forest.FIRST) {
+                return opened(next, now, forest.stepsOf(now) + 1);
+            }
+            int steps = forest.stepsOf(next) + 1;
+            forest.setEnd(now, false, end, steps);
+            return steps > MOST_STEPS ? 0 : over;
+        }
+
+        private int knownEnd(int n) {
+            return forest.isOpen(n) ? 0 : forest.endOf(n);
+        }
+
+        /** The term behind the first step of a node; NO_USE, if it has none. */
+        private int lookInside(int n) {
+            int now = n;
+            int depth = 0;
+            for (int k = 0; k <= MOST_SIZE; k++) {
+                boolean isDone = knownEnd(now) == now;
+                if (!isDone) {
+                    int found = lookAt(now);
+                    if (found != NO_USE) {
+                        return found == WANTS || found == BROKEN ? found : stepped(depth, found);
+                    }
+                }
+                if (!isDone && forest.arguments(now) > 0 && depth < forest.way.length) {
+                    forest.way[depth] = now;
+                    forest.isSecond[depth] = false;
+                    depth++;
+                    now = forest.first(now);
+                    continue;
+                }
+                depth = closed(now, depth);
+                if (depth == 0) {
+                    return NO_USE;
+                }
+                now = forest.second(forest.way[depth - 1]);
+            }
+            return BROKEN;
+        }
+
+        /** What lies ahead on the way has no redex, so it is its own end; tells how deep the next second argument lies. */
+        private int closed(int now, int depth) {
+            int n = now;
+            int d = Math.min(depth, forest.way.length);
+            while (d > 0) {
+                forest.setEnd(n, false, n, 0);
+                n = forest.way[d - 1];
+                if (!forest.isSecond[d - 1] && forest.arguments(n) > 1) {
+                    forest.isSecond[d - 1] = true;
+                    return d;
+                }
+                d--;
+            }
+            return 0;
+        }
+
+        private int stepped(int depth, int found) {
+            int made = found == TOO_LARGE ? 0 : forest.rebuilt(depth, found);
+            return made < Forest.FIRST || forest.sizeOf(made) > MOST_SIZE ? BROKEN : made;
+        }
+
+        /** What comes for a node by its first use: NO_USE, TOO_LARGE, a node; or WANTS, or BROKEN. */
+        private int lookAt(int n) {
+            int stage = forest.stageOf(n);
+            if (stage == LOOKED) {
+                return forest.comesOf(n);
+            }
+            forest.write(n, part);
+            if (stage == 0) {
+                if (isPlain(part, 0)) {
+                    return looked(n);
+                }
+                stage = 1;
+            }
+            for (int k = (stage - 1) / 2; k < rows.guardedCount && k < rows.guarded.length; k++) {
+                Pair rule = rows.guarded[k];
+                if (rule != null && takes(rule.left, rule.left.length, part, 0)) {
+                    int holds = holds(rule, n, k, stage == 2 + 2 * k);
+                    if (holds != 0) {
+                        side = rule.right;
+                        return holds == 1 ? looked(n) : holds;
+                    }
+                }
+                stage = 3 + 2 * k;
+            }
+            forest.setStage(n, LOOKED, NO_USE);
+            return NO_USE;
+        }
+
+        private int looked(int n) {
+            bring(part);
+            int comes = isLarge ? TOO_LARGE : forest.planted(came.at, 0, came.size, NO_PUTS, 0);
+            forest.setStage(n, LOOKED, comes);
+            return comes == 0 ? BROKEN : comes;
+        }
+
+        /** Whether the conditional rule k holds for a node whose part was taken: 1, 0, WANTS or BROKEN. */
+        private int holds(Pair rule, int n, int k, boolean isHalf) {
+            int end = isHalf ? forest.comesOf(n) : endMade(rule.one);
+            if (end < Forest.FIRST) {
+                forest.setStage(n, 1 + 2 * k, 0);
+                return end;
+            }
+            forest.setStage(n, 2 + 2 * k, end);
+            int other = endMade(rule.other);
+            return other < Forest.FIRST ? other : other == end ? 1 : 0;
+        }
+
+        /** The end of one or other of a condition, as it is made of the part; WANTS, if that has to be found. */
+        private int endMade(int[] made) {
+            comes.size = 0;
+            if (!makes(made, part, comes, MOST_SIZE)) {
+                return BROKEN;
+            }
+            int n = forest.planted(comes.at, 0, comes.size, NO_PUTS, 0);
+            int end = n < Forest.FIRST ? BROKEN : knownEnd(n);
+            if (end == 0) {
+                wanted = n;
+                return WANTS;
+            }
+            return end;
+        }
+
+        /** The place of the next step (full); then what comes there is made. */
         int pick(Word w, int strategy) {
             if (strategy != 0) {
                 int all = lookAtAll(w);
@@ -1782,10 +2313,10 @@ public final class Rewritehall {
                     return BROKEN;
                 }
                 int p = all == 0 ? NONE : chosen(w, strategy);
-                return p >= 0 && useAt(w, p, 0) != 1 ? BROKEN : p;
+                return p >= 0 && useAt(w, p) != 1 ? BROKEN : p;
             }
             for (int p = 0; p < w.size; p++) {
-                int found = useAt(w, p, 0);
+                int found = useAt(w, p);
                 if (found != 0) {
                     return found == 1 ? p : BROKEN;
                 }
@@ -1797,7 +2328,7 @@ public final class Rewritehall {
         int lookAtAll(Word w) {
             int count = 0;
             for (int p = 0; p < w.size && p < isRedex.length; p++) {
-                int found = useAt(w, p, 0);
+                int found = useAt(w, p);
                 if (found == BROKEN) {
                     return BROKEN;
                 }
@@ -1858,8 +2389,9 @@ public final class Rewritehall {
                     continue;
                 }
                 if (trace != null && pair != null) {
-                    trace.addStep(pair, isBack, w, p, binding.bound);
+                    trace.addStep(pair, isBack, w, p, bound);
                 }
+                bring(w);
                 if (count >= MOST_STEPS || !isMade(w, p)) {
                     return BROKEN;
                 }
@@ -1867,50 +2399,6 @@ public final class Rewritehall {
                 p = 0;
             }
             return count;
-        }
-
-        private static int headOf(Word w) {
-            int h = w.size;
-            for (int k = 0; k < w.size && k < w.at.length; k++) {
-                h = h * 31 + w.at[k];
-            }
-            return Math.floorMod(h, HEADS);
-        }
-
-        /** Replaces w by its end, if that is noted. A note is: the next one, both sizes, both terms. */
-        private boolean isKnown(Word w) {
-            int k = heads[headOf(w)];
-            for (int n = 0; n < notes.length && k >= 0 && k + 2 < notes.length; n++) {
-                int from = k + 3;
-                if (notes[k + 1] == w.size && Word.isAlike(notes, from, w.at, 0, w.size)) {
-                    int to = from + w.size;
-                    w.size = 0;
-                    return w.adds(notes, to, to + notes[k + 2], MOST_SIZE);
-                }
-                k = notes[k];
-            }
-            return false;
-        }
-
-        /** Notes that w is the end of key, if there is room for that. */
-        private void note(Word key, Word w) {
-            int k = noted;
-            int from = k + 3 + key.size;
-            if (k < 0 || key.size > key.at.length || w.size > w.at.length || from + w.size > notes.length) {
-                return;
-            }
-            int head = headOf(key);
-            notes[k] = heads[head];
-            notes[k + 1] = key.size;
-            notes[k + 2] = w.size;
-            for (int i = 0; i < key.size; i++) {
-                notes[k + 3 + i] = key.at[i];
-            }
-            for (int i = 0; i < w.size; i++) {
-                notes[from + i] = w.at[i];
-            }
-            heads[head] = k;
-            noted = from + w.size;
         }
     }
 
@@ -2136,7 +2624,6 @@ public final class Rewritehall {
         private final Word left = new Word(MOST_SIZE + 1);
         private final Word right = new Word(MOST_SIZE + 1);
         private final Word spare = new Word(MOST_SIZE + 1);
-        private final Binding binding = new Binding();
         private final int[] names = new int[NAMES];
 
         Completion(Rows rows, Orders orders, Stepper stepper, Meeting meeting) {
@@ -2274,7 +2761,7 @@ public final class Rewritehall {
         private boolean isWithin(Pair rule, Pair old) {
             spare.set(old.left, old.left.length);
             for (int p = 0; p < spare.size; p++) {
-                if (binding.takes(rule.left, rule.left.length, spare, p)) {
+                if (stepper.takes(rule.left, rule.left.length, spare, p)) {
                     return true;
                 }
             }
@@ -2412,74 +2899,79 @@ public final class Rewritehall {
     }
 
     /**
-     * Walks a chain, brought back, from a term on. A frame is a chain that is walked: from which end, at which
-     * place of the whole term, and what is put for the variables (from where on in env: how many, then for each
-     * its size and the term). A variable for which nothing is put stays what it is.
+     * Walks a chain, brought back, from a term on. A frame is a chain that is walked: from which end, what is put
+     * for its variables (how many, then a node for each), and the part of the whole term that it changes; the frame
+     * below it gets that part back behind the chain. A variable for which nothing is put stays what it is.
      */
     private static final class Proof {
         private static final int FRAMES = MOST_USES + 2;
+        private static final long NINE_DIGITS = 1000000000;
+        private final Forest forest;
         private final Chain[] chains = new Chain[FRAMES];
         private final int[] index = new int[FRAMES];
         private final int[] position = new int[FRAMES];
         private final boolean[] turned = new boolean[FRAMES];
-        private final int[] base = new int[FRAMES];
-        private final int[] from = new int[FRAMES];
+        /** Where the use that was begun last stands in its chain. */
+        private final int[] records = new int[FRAMES];
+        private final int[] terms = new int[FRAMES];
+        private final int[] puts = new int[FRAMES * APART];
         private int depth;
-        private final int[] env = new int[LARGE];
-        private int top;
-        Word now = new Word(LARGE);
-        private Word next = new Word(LARGE);
+        private final int[] nines = new int[64];
         /** The use that was made last. */
         int number;
         boolean isBack;
-        int place;
         /** Whether its sides stood where they have to. */
         boolean isRight;
-        boolean isBroken;
+        private boolean isBroken;
 
-        void start(int[] t, int n, Chain chain) {
-            now.set(t, n);
-            isBroken = false;
-            top = 0;
-            push(0);
-            chains[0] = chain;
-            index[0] = 0;
-            position[0] = 0;
-            turned[0] = false;
-            base[0] = 0;
-            from[0] = 0;
-            depth = 1;
+        Proof(Forest forest) {
+            this.forest = forest;
         }
 
-        private void push(int v) {
-            if (top >= 0 && top < env.length) {
-                env[top] = v;
-                top++;
-            } else {
+        void start(int[] t, int n, Chain chain) {
+            forest.clear();
+            puts[0] = 0;
+            isBroken = false;
+            depth = 0;
+            open(chain, false, forest.planted(t, 0, n, puts, 0));
+        }
+
+        /** Opens a chain; what is put for its variables is told. */
+        private void open(Chain chain, boolean isTurned, int term) {
+            if (chain == null || term < Forest.FIRST || depth < 0 || depth >= FRAMES) {
                 isBroken = true;
+                return;
             }
+            chains[depth] = chain;
+            index[depth] = 0;
+            position[depth] = isTurned ? chain.length : 0;
+            turned[depth] = isTurned;
+            records[depth] = 0;
+            terms[depth] = term;
+            depth++;
         }
 
         /** Makes the next use of an equation; tells whether there was one. */
         boolean isMoved() {
-            int fuel = FUEL;
-            while (depth > 0 && depth <= FRAMES && !isBroken && fuel > 0) {
-                fuel--;
+            for (int k = 0; k < 4 * MOST_USES && depth > 0 && depth <= FRAMES && !isBroken; k++) {
                 int f = depth - 1;
                 Chain c = chains[f];
                 if (c == null || index[f] >= c.uses) {
                     depth--;
-                    top = from[f];
+                    if (f > 0) {
+                        becomes(f - 1, terms[f]);
+                    }
                     continue;
                 }
-                int k = turned[f] ? c.uses - 1 - index[f] : index[f];
+                int next = turned[f] ? c.uses - 1 - index[f] : index[f];
                 int record = turned[f] ? position[f] - c.at(position[f] - 1) : position[f];
+                records[f] = record;
                 position[f] = turned[f] ? record : record + c.at(record);
                 index[f]++;
-                Pair pair = k >= 0 && k < c.refs.length ? c.refs[k] : null;
+                Pair pair = next >= 0 && next < c.refs.length ? c.refs[next] : null;
                 if (pair == null) {
                     isBroken = true;
-                } else if (uses(pair, c, record, f)) {
+                } else if (isMade(pair, c, record, f)) {
                     return true;
                 }
             }
@@ -2487,123 +2979,119 @@ public final class Rewritehall {
         }
 
         /** Makes a use of an equation, or opens the chain of anything else. */
-        private boolean uses(Pair pair, Chain c, int record, int f) {
+        private boolean isMade(Pair pair, Chain c, int record, int f) {
             boolean isTurned = (c.at(record + 1) == 1) != turned[f];
-            int p = reached(c, record, base[f]);
-            int block = top;
-            if (!isPut(c, record, from[f])) {
-                isBroken = true;
+            int inner = depth * APART;
+            fill(c, record, f * APART, inner);
+            int part = partOf(f);
+            if (pair.number < 0) {
+                open(pair.chain, isTurned, part);
                 return false;
             }
-            if (pair.number >= 0) {
-                number = pair.number;
-                isBack = isTurned;
-                place = p;
-                replace(isTurned ? pair.right : pair.left, isTurned ? pair.left : pair.right, p, block);
-                top = block;
-                return !isBroken;
-            }
-            Chain inner = pair.chain;
-            if (inner == null || depth >= FRAMES) {
-                isBroken = true;
-                return false;
-            }
-            chains[depth] = inner;
-            index[depth] = 0;
-            position[depth] = isTurned ? inner.length : 0;
-            turned[depth] = isTurned;
-            base[depth] = p;
-            from[depth] = block;
-            depth++;
-            return false;
-        }
-
-        /** The place to which the arguments of a use lead. */
-        private int reached(Chain c, int record, int start) {
-            int p = start;
-            int n = c.at(record + 2);
-            for (int k = 0; k < n; k++) {
-                int argument = c.at(record + 3 + k);
-                p++;
-                for (int a = 0; a < argument && a < 2; a++) {
-                    p = Word.behind(now.at, p);
-                }
-            }
-            return p;
-        }
-
-        /** Writes what a use puts for variables, by what the chain around it puts. */
-        private boolean isPut(Chain c, int record, int outer) {
-            int q = record + 3 + c.at(record + 2);
-            int n = c.at(q);
-            q++;
-            push(n);
-            for (int v = 0; v < n && !isBroken; v++) {
-                int size = c.at(q);
-                int mark = top;
-                push(0);
-                for (int k = 1; k <= size; k++) {
-                    pushPut(c.at(q + k), outer);
-                }
-                if (mark < env.length) {
-                    env[mark] = top - mark - 1;
-                }
-                q += 1 + size;
-            }
+            number = pair.number;
+            isBack = isTurned;
+            int[] goes = isTurned ? pair.right : pair.left;
+            int[] come = isTurned ? pair.left : pair.right;
+            isRight = part >= Forest.FIRST && part == forest.planted(goes, 0, goes.length, puts, inner);
+            becomes(f, forest.planted(come, 0, come.length, puts, inner));
             return !isBroken;
         }
 
-        private void pushPut(int code, int outer) {
-            int p = code < 0 ? found(-1 - code, outer) : NONE;
-            if (p < 0) {
-                push(code);
-                return;
-            }
-            for (int k = 1; k <= env[p] && p + k < env.length; k++) {
-                push(env[p + k]);
-            }
-        }
-
-        /** Where in env stands what is put for a variable; NONE if nothing is. */
-        private int found(int v, int outer) {
-            int n = outer >= 0 && outer < env.length ? env[outer] : 0;
-            if (v >= n) {
-                return NONE;
-            }
-            int p = outer + 1;
-            for (int k = 0; k < v && p >= 0 && p < env.length; k++) {
-                p += 1 + env[p];
-            }
-            return p >= 0 && p < env.length ? p : NONE;
-        }
-
-        /** Puts the one side for the other at p. */
-        private void replace(int[] goes, int[] comes, int p, int block) {
-            next.size = 0;
-            boolean isMade = isFilled(goes, block);
-            int behind = Word.behind(now.at, p);
-            isRight = isMade && next.size == behind - p && Word.isAlike(next.at, 0, now.at, p, next.size);
-            next.size = 0;
-            if (!next.adds(now.at, 0, p, LARGE) || !isFilled(comes, block)
-                    || !next.adds(now.at, behind, now.size, LARGE)) {
+        /** Tells what a use puts for variables, by what is put for those of the chain around it. */
+        private void fill(Chain c, int record, int outer, int inner) {
+            int q = record + 3 + c.at(record + 2);
+            int n = c.at(q);
+            q++;
+            if (n < 0 || n >= APART || inner < 0 || inner + n >= puts.length) {
                 isBroken = true;
                 return;
             }
-            Word w = now;
-            now = next;
-            next = w;
+            puts[inner] = n;
+            for (int v = 0; v < n; v++) {
+                int size = c.at(q);
+                puts[inner + 1 + v] = forest.planted(c.code, q + 1, q + 1 + size, puts, outer);
+                q += 1 + size;
+            }
         }
 
-        private boolean isFilled(int[] side, int block) {
-            for (int k = 0; k < side.length; k++) {
-                int p = side[k] < 0 ? found(-1 - side[k], block) : NONE;
-                boolean isAdded = p < 0 ? next.adds(side, k, k + 1, LARGE)
-                        : next.adds(env, p + 1, p + 1 + env[p], LARGE);
-                if (!isAdded) {
-                    return false;
+        /** How many arguments lead to the place of the use that was begun last. */
+        private int lengthOf(int f) {
+            Chain c = chains[f];
+            return c == null ? 0 : Math.min(c.at(records[f] + 2), forest.way.length);
+        }
+
+        /** The part at the place of the use that was begun last; the way to it stands in the forest then. */
+        private int partOf(int f) {
+            Chain c = chains[f];
+            int n = lengthOf(f);
+            int now = terms[f];
+            for (int k = 0; k < n && c != null; k++) {
+                int argument = c.at(records[f] + 3 + k);
+                if (argument >= forest.arguments(now)) {
+                    return 0;
+                }
+                forest.way[k] = now;
+                forest.isSecond[k] = argument == 1;
+                now = argument == 1 ? forest.second(now) : forest.first(now);
+            }
+            return now;
+        }
+
+        /** The part at the place of the use that was begun last becomes something else. */
+        private void becomes(int f, int made) {
+            int n = partOf(f) < Forest.FIRST ? 0 : forest.rebuilt(lengthOf(f), made);
+            terms[f] = n;
+            isBroken = isBroken || n < Forest.FIRST;
+        }
+
+        /** The whole term, as it is now. */
+        int now() {
+            int f = depth > 0 ? Math.min(depth, FRAMES) - 1 : 0;
+            int made = terms[f];
+            for (int k = f - 1; k >= 0; k--) {
+                made = partOf(k) < Forest.FIRST ? 0 : forest.rebuilt(lengthOf(k), made);
+            }
+            return made;
+        }
+
+        /** Writes the place of the last use, from its last nine digits on: it may be beyond all whole numbers of Java. */
+        void writePlace(StringBuilder out) {
+            int n = 0;
+            long over = 0;
+            boolean isMore = true;
+            while ((isMore || over > 0) && n < nines.length) {
+                isMore = forest.areSizesTold(n == 0);
+                over += ahead(n == 0);
+                nines[n] = (int) (over % NINE_DIGITS);
+                over /= NINE_DIGITS;
+                n++;
+            }
+            int k = n - 1;
+            while (k > 0 && nines[k] == 0) {
+                k--;
+            }
+            out.append(nines[k]);
+            for (k--; k >= 0; k--) {
+                for (int unit = 100000000; unit > 0; unit /= 10) {
+                    out.append((char) ('0' + nines[k] / unit % 10));
                 }
             }
-            return true;
+        }
+
+        /** Nine digits of how much stands ahead of the place of the last use. */
+        private long ahead(boolean isFirst) {
+            long sum = 0;
+            for (int f = 0; f < depth && f < FRAMES; f++) {
+                if (partOf(f) < Forest.FIRST) {
+                    continue;
+                }
+                int n = lengthOf(f);
+                for (int k = 0; k < n; k++) {
+                    sum += isFirst ? 1 : 0;
+                    sum += forest.isSecond[k] ? forest.toldSize(forest.first(forest.way[k])) : 0;
+                }
+            }
+            return sum;
         }
 
         /** Whether a chain leads from one side to the other one, each use as it has to be. */
@@ -2616,7 +3104,8 @@ public final class Rewritehall {
                 }
                 count++;
             }
-            return !isBroken && now.size == m && Word.isAlike(now.at, 0, right, 0, m);
+            puts[0] = 0;
+            return !isBroken && now() >= Forest.FIRST && now() == forest.planted(right, 0, m, puts, 0);
         }
     }
 
