@@ -30,6 +30,7 @@ public final class Rewritehall {
     private static final int MOST_TEXT = 3000000;
     private static final int FUEL = 1000000;
 
+    private static final int[] NOTHING = {};
     private static final int[] GROUPS_TOLD = {
         5, 0, -1, -1,
         5, 7, -1, -1, 0,
@@ -290,7 +291,7 @@ public final class Rewritehall {
                 return around(top.at, place);
             case 4:
                 stepper.refresh();
-                int found = stepper.useAt(top, place);
+                int found = stepper.scan(top, place, place + 1, true);
                 if (found == BROKEN) {
                     throw new IllegalStateException("a bound is not kept");
                 }
@@ -390,7 +391,12 @@ public final class Rewritehall {
         if (left == null || left.at[0] < 0 || !isGuardable(left)) {
             throw new IllegalArgumentException("the left side is not greater");
         }
-        rows.guarded[n] = new Pair(namedFromTop(3), namedFromTop(2), namedFromTop(1), namedFromTop(0));
+        Pair rule = new Pair();
+        rule.left = namedFromTop(3);
+        rule.right = namedFromTop(2);
+        rule.one = namedFromTop(1);
+        rule.other = namedFromTop(0);
+        rows.guarded[n] = rule;
         rows.guardedCount++;
         stackSize -= 4;
         return n;
@@ -411,7 +417,7 @@ public final class Rewritehall {
 
     private int[] namedFromTop(int i) {
         Word w = fromTop(i);
-        return Word.named(w == null ? first : w, names);
+        return Word.named(w == null ? first : w, names, NOTHING);
     }
 
     public int order(int which) throws IllegalArgumentException, IllegalStateException {
@@ -432,17 +438,12 @@ public final class Rewritehall {
             throw new IllegalArgumentException("no such strategy");
         }
         Word top = fromTop(0);
-        int place = top == null ? BROKEN : stepped(top, strategy);
+        stepper.refresh();
+        int place = top == null ? BROKEN : stepper.goes(top, strategy, true);
         if (place == BROKEN) {
             throw new IllegalStateException("the stack is empty, or a bound is not kept");
         }
         return place;
-    }
-
-    private int stepped(Word top, int strategy) {
-        stepper.refresh();
-        int place = stepper.pick(top, strategy);
-        return place >= 0 && !stepper.isMade(top, place) ? BROKEN : place;
     }
 
     public int end(int strategy) throws IllegalArgumentException, IllegalStateException {
@@ -450,7 +451,7 @@ public final class Rewritehall {
             throw new IllegalArgumentException("no such strategy");
         }
         Word top = loaded();
-        int count = top == null ? BROKEN : stepper.fullEnd(first, strategy);
+        int count = top == null ? BROKEN : stepper.goes(first, strategy, false);
         if (top == null || count < 0) {
             throw new IllegalStateException("the stack is empty, or a bound is not kept");
         }
@@ -462,7 +463,7 @@ public final class Rewritehall {
         if (strategy < 0 || strategy > 3) {
             throw new IllegalArgumentException("no such strategy");
         }
-        int count = loaded() == null ? BROKEN : stepper.fullEnd(first, strategy);
+        int count = loaded() == null ? BROKEN : stepper.goes(first, strategy, false);
         if (count < 0) {
             throw new IllegalStateException("the stack is empty, or a bound is not kept");
         }
@@ -482,7 +483,7 @@ public final class Rewritehall {
     public int redexes() throws IllegalStateException {
         Word top = fromTop(0);
         stepper.refresh();
-        int count = top == null ? BROKEN : stepper.lookAtAll(top);
+        int count = top == null ? BROKEN : stepper.scan(top, 0, top.size, false);
         if (count == BROKEN) {
             throw new IllegalStateException("the stack is empty, or a bound is not kept");
         }
@@ -1060,9 +1061,14 @@ public final class Rewritehall {
             }
         }
 
-        static int[] named(Word w, int[] names) {
-            int[] t = Arrays.copyOf(w.at, w.size < 0 ? 0 : w.size);
-            rename(t, 0, t.length, names);
+        /** The term of w with other names, in a row that may be used again if it is as long. */
+        static int[] named(Word w, int[] names, int[] used) {
+            int n = w.size < 0 ? 0 : w.size;
+            int[] t = used.length == n ? used : new int[n];
+            for (int k = 0; k < n && k < w.at.length; k++) {
+                int v = -1 - w.at[k];
+                t[k] = v < 0 || v >= names.length || names[v] < 0 ? w.at[k] : -1 - names[v];
+            }
             return t;
         }
 
@@ -1130,37 +1136,44 @@ public final class Rewritehall {
         }
     }
 
-    /** Two sides: an equation (with a number), a rule, an unturned one, or what waits; or a conditional rule. */
+    /**
+     * Two sides: an equation (with a number), a rule, an unturned one, or what waits; or a conditional rule.
+     * Of an overlap the chain is not kept: the rules and the place tell it.
+     */
     private static final class Pair {
-        final int[] left;
-        final int[] right;
-        final int[] one;
-        final int[] other;
-        final int variables;
-        final int number;
-        final int uses;
-        final Chain chain;
+        int[] left = NOTHING;
+        int[] right = NOTHING;
+        int[] one = NOTHING;
+        int[] other = NOTHING;
+        int variables;
+        int number = NONE;
+        int uses;
+        Chain chain;
+        Pair over;
+        Pair under;
+        int place;
+        private Chain spare;
 
-        Pair(int[] left, int[] right, int variables, int number, int uses, Chain chain) {
-            this.left = left;
-            this.right = right;
-            this.one = left;
-            this.other = right;
-            this.variables = variables;
-            this.number = number;
-            this.uses = uses;
-            this.chain = chain;
+        /** Becomes the pair of two terms, named; the names are told. */
+        void becomes(Word a, Word b, int[] names) {
+            Arrays.fill(names, NONE);
+            variables = Word.name(names, 0, a.at, a.size);
+            variables = Word.name(names, variables, b.at, b.size);
+            left = Word.named(a, names, left);
+            right = Word.named(b, names, right);
+            chain = null;
+            over = null;
+            under = null;
         }
 
-        Pair(int[] left, int[] right, int[] one, int[] other) {
-            this.left = left;
-            this.right = right;
-            this.one = one;
-            this.other = other;
-            this.variables = 0;
-            this.number = NONE;
-            this.uses = 0;
-            this.chain = null;
+        /** Takes uses over as its chain. */
+        void takes(Chain c) {
+            if (spare == null || spare.refs.length < c.uses || spare.code.length < c.length) {
+                spare = new Chain(c.uses, c.length);
+            }
+            chain = spare;
+            chain.clear();
+            chain.addAll(c);
         }
     }
 
@@ -1295,12 +1308,6 @@ public final class Rewritehall {
             }
         }
 
-        Chain packed() {
-            Chain c = new Chain(uses, length);
-            c.addAll(this);
-            return c;
-        }
-
         /** How many uses it has, brought back. */
         int broughtBack() {
             int sum = 0;
@@ -1327,11 +1334,12 @@ public final class Rewritehall {
         int nextAge;
         int dropped;
         int made;
+        /** All pairs that came about since the last restart, as far as there is room. */
+        private final Pair[] pairs = new Pair[3000];
+        private int pairCount;
         private final Pair[] keptRules = new Pair[14];
-        private int keptRuleCount;
         private final Pair[] keptWaiting = new Pair[120];
-        private int keptWaitCount;
-        private int keptAge;
+        private final int[] keptCounts = new int[4];
         /** The next step is known to be refused; so it isn't tried again before something is told. */
         boolean isStuck;
 
@@ -1377,17 +1385,19 @@ public final class Rewritehall {
         void keep() {
             copy(rules, keptRules);
             copy(waiting, keptWaiting);
-            keptRuleCount = ruleCount;
-            keptWaitCount = waitCount;
-            keptAge = nextAge;
+            keptCounts[0] = ruleCount;
+            keptCounts[1] = waitCount;
+            keptCounts[2] = nextAge;
+            keptCounts[3] = pairCount;
         }
 
         void bringBack() {
             copy(keptRules, rules);
             copy(keptWaiting, waiting);
-            ruleCount = keptRuleCount;
-            waitCount = keptWaitCount;
-            nextAge = keptAge;
+            ruleCount = keptCounts[0];
+            waitCount = keptCounts[1];
+            nextAge = keptCounts[2];
+            pairCount = keptCounts[3];
         }
 
         private static void copy(Pair[] from, Pair[] to) {
@@ -1401,24 +1411,42 @@ public final class Rewritehall {
             unturnedCount = 0;
             waitCount = 0;
             guardedCount = 0;
+            pairCount = 0;
             isStuck = false;
         }
 
         /** A new equation of the sides a and b; it waits. */
         int told(Word a, Word b, int[] names) {
-            Arrays.fill(names, NONE);
-            int known = Word.name(names, 0, a.at, a.size);
-            known = Word.name(names, known, b.at, b.size);
             int n = equationCount;
             if (n < 0 || n >= equations.length) {
                 return NONE;
             }
-            Pair pair = new Pair(Word.named(a, names), Word.named(b, names), known, n, 1, null);
+            Pair pair = new Pair();
+            pair.becomes(a, b, names);
+            pair.number = n;
+            pair.uses = 1;
             equations[n] = pair;
             equationCount++;
             isStuck = false;
             waits(pair);
             return n;
+        }
+
+        /** A new pair of the sides a and b; those that came about ahead of a restart are used again. */
+        Pair paired(Word a, Word b, int[] names) {
+            Pair pair = null;
+            if (pairCount >= 0 && pairCount < pairs.length) {
+                if (pairs[pairCount] == null) {
+                    pairs[pairCount] = new Pair();
+                }
+                pair = pairs[pairCount];
+                pairCount++;
+            }
+            if (pair == null) {
+                pair = new Pair();
+            }
+            pair.becomes(a, b, names);
+            return pair;
         }
     }
 
@@ -1561,19 +1589,22 @@ public final class Rewritehall {
      * its own. A key holds, from the lowest bit on, the sign (4 bits; 15 is a variable), two arguments (21 each;
      * of a variable the first one is its number), the size (6; 63 if it is greater), a number of steps (6),
      * whether it is open (1), a stage (4), and whether it is kept as room is made (the sign).
-     * A note holds the next node in its row of the table (21), and what comes for it and its end (21 each).
-     * What stages, steps, coming and ends are, is for those to say who ask for them.
+     * A note holds the next node in its row of the table (21), and what comes for it and its end (21 each), or one
+     * number in place of both. What these and stages and steps are is for those to say who ask for them.
      */
     private static final class Forest {
         static final int VARIABLE = 15;
         /** Smaller numbers are no nodes. */
         static final int FIRST = 4;
         private static final int BITS = 21;
+        private static final int LOW = (1 << BITS) - 1;
         private static final int MOST = 1 << BITS;
         private static final int ROOM = 1 << 12;
-        private static final int RESERVE = 1 << 15;
+        /** More than this is never made between two looks at the room that is left. */
+        private static final int RESERVE = 1 << 10;
         private static final long TERM = (1L << 46) - 1;
         private static final long KEPT = 1L << 63;
+        private static final long MIXED = 0x9E3779B97F4A7C15L;
         private static final long NINE_DIGITS = 1000000000;
         private long[] keys = new long[ROOM];
         private long[] notes = new long[ROOM];
@@ -1589,8 +1620,49 @@ public final class Rewritehall {
             Arrays.fill(heads, 0);
         }
 
-        private static int bits(long word, int from, int n) {
-            return (int) (word >>> from) & (1 << n) - 1;
+        private boolean isNode(int n) {
+            return n >= FIRST && n < count && n < keys.length && n < notes.length;
+        }
+
+        int sign(int n) {
+            return n < FIRST || n >= count ? 0 : (int) keys[n] & 15;
+        }
+
+        int arguments(int n) {
+            int c = n < FIRST || n >= count ? 0 : (int) keys[n] & 15;
+            return c == VARIABLE ? 0 : c % 3;
+        }
+
+        int first(int n) {
+            return n < FIRST || n >= count ? 0 : (int) (keys[n] >>> 4) & LOW;
+        }
+
+        int second(int n) {
+            return n < FIRST || n >= count ? 0 : (int) (keys[n] >>> 25) & LOW;
+        }
+
+        int sizeOf(int n) {
+            return n < FIRST || n >= count ? 0 : (int) (keys[n] >>> 46) & 63;
+        }
+
+        int stepsOf(int n) {
+            return n < FIRST || n >= count ? 0 : (int) (keys[n] >>> 52) & 63;
+        }
+
+        boolean isOpen(int n) {
+            return n >= FIRST && n < count && (keys[n] >>> 58 & 1) == 1;
+        }
+
+        int stageOf(int n) {
+            return n < FIRST || n >= count ? 0 : (int) (keys[n] >>> 59) & 15;
+        }
+
+        int comesOf(int n) {
+            return n < FIRST || n >= count ? 0 : (int) (notes[n] >>> BITS) & LOW;
+        }
+
+        int endOf(int n) {
+            return n < FIRST || n >= count ? 0 : (int) (notes[n] >>> 2 * BITS) & LOW;
         }
 
         private static long with(long word, int from, int n, long value) {
@@ -1598,119 +1670,52 @@ public final class Rewritehall {
             return word & ~mask | value << from & mask;
         }
 
-        private long keyOf(int n) {
-            return n >= FIRST && n < count && n < keys.length ? keys[n] : 0;
-        }
-
-        private long noteOf(int n) {
-            return n >= FIRST && n < count && n < notes.length ? notes[n] : 0;
-        }
-
-        int sign(int n) {
-            return bits(keyOf(n), 0, 4);
-        }
-
-        int arguments(int n) {
-            int c = sign(n);
-            return c == VARIABLE ? 0 : c % 3;
-        }
-
-        int first(int n) {
-            return bits(keyOf(n), 4, BITS);
-        }
-
-        int second(int n) {
-            return bits(keyOf(n), 25, BITS);
-        }
-
-        int sizeOf(int n) {
-            return bits(keyOf(n), 46, 6);
-        }
-
-        int stepsOf(int n) {
-            return bits(keyOf(n), 52, 6);
-        }
-
-        boolean isOpen(int n) {
-            return bits(keyOf(n), 58, 1) == 1;
-        }
-
-        int stageOf(int n) {
-            return bits(keyOf(n), 59, 4);
-        }
-
-        int comesOf(int n) {
-            return bits(noteOf(n), BITS, BITS);
-        }
-
-        int endOf(int n) {
-            return bits(noteOf(n), 2 * BITS, BITS);
-        }
-
         void setStage(int n, int stage, int comes) {
-            if (n >= FIRST && n < count && n < keys.length && n < notes.length) {
+            if (n >= FIRST && n < count) {
                 keys[n] = with(keys[n], 59, 4, stage);
                 notes[n] = with(notes[n], BITS, BITS, comes);
             }
         }
 
         void setEnd(int n, boolean isOpen, int end, int steps) {
-            if (n >= FIRST && n < count && n < keys.length && n < notes.length) {
+            if (n >= FIRST && n < count) {
                 keys[n] = with(with(keys[n], 52, 6, steps), 58, 1, isOpen ? 1 : 0);
                 notes[n] = with(notes[n], 2 * BITS, BITS, end);
             }
         }
 
-        private int headOf(long key) {
-            long h = (key ^ key >>> 25) * 0x9E3779B97F4A7C15L;
-            return (int) (h >>> 40) & heads.length - 1;
-        }
-
         /** The node of a sign with these arguments; 0 if there is no room. */
         int node(int sign, int a, int b) {
-            long key = with(with(sign, 4, BITS, a), 25, BITS, b);
-            int head = headOf(key);
+            long key = sign | (long) a << 4 | (long) b << 25;
+            int head = (int) ((key ^ key >>> 25) * MIXED >>> 40) & heads.length - 1;
+            int last = count;
+            int n = heads[head];
             // Each node of a row has a smaller number than the one ahead of it.
-            for (int n = heads[head]; n >= FIRST && n < count && n < notes.length; n = bits(notes[n], 0, BITS)) {
+            while (n >= FIRST && n < last) {
                 if ((keys[n] & TERM) == key) {
                     return n;
                 }
+                last = n;
+                n = (int) notes[n] & LOW;
             }
             if (count >= keys.length) {
-                if (count >= MOST) {
-                    return 0;
-                }
-                grow();
-                head = headOf(key);
+                return 0;
             }
             int arguments = sign == VARIABLE ? 0 : sign % 3;
-            int size = 1 + (arguments > 0 ? sizeOf(a) : 0) + (arguments > 1 ? sizeOf(b) : 0);
-            keys[count] = with(key, 46, 6, Math.min(63, size));
+            long size = 1;
+            size += arguments > 0 && a >= FIRST && a < count ? keys[a] >>> 46 & 63 : 0;
+            size += arguments > 1 && b >= FIRST && b < count ? keys[b] >>> 46 & 63 : 0;
+            keys[count] = key | (size > 63 ? 63 : size) << 46;
             notes[count] = heads[head];
             heads[head] = count;
             count++;
             return count - 1;
         }
 
-        private void grow() {
-            int length = Math.min(MOST, 8 * keys.length);
-            keys = Arrays.copyOf(keys, length);
-            notes = Arrays.copyOf(notes, length);
-            heads = new int[length / 4];
-            link();
-        }
-
-        /** Brings all nodes into the rows of the table. */
-        private void link() {
-            Arrays.fill(heads, 0);
-            for (int n = FIRST; n < count && n < keys.length && n < notes.length; n++) {
-                int head = headOf(keys[n] & TERM);
-                notes[n] = with(notes[n], 0, BITS, heads[head]);
-                heads[head] = n;
-            }
-        }
-
-        /** The node of the term from one place up to another; puts tells from a place on how many, and which, nodes are put for variables. */
+        /**
+         * The node of the term from one place up to another; puts tells from a place on how many, and which, nodes
+         * are put for variables. 0 if that is no term, or there is no room.
+         */
         int planted(int[] t, int from, int to, int[] puts, int at) {
             int n = at >= 0 && at < puts.length ? puts[at] : 0;
             int h = 0;
@@ -1747,14 +1752,15 @@ public final class Rewritehall {
             while (h > 0 && h + 1 < held.length && out.size < out.at.length) {
                 int n = held[h - 1];
                 int c = sign(n);
+                int arguments = arguments(n);
                 h--;
                 out.at[out.size] = c == VARIABLE ? -1 - first(n) : c;
                 out.size++;
-                if (arguments(n) > 1) {
+                if (arguments > 1) {
                     held[h] = second(n);
                     h++;
                 }
-                if (arguments(n) > 0) {
+                if (arguments > 0) {
                     held[h] = first(n);
                     h++;
                 }
@@ -1772,15 +1778,39 @@ public final class Rewritehall {
         }
 
         boolean isNearlyFull() {
-            return count > MOST - RESERVE;
+            return count > keys.length - RESERVE;
+        }
+
+        /** Tells whether there is more room then. */
+        boolean grows() {
+            if (keys.length >= MOST) {
+                return false;
+            }
+            int length = Math.min(MOST, 8 * keys.length);
+            keys = Arrays.copyOf(keys, length);
+            notes = Arrays.copyOf(notes, length);
+            heads = new int[length / 4];
+            link();
+            return true;
+        }
+
+        /** Brings all nodes into the rows of the table. */
+        private void link() {
+            Arrays.fill(heads, 0);
+            for (int n = FIRST; n < count && isNode(n); n++) {
+                long key = keys[n] & TERM;
+                int head = (int) ((key ^ key >>> 25) * MIXED >>> 40) & heads.length - 1;
+                notes[n] = with(notes[n], 0, BITS, heads[head]);
+                heads[head] = n;
+            }
         }
 
         /**
-         * Makes room: what is young or open is kept, and what that needs. Tells the new number of an open node;
-         * 0 if there is too little room then.
+         * Makes room as there is no more: what is young or open is kept, and what that needs. Tells the new number
+         * of an open node; 0 if there is too little room then.
          */
         int makeRoom(int open) {
-            for (int n = FIRST; n < count && n < keys.length; n++) {
+            for (int n = FIRST; n < count && isNode(n); n++) {
                 if (n >= count / 2 || isOpen(n)) {
                     keys[n] |= KEPT;
                 }
@@ -1791,17 +1821,17 @@ public final class Rewritehall {
             }
             spreads(false);
             int kept = number();
-            int moved = bits(noteOf(open), 0, BITS);
+            int moved = renamed(open);
             rename();
             move(kept);
             link();
-            return count > MOST - 4 * RESERVE ? 0 : moved;
+            return count > keys.length - keys.length / 8 ? 0 : moved;
         }
 
-        /** What is kept keeps its arguments, and what else it tells of; tells whether more is kept than was looked at. */
+        /** What is kept keeps its arguments, and what else it tells of; tells whether some of that was passed by. */
         private boolean spreads(boolean isAll) {
             boolean isMore = false;
-            for (int n = count - 1; n >= FIRST && n < keys.length; n--) {
+            for (int n = count - 1; n >= FIRST && isNode(n); n--) {
                 if (keys[n] >= 0) {
                     continue;
                 }
@@ -1821,7 +1851,7 @@ public final class Rewritehall {
         }
 
         private boolean keep(int n) {
-            if (n < FIRST || n >= count || n >= keys.length || keys[n] < 0) {
+            if (!isNode(n) || keys[n] < 0) {
                 return false;
             }
             keys[n] |= KEPT;
@@ -1831,7 +1861,7 @@ public final class Rewritehall {
         /** Each node that is kept notes its new number; tells the one behind the last. */
         private int number() {
             int next = FIRST;
-            for (int n = FIRST; n < count && n < keys.length && n < notes.length; n++) {
+            for (int n = FIRST; n < count && isNode(n); n++) {
                 if (keys[n] < 0) {
                     notes[n] = with(notes[n], 0, BITS, next);
                     next++;
@@ -1842,11 +1872,14 @@ public final class Rewritehall {
 
         /** The new number of a node; 0 if it is not kept. */
         private int renamed(int n) {
-            return n < FIRST ? n : keyOf(n) < 0 ? bits(noteOf(n), 0, BITS) : 0;
+            if (n < FIRST) {
+                return n;
+            }
+            return isNode(n) && keys[n] < 0 ? (int) notes[n] & LOW : 0;
         }
 
         private void rename() {
-            for (int n = FIRST; n < count && n < keys.length && n < notes.length; n++) {
+            for (int n = FIRST; n < count && isNode(n); n++) {
                 if (keys[n] >= 0) {
                     continue;
                 }
@@ -1865,9 +1898,9 @@ public final class Rewritehall {
         }
 
         private void move(int behind) {
-            for (int n = FIRST; n < count && n < keys.length && n < notes.length; n++) {
+            for (int n = FIRST; n < count && isNode(n); n++) {
                 int to = renamed(n);
-                if (keys[n] < 0 && to >= FIRST && to <= n) {
+                if (to >= FIRST && to <= n) {
                     keys[to] = keys[n] & ~KEPT;
                     notes[to] = notes[n];
                 }
@@ -1876,17 +1909,19 @@ public final class Rewritehall {
         }
 
         private void tell(int n, long value) {
-            notes[n] = with(notes[n], BITS, 2 * BITS, value);
+            if (n >= FIRST && n < count) {
+                notes[n] = with(notes[n], BITS, 2 * BITS, value);
+            }
         }
 
         private long told(int n) {
-            return noteOf(n) >>> BITS;
+            return n < FIRST || n >= count ? 0 : notes[n] >>> BITS;
         }
 
         /** Tells of each node the next nine digits of its size, from the last ones on; whether there are any. */
         boolean areSizesTold(boolean isFirst) {
             boolean isAny = false;
-            for (int n = FIRST; n < count && n < notes.length; n++) {
+            for (int n = FIRST; n < count; n++) {
                 int arguments = arguments(n);
                 long sum = isFirst ? 1 : told(n) & 1;
                 sum += arguments > 0 ? toldSize(first(n)) : 0;
@@ -1903,7 +1938,7 @@ public final class Rewritehall {
         }
 
         private void tellLengths() {
-            for (int n = FIRST; n < count && n < notes.length; n++) {
+            for (int n = FIRST; n < count; n++) {
                 int arguments = arguments(n);
                 long length = sign(n) != VARIABLE ? 1 : first(n) < 10 ? 2 : 3;
                 length += arguments > 0 ? 2 + told(first(n)) : 0;
@@ -1924,7 +1959,7 @@ public final class Rewritehall {
             held[1] = 0;
             int h = 2;
             // Each time at least one sign is written.
-            for (int k = 0; k < length && h > 1 && h + 4 <= held.length; k++) {
+            for (int k = 0; k < length && h > 1 && h + 2 <= held.length; k++) {
                 h -= 2;
                 h = writeSign(held[h], held[h + 1], out, h);
             }
@@ -1934,25 +1969,23 @@ public final class Rewritehall {
         /** Writes a sign with what is around its arguments; these are held, the shorter one last, so that few are. */
         private int writeSign(int n, int from, char[] out, int h) {
             int c = sign(n);
-            int arguments = arguments(n);
             int a = first(n);
             int b = second(n);
             if (c == VARIABLE) {
                 set(out, from, 'x');
-                int last = a < 10 ? from + 1 : from + 2;
                 set(out, from + 1, (char) ('0' + a / 10 % 10));
-                set(out, last, (char) ('0' + a % 10));
+                set(out, a < 10 ? from + 1 : from + 2, (char) ('0' + a % 10));
                 return h;
             }
             set(out, from, (char) ('a' + c / 3));
-            if (arguments == 0) {
+            if (c % 3 == 0) {
                 return h;
             }
             int behind = from + 2 + (int) told(a);
             set(out, from + 1, '(');
             set(out, behind, ',');
             set(out, from + (int) told(n) - 1, ')');
-            if (arguments == 1) {
+            if (c % 3 == 1) {
                 return hold(a, from + 2, h);
             }
             if (told(a) > told(b)) {
@@ -1983,10 +2016,9 @@ public final class Rewritehall {
         private static final int NO_USE = 1;
         private static final int TOO_LARGE = 2;
         private static final int WANTS = 3;
-        /** Stages of a look: 1 + 2k with no use ahead of the conditional rule k, 2 + 2k with the end of its one. */
+        private static final int ENDED = 0;
         private static final int LOOKED = 15;
         private static final int MOST_LOOKS = 1 << 26;
-        private static final int[] NO_PUTS = {0};
         private final Rows rows;
         private final Orders orders;
         final Forest forest = new Forest();
@@ -2002,8 +2034,13 @@ public final class Rewritehall {
         private boolean isBack;
         private int[] side;
         private boolean isLarge;
+        /** The redex that was found last. */
+        private int spot;
         /** The node whose end has to be found first. */
         private int wanted;
+        /** The part of an open node that was looked at last, and how long the way to it is. */
+        private int at;
+        private int depth;
 
         Stepper(Rows rows, Orders orders) {
             this.rows = rows;
@@ -2105,25 +2142,37 @@ public final class Rewritehall {
             isLarge = side == null || !makes(side, w, came, MOST_SIZE);
         }
 
-        /** Looks for the first use at p (full): 1 if there is one, 0 if there is none. What comes by it is made. */
-        int useAt(Word w, int p) {
-            if (rows.guardedCount == 0) {
-                boolean isThere = isPlain(w, p);
-                if (isThere) {
-                    bring(w);
+        /** Looks at places of w (full), or up to the first redex: then what comes there is made. Tells how many redexes. */
+        int scan(Word w, int from, int to, boolean isFirst) {
+            int count = 0;
+            for (int p = from; p >= 0 && p < to && p < w.size && p < isRedex.length; p++) {
+                boolean isThere;
+                if (rows.guardedCount == 0) {
+                    isThere = isPlain(w, p);
+                    if (isThere) {
+                        bring(w);
+                    }
+                } else {
+                    int found = comesFor(w, p);
+                    if (found == BROKEN) {
+                        return BROKEN;
+                    }
+                    isThere = found != NO_USE;
+                    isLarge = found == TOO_LARGE;
+                    if (found >= Forest.FIRST) {
+                        forest.write(found, came);
+                    }
                 }
-                return isThere ? 1 : 0;
+                isRedex[p] = isThere;
+                if (isThere) {
+                    spot = p;
+                    count++;
+                }
+                if (isThere && isFirst) {
+                    return 1;
+                }
             }
-            int asked = forest.planted(w.at, p, Word.behind(w.at, p), NO_PUTS, 0);
-            int found = asked < Forest.FIRST ? BROKEN : comesFor(asked);
-            if (found == BROKEN || found == NO_USE) {
-                return found == NO_USE ? 0 : BROKEN;
-            }
-            isLarge = found == TOO_LARGE;
-            if (!isLarge) {
-                forest.write(found, came);
-            }
-            return 1;
+            return count;
         }
 
         /** Makes the step by which something came for the part at p. */
@@ -2138,30 +2187,36 @@ public final class Rewritehall {
         }
 
         /**
-         * What comes for a node by its first use. Each node that is open waits for one that was opened behind it;
-         * its end is that which waits for it, and its steps are how many were made ahead of it to the same end.
+         * What comes for the part at p by its first use. Each node that is open waits for one that was opened behind
+         * it; its end is that which waits for it, and its steps are how many were made ahead of it to the same end.
          * As conditions lie within conditions as deep as they like, that row takes the place of calls in calls.
          */
-        private int comesFor(int asked) {
-            if (forest.stageOf(asked) == LOOKED) {
-                return forest.comesOf(asked);
+        private int comesFor(Word w, int p) {
+            int now = forest.planted(w.at, p, Word.behind(w.at, p), NOTHING, 0);
+            if (forest.stageOf(now) == LOOKED) {
+                return forest.comesOf(now);
             }
-            int now = asked;
             forest.setEnd(now, true, 0, 0);
-            for (int k = 0; k < MOST_LOOKS; k++) {
-                if (forest.isNearlyFull()) {
+            boolean isFresh = true;
+            for (int k = 0; k < MOST_LOOKS && now >= Forest.FIRST; k++) {
+                if (forest.isNearlyFull() && !forest.grows()) {
                     now = forest.makeRoom(now);
+                    isFresh = true;
                 }
                 int over = forest.endOf(now);
-                int found = now < Forest.FIRST ? BROKEN : over == 0 ? lookAt(now) : lookInside(now);
+                int looked = over == 0 ? now : inside(now, isFresh);
+                int found = looked == 0 ? ENDED : lookAt(looked);
                 if (found == BROKEN) {
                     return BROKEN;
                 }
                 if (over == 0 && found != WANTS) {
                     forest.setEnd(now, false, 0, 0);
-                    return found;
+                    return now < Forest.FIRST ? BROKEN : found;
                 }
-                now = found == WANTS ? opened(wanted, now, 0) : goneOn(now, found, over);
+                isFresh = found != NO_USE;
+                if (isFresh) {
+                    now = found == WANTS ? opened(wanted, now, 0) : goneOn(now, found, over);
+                }
             }
             return BROKEN;
         }
@@ -2175,11 +2230,15 @@ public final class Rewritehall {
             return n;
         }
 
-        /** An open node made the step to the next one, or has none: then it is its own end. Tells what is looked at next. */
-        private int goneOn(int now, int next, int over) {
-            if (next == NO_USE) {
+        /** An open node makes the step at the redex that was found in it, or is its own end. Tells which one is looked at next. */
+        private int goneOn(int now, int found, int over) {
+            if (found == ENDED) {
                 forest.setEnd(now, false, now, 0);
                 return over;
+            }
+            int next = found == TOO_LARGE ? 0 : forest.rebuilt(depth, found);
+            if (next < Forest.FIRST || forest.sizeOf(next) > MOST_SIZE) {
+                return 0;
             }
             int end = knownEnd(next);
             if (end < Forest.FIRST) {
@@ -2194,32 +2253,33 @@ public final class Rewritehall {
             return forest.isOpen(n) ? 0 : forest.endOf(n);
         }
 
-        /** The term behind the first step of a node; NO_USE, if it has none. */
-        private int lookInside(int n) {
-            int now = n;
-            int depth = 0;
-            for (int k = 0; k <= MOST_SIZE; k++) {
-                boolean isDone = knownEnd(now) == now;
-                if (!isDone) {
-                    int found = lookAt(now);
-                    if (found != NO_USE) {
-                        return found == WANTS || found == BROKEN ? found : stepped(depth, found);
-                    }
+        /** The next place of an open node at which there may be a redex, behind the one that was looked at last; 0 if there is none. */
+        private int inside(int n, boolean isFresh) {
+            boolean isLooked = !isFresh;
+            if (isFresh) {
+                depth = 0;
+                at = n;
+            }
+            for (int k = 0; k <= 2 * MOST_SIZE; k++) {
+                boolean isDone = knownEnd(at) == at;
+                if (!isDone && !isLooked) {
+                    return at;
                 }
-                if (!isDone && forest.arguments(now) > 0 && depth < forest.way.length) {
-                    forest.way[depth] = now;
+                if (!isDone && forest.arguments(at) > 0 && depth < forest.way.length) {
+                    forest.way[depth] = at;
                     forest.isSecond[depth] = false;
                     depth++;
-                    now = forest.first(now);
-                    continue;
+                    at = forest.first(at);
+                } else {
+                    depth = closed(at, depth);
+                    if (depth == 0) {
+                        return 0;
+                    }
+                    at = forest.second(forest.way[depth - 1]);
                 }
-                depth = closed(now, depth);
-                if (depth == 0) {
-                    return NO_USE;
-                }
-                now = forest.second(forest.way[depth - 1]);
+                isLooked = false;
             }
-            return BROKEN;
+            return 0;
         }
 
         /** What lies ahead on the way has no redex, so it is its own end; tells how deep the next second argument lies. */
@@ -2238,56 +2298,43 @@ public final class Rewritehall {
             return 0;
         }
 
-        private int stepped(int depth, int found) {
-            int made = found == TOO_LARGE ? 0 : forest.rebuilt(depth, found);
-            return made < Forest.FIRST || forest.sizeOf(made) > MOST_SIZE ? BROKEN : made;
-        }
-
-        /** What comes for a node by its first use: NO_USE, TOO_LARGE, a node; or WANTS, or BROKEN. */
+        /**
+         * What comes for a node by its first use: NO_USE, TOO_LARGE, a node; or WANTS, or BROKEN. Stage 0: nothing was
+         * looked at; 1 + 2k: no use is ahead of the conditional rule k; 2 + 2k: the end of its one comes; LOOKED.
+         */
         private int lookAt(int n) {
             int stage = forest.stageOf(n);
             if (stage == LOOKED) {
                 return forest.comesOf(n);
             }
             forest.write(n, part);
-            if (stage == 0) {
-                if (isPlain(part, 0)) {
-                    return looked(n);
+            boolean isThere = stage == 0 && isPlain(part, 0);
+            for (int k = Math.max(0, stage - 1); k < 2 * rows.guardedCount && k < 2 * rows.guarded.length && !isThere; k++) {
+                Pair rule = rows.guarded[k / 2];
+                if (rule == null || !takes(rule.left, rule.left.length, part, 0)) {
+                    k |= 1;
+                    continue;
                 }
-                stage = 1;
-            }
-            for (int k = (stage - 1) / 2; k < rows.guardedCount && k < rows.guarded.length; k++) {
-                Pair rule = rows.guarded[k];
-                if (rule != null && takes(rule.left, rule.left.length, part, 0)) {
-                    int holds = holds(rule, n, k, stage == 2 + 2 * k);
-                    if (holds != 0) {
-                        side = rule.right;
-                        return holds == 1 ? looked(n) : holds;
-                    }
+                boolean isOne = k % 2 == 0;
+                int end = endMade(isOne ? rule.one : rule.other);
+                if (end < Forest.FIRST) {
+                    forest.setStage(n, k + 1, isOne ? 0 : forest.comesOf(n));
+                    return end;
                 }
-                stage = 3 + 2 * k;
+                if (isOne) {
+                    forest.setStage(n, k + 2, end);
+                } else {
+                    side = rule.right;
+                    isThere = end == forest.comesOf(n);
+                }
             }
-            forest.setStage(n, LOOKED, NO_USE);
-            return NO_USE;
-        }
-
-        private int looked(int n) {
-            bring(part);
-            int comes = isLarge ? TOO_LARGE : forest.planted(came.at, 0, came.size, NO_PUTS, 0);
+            int comes = NO_USE;
+            if (isThere) {
+                bring(part);
+                comes = isLarge ? TOO_LARGE : forest.planted(came.at, 0, came.size, NOTHING, 0);
+            }
             forest.setStage(n, LOOKED, comes);
             return comes == 0 ? BROKEN : comes;
-        }
-
-        /** Whether the conditional rule k holds for a node whose part was taken: 1, 0, WANTS or BROKEN. */
-        private int holds(Pair rule, int n, int k, boolean isHalf) {
-            int end = isHalf ? forest.comesOf(n) : endMade(rule.one);
-            if (end < Forest.FIRST) {
-                forest.setStage(n, 1 + 2 * k, 0);
-                return end;
-            }
-            forest.setStage(n, 2 + 2 * k, end);
-            int other = endMade(rule.other);
-            return other < Forest.FIRST ? other : other == end ? 1 : 0;
         }
 
         /** The end of one or other of a condition, as it is made of the part; WANTS, if that has to be found. */
@@ -2296,7 +2343,7 @@ public final class Rewritehall {
             if (!makes(made, part, comes, MOST_SIZE)) {
                 return BROKEN;
             }
-            int n = forest.planted(comes.at, 0, comes.size, NO_PUTS, 0);
+            int n = forest.planted(comes.at, 0, comes.size, NOTHING, 0);
             int end = n < Forest.FIRST ? BROKEN : knownEnd(n);
             if (end == 0) {
                 wanted = n;
@@ -2305,39 +2352,7 @@ public final class Rewritehall {
             return end;
         }
 
-        /** The place of the next step (full); then what comes there is made. */
-        int pick(Word w, int strategy) {
-            if (strategy != 0) {
-                int all = lookAtAll(w);
-                if (all == BROKEN) {
-                    return BROKEN;
-                }
-                int p = all == 0 ? NONE : chosen(w, strategy);
-                return p >= 0 && useAt(w, p) != 1 ? BROKEN : p;
-            }
-            for (int p = 0; p < w.size; p++) {
-                int found = useAt(w, p);
-                if (found != 0) {
-                    return found == 1 ? p : BROKEN;
-                }
-            }
-            return NONE;
-        }
-
-        /** Notes which places are redexes (full); tells how many. */
-        int lookAtAll(Word w) {
-            int count = 0;
-            for (int p = 0; p < w.size && p < isRedex.length; p++) {
-                int found = useAt(w, p);
-                if (found == BROKEN) {
-                    return BROKEN;
-                }
-                isRedex[p] = found == 1;
-                count += found;
-            }
-            return count;
-        }
-
+        /** The redex of the next step, behind a scan of all places. */
         private int chosen(Word w, int strategy) {
             int best = NONE;
             int over = 0;
@@ -2362,15 +2377,22 @@ public final class Rewritehall {
             return best;
         }
 
-        /** Takes w to its full end; tells by how many steps. */
-        int fullEnd(Word w, int strategy) {
+        /** Takes w to its full end; tells by how many steps. Or makes one step; tells at which place, NONE if it has no redex. */
+        int goes(Word w, int strategy, boolean isOnce) {
             for (int count = 0; count <= MOST_STEPS; count++) {
-                int p = pick(w, strategy);
-                if (p < 0) {
-                    return p == NONE ? count : BROKEN;
+                int all = scan(w, 0, w.size, strategy == 0);
+                if (all == 0) {
+                    return isOnce ? NONE : count;
                 }
-                if (count == MOST_STEPS || !isMade(w, p)) {
+                if (all > 0 && strategy != 0) {
+                    int p = chosen(w, strategy);
+                    all = scan(w, p, p + 1, true);
+                }
+                if (all < 1 || count == MOST_STEPS || !isMade(w, spot)) {
                     return BROKEN;
+                }
+                if (isOnce) {
+                    return spot;
                 }
             }
             return BROKEN;
@@ -2617,6 +2639,7 @@ public final class Rewritehall {
         final Chain first = new Chain(MOST_STEPS + 1, 8000);
         final Chain second = new Chain(MOST_STEPS + 1, 8000);
         final Chain draft = new Chain(MOST_USES + 1, 45000);
+        private final Chain crossed = new Chain(2, 500);
         /** The overlap of the row that was kept. */
         final Word peak = new Word(MOST_SIZE + 1);
         final Word peakLeft = new Word(MOST_SIZE + 1);
@@ -2625,6 +2648,7 @@ public final class Rewritehall {
         private final Word right = new Word(MOST_SIZE + 1);
         private final Word spare = new Word(MOST_SIZE + 1);
         private final int[] names = new int[NAMES];
+        private final int[] crossNames = new int[NAMES];
 
         Completion(Rows rows, Orders orders, Stepper stepper, Meeting meeting) {
             this.rows = rows;
@@ -2689,38 +2713,56 @@ public final class Rewritehall {
 
         /** The pair of both ends, named, with its chain. */
         private Pair turned(Pair pair, boolean isExchanged) {
-            Word a = isExchanged ? right : left;
-            Word b = isExchanged ? left : right;
-            Arrays.fill(names, NONE);
-            int known = Word.name(names, 0, a.at, a.size);
-            known = Word.name(names, known, b.at, b.size);
-            int uses = Math.min(MANY_USES + 1, first.broughtBack() + pair.uses + second.broughtBack());
-            Chain chain = null;
-            if (uses <= MOST_USES) {
+            Pair made = rows.paired(isExchanged ? right : left, isExchanged ? left : right, names);
+            made.uses = Math.min(MANY_USES + 1, first.broughtBack() + pair.uses + second.broughtBack());
+            if (made.uses <= MOST_USES) {
+                Chain chain = pair.over == null ? chainOf(pair) : crossing(pair, pair.over, pair.under);
                 draft.clear();
                 draft.addTurned(isExchanged ? second : first);
-                addChain(pair, isExchanged);
+                if (chain != null && isExchanged) {
+                    draft.addTurned(chain);
+                } else if (chain != null) {
+                    draft.addAll(chain);
+                }
                 draft.addAll(isExchanged ? first : second);
                 draft.rename(names);
-                chain = draft.packed();
+                made.takes(draft);
             }
-            return new Pair(Word.named(a, names), Word.named(b, names), known, NONE, uses, chain);
+            return made;
         }
 
         /** An equation that waits has no chain of its own: it is its own use. */
-        private void addChain(Pair pair, boolean isTurned) {
-            if (pair.number >= 0) {
-                draft.opens(pair, isTurned, pair.left, 0);
-                for (int v = 0; v < pair.variables; v++) {
-                    draft.cell(1);
-                    draft.cell(-1 - v);
-                }
-                draft.closes();
-            } else if (pair.chain != null && isTurned) {
-                draft.addTurned(pair.chain);
-            } else if (pair.chain != null) {
-                draft.addAll(pair.chain);
+        private Chain chainOf(Pair pair) {
+            if (pair.number < 0) {
+                return pair.chain;
             }
+            crossed.clear();
+            crossed.opens(pair, false, pair.left, 0);
+            for (int v = 0; v < pair.variables; v++) {
+                crossed.cell(1);
+                crossed.cell(-1 - v);
+            }
+            crossed.closes();
+            return crossed;
+        }
+
+        /** The chain of an overlap: the overlap is made once more. */
+        private Chain crossing(Pair pair, Pair over, Pair under) {
+            crossed.clear();
+            if (under == null || meeting.crosses(over, under, pair.place) != 1) {
+                return null;
+            }
+            crossed.opens(over, true, under.left, pair.place);
+            meeting.putsInto(crossed, over, APART, spare);
+            crossed.closes();
+            crossed.opens(under, false, under.left, 0);
+            meeting.putsInto(crossed, under, 0, spare);
+            crossed.closes();
+            Arrays.fill(crossNames, NONE);
+            int known = Word.name(crossNames, 0, meeting.left.at, meeting.left.size);
+            Word.name(crossNames, known, meeting.right.at, meeting.right.size);
+            crossed.rename(crossNames);
+            return crossed;
         }
 
         private boolean isRule(Pair rule) {
@@ -2779,16 +2821,16 @@ public final class Rewritehall {
             if (count <= 0) {
                 return count == 0;
             }
-            int uses = Math.min(MANY_USES + 1, old.uses + second.broughtBack());
-            Chain chain = null;
-            if (uses <= MOST_USES && old.chain != null) {
+            left.set(old.left, old.left.length);
+            Pair made = rows.paired(left, right, names);
+            made.uses = Math.min(MANY_USES + 1, old.uses + second.broughtBack());
+            if (made.uses <= MOST_USES && old.chain != null) {
                 draft.clear();
                 draft.addAll(old.chain);
                 draft.addAll(second);
-                chain = draft.packed();
+                made.takes(draft);
             }
-            int[] end = Arrays.copyOf(right.at, right.size < 0 ? 0 : right.size);
-            rows.rules[k] = new Pair(old.left, end, old.variables, NONE, uses, chain);
+            rows.rules[k] = made;
             return true;
         }
 
@@ -2813,27 +2855,14 @@ public final class Rewritehall {
             return true;
         }
 
-        /** The pair of an overlap, named, with its chain. */
+        /** The pair of an overlap, named. */
         private Pair opened(Pair over, Pair under, int p) {
-            Word a = meeting.left;
-            Word b = meeting.right;
-            Arrays.fill(names, NONE);
-            int known = Word.name(names, 0, a.at, a.size);
-            known = Word.name(names, known, b.at, b.size);
-            int uses = Math.min(MANY_USES + 1, over.uses + under.uses);
-            Chain chain = null;
-            if (uses <= MOST_USES) {
-                draft.clear();
-                draft.opens(over, true, under.left, p);
-                meeting.putsInto(draft, over, APART, spare);
-                draft.closes();
-                draft.opens(under, false, under.left, 0);
-                meeting.putsInto(draft, under, 0, spare);
-                draft.closes();
-                draft.rename(names);
-                chain = draft.packed();
-            }
-            return new Pair(Word.named(a, names), Word.named(b, names), known, NONE, uses, chain);
+            Pair made = rows.paired(meeting.left, meeting.right, names);
+            made.uses = Math.min(MANY_USES + 1, over.uses + under.uses);
+            made.over = over;
+            made.under = under;
+            made.place = p;
+            return made;
         }
 
         /** Makes the whole row of overlaps and keeps the one that is wanted; tells how many there are. */
@@ -2916,6 +2945,8 @@ public final class Rewritehall {
         private final int[] terms = new int[FRAMES];
         private final int[] puts = new int[FRAMES * APART];
         private int depth;
+        /** How many arguments lead to the part that was asked for last. */
+        private int length;
         private final int[] nines = new int[64];
         /** The use that was made last. */
         int number;
@@ -2954,6 +2985,10 @@ public final class Rewritehall {
         /** Makes the next use of an equation; tells whether there was one. */
         boolean isMoved() {
             for (int k = 0; k < 4 * MOST_USES && depth > 0 && depth <= FRAMES && !isBroken; k++) {
+                if (forest.isNearlyFull() && !forest.grows()) {
+                    isBroken = true;
+                    return false;
+                }
                 int f = depth - 1;
                 Chain c = chains[f];
                 if (c == null || index[f] >= c.uses) {
@@ -3014,18 +3049,12 @@ public final class Rewritehall {
             }
         }
 
-        /** How many arguments lead to the place of the use that was begun last. */
-        private int lengthOf(int f) {
-            Chain c = chains[f];
-            return c == null ? 0 : Math.min(c.at(records[f] + 2), forest.way.length);
-        }
-
         /** The part at the place of the use that was begun last; the way to it stands in the forest then. */
         private int partOf(int f) {
             Chain c = chains[f];
-            int n = lengthOf(f);
             int now = terms[f];
-            for (int k = 0; k < n && c != null; k++) {
+            length = c == null ? 0 : Math.min(c.at(records[f] + 2), forest.way.length);
+            for (int k = 0; k < length && c != null; k++) {
                 int argument = c.at(records[f] + 3 + k);
                 if (argument >= forest.arguments(now)) {
                     return 0;
@@ -3039,7 +3068,7 @@ public final class Rewritehall {
 
         /** The part at the place of the use that was begun last becomes something else. */
         private void becomes(int f, int made) {
-            int n = partOf(f) < Forest.FIRST ? 0 : forest.rebuilt(lengthOf(f), made);
+            int n = partOf(f) < Forest.FIRST ? 0 : forest.rebuilt(length, made);
             terms[f] = n;
             isBroken = isBroken || n < Forest.FIRST;
         }
@@ -3049,7 +3078,10 @@ public final class Rewritehall {
             int f = depth > 0 ? Math.min(depth, FRAMES) - 1 : 0;
             int made = terms[f];
             for (int k = f - 1; k >= 0; k--) {
-                made = partOf(k) < Forest.FIRST ? 0 : forest.rebuilt(lengthOf(k), made);
+                if (forest.isNearlyFull() && !forest.grows()) {
+                    return 0;
+                }
+                made = partOf(k) < Forest.FIRST ? 0 : forest.rebuilt(length, made);
             }
             return made;
         }
@@ -3085,8 +3117,7 @@ public final class Rewritehall {
                 if (partOf(f) < Forest.FIRST) {
                     continue;
                 }
-                int n = lengthOf(f);
-                for (int k = 0; k < n; k++) {
+                for (int k = 0; k < length && k < forest.way.length; k++) {
                     sum += isFirst ? 1 : 0;
                     sum += forest.isSecond[k] ? forest.toldSize(forest.first(forest.way[k])) : 0;
                 }
