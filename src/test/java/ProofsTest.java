@@ -25,6 +25,8 @@ public final class ProofsTest {
         aChainAtTheBound();
         aBoundOfSteps();
         aProofOfWhatAnOldRuleSaid();
+        longTerms();
+        placesBeyondAllNumbers();
         Asked.finish("ProofsTest");
     }
 
@@ -277,5 +279,83 @@ public final class ProofsTest {
         hall.finish(12);
         Asked.due("27 rules", Asked.rows(hall, 3), "b(x0)>x0 c(a)>a");
         Asked.due("36 by what was", proof(hall, "c(a)", "a"), "c(a) 1>0 b(b(a)) 2>0 b(a) 2>0 a");
+    }
+
+    /** So many x, all put together. */
+    private static String comb(int leaves, String x) {
+        return "e(".repeat(leaves - 1) + x + ("," + x + ")").repeat(leaves - 1);
+    }
+
+    private static String code(int k, String x) {
+        return "c(" + Asked.nested("b", k, "d(" + x + ")") + ")";
+    }
+
+    /** code(2k + 1) = code(2k) by way of a comb of what it is of: the combs of combs get long. */
+    private static void longTerms() {
+        Rewritehall hall = Asked.hall(0, 1, 1, 1, 2);
+        Asked.tell(hall, comb(20, "x0") + "=" + code(1, "x0"));
+        hall.complete();
+        Asked.tell(hall, comb(20, "x0") + "=" + code(0, "x0"));
+        hall.complete();
+        for (int k = 0; k < 2; k++) {
+            for (int side = 1; side >= 0; side--) {
+                Asked.tell(hall, code(2 * k + side, comb(19 - k, "x0")) + "=" + code(2 * k + 2 + side, "x0"));
+                Asked.due("27 a rule", hall.complete(), 1);
+            }
+        }
+        Asked.push(hall, code(5, "b(b(a))"), code(4, "b(b(a))"));
+        Asked.due("35 six uses", hall.proofSize(), 6);
+        Asked.due("38 proved", hall.isProved(), true);
+        String x = "b(b(a))";
+        String in = comb(18, x);
+        String wide = comb(19, in);
+        String[] terms = {code(5, x), code(3, in), code(1, wide), comb(20, wide), code(0, wide), code(2, in), code(4, x)};
+        String[] uses = {"4<0", "2<0", "0<0", "1>0", "3>0", "5>0"};
+        for (int i = 0; i < 7; i++) {
+            Asked.due("37 term " + i, hall.proofTerm(i).equals(terms[i]), true);
+            if (i < 6) {
+                Asked.due("36 use " + i, hall.proofUse(i), uses[i]);
+            }
+        }
+        hall.exchange();
+        Asked.due("38 turned", hall.isProved(), true);
+        Asked.due("37 turned", hall.proofTerm(3).equals(terms[3]), true);
+    }
+
+    /** d(x, b(..)) = c(x, b(..)) by way of e(x, d(comb of x, ..)), and so on: each time the comb is of combs. */
+    private static void placesBeyondAllNumbers() {
+        Rewritehall hall = Asked.hall(0, 1, 2, 2, 2);
+        String wide = comb(13, "x0");
+        Asked.tell(hall, "d(x0,a)=c(x0,a)", "e(x0,d(" + wide + ",x1))=d(x0,b(x1))",
+            "e(x0,c(" + wide + ",x1))=c(x0,b(x1))");
+        hall.finish(12);
+        hall.finish(12);
+        int n = 11;
+        Asked.due("33 the last rule", hall.row(3, n + 2) + " " + hall.ofRule(n + 2, 2),
+            "d(x0," + Asked.nested("b", n, "a") + ")>c(x0," + Asked.nested("b", n, "a") + ") 23");
+        String t = comb(10, "a");
+        Asked.push(hall, "d(" + t + "," + Asked.nested("b", n, "a") + ")", "c(" + t + "," + Asked.nested("b", n, "a") + ")");
+        Asked.due("35 uses", hall.proofSize(), 2 * n + 1);
+        long place = 0;
+        long size = 19;
+        for (int i = 0; i <= n; i++) {
+            Asked.due("36 down " + i, hall.proofUse(i), (i < n ? "1<" : "0>") + place);
+            if (i < n) {
+                Asked.due("36 up " + i, hall.proofUse(2 * n - i), "2>" + place);
+            }
+            place += 1 + size;
+            size = 13 * size + 12;
+        }
+        Asked.due("36 far above all int", hall.proofUse(n).length() > 14, true);
+        Asked.due("37 the first term", hall.proofTerm(0), hall.text(1));
+        Asked.due("37 a term", hall.proofTerm(1), "e(" + t + ",d(" + comb(13, t) + "," + Asked.nested("b", n - 1, "a") + "))");
+        Asked.due("37 a long one", hall.proofTerm(4).length() > 100000, true);
+        Asked.due("37 the last term", hall.proofTerm(2 * n + 1), hall.text(0));
+        Asked.refused("37 no text is as long as that", hall, STATE, () -> hall.proofTerm(n));
+        Asked.due("38 proved", hall.isProved(), true);
+        Asked.due("45 sound", hall.isSound(), true);
+        hall.exchange();
+        Asked.due("36 turned", hall.proofUse(0), "2<0");
+        Asked.due("38 turned", hall.isProved(), true);
     }
 }

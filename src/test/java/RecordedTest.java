@@ -9,7 +9,7 @@ import java.util.Map;
 
 /**
  * Runs of calls whose answers were found by another program, which was written from the document alone.
- * A line of src/test/recorded/runs.txt is "new", or a call, " = ", and its answer (a boolean counts 1 or 0).
+ * A line of a file in src/test/recorded is "new", or a call, " = ", and its answer (a boolean counts 1 or 0).
  */
 public final class RecordedTest {
     private RecordedTest() {
@@ -20,7 +20,14 @@ public final class RecordedTest {
         for (Method m : Rewritehall.class.getDeclaredMethods()) {
             calls.put(m.getName(), m);
         }
-        List<String> lines = Files.readAllLines(Path.of("src/test/recorded/runs.txt"));
+        for (String name : new String[] {"runs", "conditions", "proofs"}) {
+            int runs = replayed(name, Files.readAllLines(Path.of("src/test/recorded/" + name + ".txt")), calls);
+            Asked.due(name, runs > 50, true);
+        }
+        Asked.finish("RecordedTest");
+    }
+
+    private static int replayed(String name, List<String> lines, Map<String, Method> calls) throws IllegalAccessException {
         Rewritehall hall = new Rewritehall();
         int run = 0;
         for (String line : lines) {
@@ -31,10 +38,10 @@ public final class RecordedTest {
             }
             int middle = line.indexOf(" = ");
             String[] words = line.substring(0, middle).split(" ");
-            Asked.due("run " + run + ": " + line, answer(hall, calls.get(words[0]), words), line.substring(middle + 3));
+            String what = name + ", run " + run + ": " + line;
+            Asked.due(what, answer(hall, calls.get(words[0]), words), line.substring(middle + 3));
         }
-        Asked.due("runs", run > 50, true);
-        Asked.finish("RecordedTest");
+        return run;
     }
 
     private static String answer(Rewritehall hall, Method call, String[] words) throws IllegalAccessException {

@@ -23,6 +23,11 @@ public final class StepsTest {
         boundsOfConditions();
         boundsThatAreNotReached();
         deepConditions();
+        conditionsFarDown();
+        conditionsFartherDown();
+        muchLooking();
+        moreLooking();
+        looksThatAreKeptApart();
         Asked.finish("StepsTest");
     }
 
@@ -341,5 +346,112 @@ public final class StepsTest {
         hall.drop();
         Asked.push(hall, Asked.nested("d", 39, "x0"));
         Asked.due("23 none holds", hall.redexes(), 0);
+    }
+
+    /** Tells symbol(x0) > a, if one becomes a. */
+    private static void toldIf(Rewritehall hall, String symbol, String one) {
+        Asked.push(hall, symbol + "(x0)", "a", one, "a");
+        hall.condition();
+    }
+
+    /** Each e asks for a d, that for a c, that for a b, that for what lies inside: 152 conditions in one another. */
+    private static void conditionsFarDown() {
+        Rewritehall hall = Asked.hall(0, 1, 1, 1, 1);
+        toldIf(hall, "e", "d(x0)");
+        toldIf(hall, "d", "c(x0)");
+        toldIf(hall, "c", "b(x0)");
+        toldIf(hall, "b", "x0");
+        Asked.push(hall, Asked.nested("e", 38, "a"));
+        Asked.due("23 all of them", hall.redexes(), 38);
+        Asked.due("13 the first one", hall.ofPlace(0, 4), 1);
+        Asked.due("13 not the last sign", hall.ofPlace(38, 4), 0);
+        int[] steps = {1, 38, 1, 38};
+        for (int strategy = 0; strategy < 4; strategy++) {
+            Asked.due("22 by " + strategy, hall.steps(strategy), steps[strategy]);
+        }
+        Asked.due("20 the last one", hall.step(3), 37);
+        Asked.due("21 at once", hall.end(0), 1);
+        Asked.due("21 text", hall.text(0), "a");
+        hall.drop();
+        Asked.push(hall, Asked.nested("e", 38, "x0"));
+        Asked.due("23 none", hall.redexes(), 0);
+    }
+
+    /** As above, but each asks for eight of the next ones: some 11000 conditions in one another. */
+    private static void conditionsFartherDown() {
+        Rewritehall hall = Asked.hall(0, 1, 1, 1, 1);
+        toldIf(hall, "e", Asked.nested("d", 8, "x0"));
+        toldIf(hall, "d", Asked.nested("c", 8, "x0"));
+        toldIf(hall, "c", Asked.nested("b", 8, "x0"));
+        toldIf(hall, "b", "x0");
+        Asked.push(hall, Asked.nested("e", 17, "a"));
+        Asked.due("22 at once", hall.steps(0), 1);
+        Asked.due("23 all of them", hall.redexes(), 17);
+        Asked.push(hall, Asked.nested("e", 17, "x0"));
+        Asked.due("22 no step", hall.steps(0), 0);
+        Asked.push(hall, Asked.nested("e", 19, "a"));
+        Asked.refused("21 size 41 far down", hall, STATE, () -> hall.end(0));
+        Asked.refused("23 size 41 far down", hall, STATE, () -> hall.redexes());
+    }
+
+    /** c moves behind b, and each b asks for what it is with c in its place: all rows of b and c are looked at. */
+    private static void muchLooking() {
+        Rewritehall hall = new Rewritehall();
+        hall.symbol(0, 1);
+        hall.symbol(1, 2);
+        hall.symbol(1, 1);
+        hall.order(1);
+        Asked.tell(hall, "c(b(x0))=b(c(x0))");
+        hall.complete();
+        Asked.due("27 the rule", hall.row(3, 0), "c(b(x0))>b(c(x0))");
+        toldIf(hall, "b", "c(x0)");
+        Asked.due("18 the conditional one", hall.row(6, 0), "b(x0)>a|c(x0)=a");
+        Asked.push(hall, Asked.nested("b", 14, "a"));
+        for (int strategy = 0; strategy < 4; strategy++) {
+            Asked.due("22 no step by " + strategy, hall.steps(strategy), 0);
+            Asked.due("20 no step by " + strategy, hall.step(strategy), -1);
+        }
+        Asked.due("23 no redex", hall.redexes(), 0);
+        Asked.due("13 no redex", hall.ofPlace(0, 4), 0);
+        hall.apply(1);
+        Asked.due("22 one more", hall.steps(0), 0);
+        hall.apply(1);
+        Asked.refused("22 61 steps of one of them", hall, STATE, () -> hall.steps(0));
+        hall.drop();
+        Asked.push(hall, Asked.nested("c", 7, Asked.nested("b", 7, "a")));
+        Asked.due("22 all c behind all b", hall.end(3), 49);
+        Asked.due("21 text", hall.text(0), Asked.nested("b", 7, Asked.nested("c", 7, "a")));
+    }
+
+    /** As above with three letters. */
+    private static void moreLooking() {
+        Rewritehall hall = new Rewritehall();
+        for (int k = 0; k < 4; k++) {
+            hall.symbol(k == 0 ? 0 : 1, k == 0 ? 1 : 4 - k);
+        }
+        hall.order(1);
+        Asked.tell(hall, "c(b(x0))=b(c(x0))", "d(b(x0))=b(d(x0))", "d(c(x0))=c(d(x0))");
+        hall.finish(12);
+        toldIf(hall, "b", "c(x0)");
+        toldIf(hall, "c", "d(x0)");
+        Asked.push(hall, Asked.nested("b", 11, "a"));
+        Asked.due("22 no step", hall.steps(0), 0);
+        Asked.due("23 no redex", hall.redexes(), 0);
+    }
+
+    /** What was found by some rules is not taken for found by others. */
+    private static void looksThatAreKeptApart() {
+        Rewritehall hall = Asked.hall(0, 1, 1, 1);
+        toldIf(hall, "d", "c(x0)");
+        Asked.push(hall, "d(b(a))");
+        Asked.due("23 c(b(a)) is no a", hall.redexes(), 0);
+        toldIf(hall, "c", "x0");
+        Asked.due("23 b(a) is no a", hall.redexes(), 0);
+        Asked.tell(hall, "b(a)=a");
+        hall.complete();
+        Asked.due("23 now it is", hall.redexes(), 2);
+        Asked.due("22 at once", hall.steps(0), 1);
+        hall.restart();
+        Asked.due("23 no more", hall.redexes(), 0);
     }
 }

@@ -20,6 +20,7 @@ public final class WholeTest {
         knock();
         isSound();
         isSoundThoughSomethingIsMissing();
+        isSoundByLongTerms();
         digest();
         callsThatChangeNothing();
         Asked.finish("WholeTest");
@@ -251,6 +252,33 @@ public final class WholeTest {
         }
         Asked.due("26 an overlap is missing", hall.missing(), 2);
         Asked.due("45 but something waits", hall.isSound() && hall.many(4) > 0, true);
+    }
+
+    private static String comb(int leaves) {
+        return "e(".repeat(leaves - 1) + "x0" + ",x0)".repeat(leaves - 1);
+    }
+
+    private static String code(int k, String x) {
+        return "c(" + Asked.nested("b", k, "d(" + x + ")") + ")";
+    }
+
+    /** The chain of each rule goes by the one ahead of it, of what is many times as long: some millions of signs at last. */
+    private static void isSoundByLongTerms() {
+        Rewritehall hall = Asked.hall(0, 1, 1, 1, 2);
+        Asked.tell(hall, comb(20) + "=" + code(1, "x0"));
+        hall.complete();
+        Asked.tell(hall, comb(20) + "=" + code(0, "x0"));
+        hall.complete();
+        for (int k = 0; k < 4; k++) {
+            for (int side = 1; side >= 0; side--) {
+                Asked.tell(hall, code(2 * k + side, comb(19 - k)) + "=" + code(2 * k + 2 + side, "x0"));
+                Asked.due("27 a rule", hall.complete(), 1);
+            }
+            Asked.due("33 two more uses", hall.ofRule(2 * k + 3, 2), 2 * k + 4);
+            Asked.due("24 no overlaps", hall.overlaps() + hall.many(4) + hall.many(5), 0);
+            Asked.due("45 sound", hall.isSound(), true);
+        }
+        Asked.due("46 by its parts", hall.digest(), checked(hall));
     }
 
     private static long checked(Rewritehall hall) {
