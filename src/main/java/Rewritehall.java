@@ -27,7 +27,7 @@ public final class Rewritehall {
     /** A side that comes has at most 20 variables, each with less than 40 in its place. */
     private static final int COMES = 1000;
     /** A text that is longer has no room beside all else. */
-    private static final int MOST_TEXT = 3000000;
+    private static final int MOST_TEXT = 3500000;
     private static final int FUEL = 1000000;
 
     private static final int[] NOTHING = {};
@@ -2012,12 +2012,14 @@ public final class Rewritehall {
 
     /** Steps and ends. */
     private static final class Stepper {
-        /** What comes for a part: nothing, or something above the bound of size; or what has to be found first. */
+        /** What a look finds, if no node: no redex is left, none is here, it is too large, or an end is wanted. */
+        private static final int ENDED = 0;
         private static final int NO_USE = 1;
         private static final int TOO_LARGE = 2;
         private static final int WANTS = 3;
-        private static final int ENDED = 0;
+        /** The stage of a node behind all looks. */
         private static final int LOOKED = 15;
+        /** In one call; far above what can be waited for. */
         private static final int MOST_LOOKS = 1 << 26;
         private final Rows rows;
         private final Orders orders;
@@ -2036,6 +2038,7 @@ public final class Rewritehall {
         private boolean isLarge;
         /** The redex that was found last. */
         private int spot;
+        private int looks;
         /** The node whose end has to be found first. */
         private int wanted;
         /** The part of an open node that was looked at last, and how long the way to it is. */
@@ -2049,6 +2052,7 @@ public final class Rewritehall {
 
         /** To be called ahead of all that is full, once for each call of the face. */
         void refresh() {
+            looks = 0;
             if (rows.guardedCount > 0) {
                 forest.clear();
             }
@@ -2142,7 +2146,7 @@ public final class Rewritehall {
             isLarge = side == null || !makes(side, w, came, MOST_SIZE);
         }
 
-        /** Looks at places of w (full), or up to the first redex: then what comes there is made. Tells how many redexes. */
+        /** Tells how many redexes (full) are among places of w; or looks up to the first one and makes what comes. */
         int scan(Word w, int from, int to, boolean isFirst) {
             int count = 0;
             for (int p = from; p >= 0 && p < to && p < w.size && p < isRedex.length; p++) {
@@ -2198,7 +2202,8 @@ public final class Rewritehall {
             }
             forest.setEnd(now, true, 0, 0);
             boolean isFresh = true;
-            for (int k = 0; k < MOST_LOOKS && now >= Forest.FIRST; k++) {
+            while (looks < MOST_LOOKS && now >= Forest.FIRST) {
+                looks++;
                 if (forest.isNearlyFull() && !forest.grows()) {
                     now = forest.makeRoom(now);
                     isFresh = true;
@@ -2230,7 +2235,7 @@ public final class Rewritehall {
             return n;
         }
 
-        /** An open node makes the step at the redex that was found in it, or is its own end. Tells which one is looked at next. */
+        /** An open node makes the step at the redex that was found, or is its own end. Tells which one is next. */
         private int goneOn(int now, int found, int over) {
             if (found == ENDED) {
                 forest.setEnd(now, false, now, 0);
@@ -2253,7 +2258,7 @@ public final class Rewritehall {
             return forest.isOpen(n) ? 0 : forest.endOf(n);
         }
 
-        /** The next place of an open node at which there may be a redex, behind the one that was looked at last; 0 if there is none. */
+        /** The next part of an open node that may be a redex, behind the one that was looked at; 0 if there is none. */
         private int inside(int n, boolean isFresh) {
             boolean isLooked = !isFresh;
             if (isFresh) {
@@ -2282,7 +2287,7 @@ public final class Rewritehall {
             return 0;
         }
 
-        /** What lies ahead on the way has no redex, so it is its own end; tells how deep the next second argument lies. */
+        /** What was passed on the way has no redex, so it is its own end; tells how deep the next argument lies. */
         private int closed(int now, int depth) {
             int n = now;
             int d = Math.min(depth, forest.way.length);
@@ -2309,7 +2314,8 @@ public final class Rewritehall {
             }
             forest.write(n, part);
             boolean isThere = stage == 0 && isPlain(part, 0);
-            for (int k = Math.max(0, stage - 1); k < 2 * rows.guardedCount && k < 2 * rows.guarded.length && !isThere; k++) {
+            int all = 2 * Math.min(rows.guardedCount, rows.guarded.length);
+            for (int k = Math.max(0, stage - 1); k < all && !isThere; k++) {
                 Pair rule = rows.guarded[k / 2];
                 if (rule == null || !takes(rule.left, rule.left.length, part, 0)) {
                     k |= 1;
@@ -2377,7 +2383,7 @@ public final class Rewritehall {
             return best;
         }
 
-        /** Takes w to its full end; tells by how many steps. Or makes one step; tells at which place, NONE if it has no redex. */
+        /** Takes w to its full end; tells by how many steps. Or makes one step; tells where, NONE if there is none. */
         int goes(Word w, int strategy, boolean isOnce) {
             for (int count = 0; count <= MOST_STEPS; count++) {
                 int all = scan(w, 0, w.size, strategy == 0);
@@ -3086,7 +3092,7 @@ public final class Rewritehall {
             return made;
         }
 
-        /** Writes the place of the last use, from its last nine digits on: it may be beyond all whole numbers of Java. */
+        /** Writes the place of the last use, nine digits at a time: it may be beyond all whole numbers of Java. */
         void writePlace(StringBuilder out) {
             int n = 0;
             long over = 0;

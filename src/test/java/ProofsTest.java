@@ -119,7 +119,8 @@ public final class ProofsTest {
         Asked.due("27 rules", Asked.rows(hall, 3), "d>a c>a b>a");
         Asked.due("36 three uses", proof(hall, "d", "a"), "d 0<0 c 1<0 b 2<0 a");
         Asked.due("36 turned", proof(hall, "a", "d"), "a 2>0 b 1>0 c 0>0 d");
-        Asked.due("36 within", proof(hall, "e(x0,d)", "e(x0,b)"), "e(x0,d) 0<2 e(x0,c) 1<2 e(x0,b) 2<2 e(x0,a) 2>2 e(x0,b)");
+        Asked.due("36 within", proof(hall, "e(x0,d)", "e(x0,b)"),
+            "e(x0,d) 0<2 e(x0,c) 1<2 e(x0,b) 2<2 e(x0,a) 2>2 e(x0,b)");
     }
 
     /** c(b(x0),x1) = x1 and b(d) = a meet in c(b(d),x0), so that c(a,x0) = x0. */
@@ -309,7 +310,8 @@ public final class ProofsTest {
         String x = "b(b(a))";
         String in = comb(18, x);
         String wide = comb(19, in);
-        String[] terms = {code(5, x), code(3, in), code(1, wide), comb(20, wide), code(0, wide), code(2, in), code(4, x)};
+        String[] terms = {code(5, x), code(3, in), code(1, wide), comb(20, wide), code(0, wide), code(2, in),
+            code(4, x)};
         String[] uses = {"4<0", "2<0", "0<0", "1>0", "3>0", "5>0"};
         for (int i = 0; i < 7; i++) {
             Asked.due("37 term " + i, hall.proofTerm(i).equals(terms[i]), true);
@@ -334,7 +336,8 @@ public final class ProofsTest {
         Asked.due("33 the last rule", hall.row(3, n + 2) + " " + hall.ofRule(n + 2, 2),
             "d(x0," + Asked.nested("b", n, "a") + ")>c(x0," + Asked.nested("b", n, "a") + ") 23");
         String t = comb(10, "a");
-        Asked.push(hall, "d(" + t + "," + Asked.nested("b", n, "a") + ")", "c(" + t + "," + Asked.nested("b", n, "a") + ")");
+        String b = Asked.nested("b", n, "a");
+        Asked.push(hall, "d(" + t + "," + b + ")", "c(" + t + "," + b + ")");
         Asked.due("35 uses", hall.proofSize(), 2 * n + 1);
         long place = 0;
         long size = 19;
@@ -348,7 +351,8 @@ public final class ProofsTest {
         }
         Asked.due("36 far above all int", hall.proofUse(n).length() > 14, true);
         Asked.due("37 the first term", hall.proofTerm(0), hall.text(1));
-        Asked.due("37 a term", hall.proofTerm(1), "e(" + t + ",d(" + comb(13, t) + "," + Asked.nested("b", n - 1, "a") + "))");
+        Asked.due("37 a term", hall.proofTerm(1),
+            "e(" + t + ",d(" + comb(13, t) + "," + Asked.nested("b", n - 1, "a") + "))");
         Asked.due("37 a long one", hall.proofTerm(4).length() > 100000, true);
         Asked.due("37 the last term", hall.proofTerm(2 * n + 1), hall.text(0));
         Asked.refused("37 no text is as long as that", hall, STATE, () -> hall.proofTerm(n));

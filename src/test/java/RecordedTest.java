@@ -27,7 +27,8 @@ public final class RecordedTest {
         Asked.finish("RecordedTest");
     }
 
-    private static int replayed(String name, List<String> lines, Map<String, Method> calls) throws IllegalAccessException {
+    private static int replayed(String name, List<String> lines, Map<String, Method> calls)
+            throws IllegalAccessException {
         Rewritehall hall = new Rewritehall();
         int run = 0;
         for (String line : lines) {

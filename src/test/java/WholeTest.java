@@ -262,7 +262,7 @@ public final class WholeTest {
         return "c(" + Asked.nested("b", k, "d(" + x + ")") + ")";
     }
 
-    /** The chain of each rule goes by the one ahead of it, of what is many times as long: some millions of signs at last. */
+    /** The chain of each rule goes by the one ahead of it, of what is many times as long: millions of signs at last. */
     private static void isSoundByLongTerms() {
         Rewritehall hall = Asked.hall(0, 1, 1, 1, 2);
         Asked.tell(hall, comb(20) + "=" + code(1, "x0"));
