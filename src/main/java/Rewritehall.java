@@ -26,9 +26,9 @@ public final class Rewritehall {
     private static final int APART = 64;
     /** A side that comes has at most 20 variables, each with less than 40 in its place. */
     private static final int COMES = 1000;
-    /** A text that is longer has no room beside all else. */
-    private static final int MOST_TEXT = 3500000;
-    private static final int FUEL = 1000000;
+    /** No array of Java, and so no text, is longer. */
+    private static final int MOST_TEXT = Integer.MAX_VALUE - 8;
+    private static final int FUEL = 100000000;
 
     private static final int[] NOTHING = {};
     private static final int[] GROUPS_TOLD = {
@@ -771,11 +771,10 @@ public final class Rewritehall {
         if (i < 0 || i > count) {
             throw new IndexOutOfBoundsException("no such term");
         }
-        char[] signs = isWalked(i) ? stepper.forest.written(proof.now()) : null;
-        if (signs == null) {
-            throw new IllegalStateException("there is no room for a text as long as that");
+        if (!isWalked(i) || !stepper.forest.isWritten(proof.now(), out)) {
+            throw new IllegalStateException("no text can be as long as that");
         }
-        return new String(signs);
+        return out.toString();
     }
 
     /** Walks the proof as many uses far. */
@@ -1608,7 +1607,8 @@ public final class Rewritehall {
         private static final long NINE_DIGITS = 1000000000;
         private long[] keys = new long[ROOM];
         private long[] notes = new long[ROOM];
-        private int[] heads = new int[ROOM / 4];
+        /** The first node of each row of the table, three rows (21 bits each) in a number. */
+        private long[] heads = new long[ROOM / 4];
         private int count = FIRST;
         private final int[] held = new int[2 * MOST_SIZE];
         /** The way to a part: the nodes above it, and whether it goes on with the second argument of each. */
@@ -1687,9 +1687,11 @@ public final class Rewritehall {
         /** The node of a sign with these arguments; 0 if there is no room. */
         int node(int sign, int a, int b) {
             long key = sign | (long) a << 4 | (long) b << 25;
-            int head = (int) ((key ^ key >>> 25) * MIXED >>> 40) & heads.length - 1;
+            long mixed = (key ^ key >>> 25) * MIXED;
+            int head = (int) (mixed >>> 40) & heads.length - 1;
+            int row = (int) ((mixed >>> 32 & 255) * 3 >>> 8) * BITS;
             int last = count;
-            int n = heads[head];
+            int n = (int) (heads[head] >>> row) & LOW;
             // Each node of a row has a smaller number than the one ahead of it.
             while (n >= FIRST && n < last) {
                 if ((keys[n] & TERM) == key) {
@@ -1706,8 +1708,8 @@ public final class Rewritehall {
             size += arguments > 0 && a >= FIRST && a < count ? keys[a] >>> 46 & 63 : 0;
             size += arguments > 1 && b >= FIRST && b < count ? keys[b] >>> 46 & 63 : 0;
             keys[count] = key | (size > 63 ? 63 : size) << 46;
-            notes[count] = heads[head];
-            heads[head] = count;
+            notes[count] = heads[head] >>> row & LOW;
+            heads[head] = with(heads[head], row, BITS, count);
             count++;
             return count - 1;
         }
@@ -1742,6 +1744,36 @@ public final class Rewritehall {
                 h++;
             }
             return h == 1 ? held[0] : 0;
+        }
+
+        /** Whether a pattern matches a node; what is put for its variables is told. */
+        boolean takes(int[] pattern, int node, int[] puts) {
+            if (pattern.length < 1 || pattern[0] >= 0 && pattern[0] != sign(node) || puts.length < 1) {
+                return false;
+            }
+            Arrays.fill(puts, 0);
+            puts[0] = puts.length - 1;
+            held[0] = node;
+            int h = 1;
+            for (int k = 0; k < pattern.length && h > 0 && h < held.length; k++) {
+                h--;
+                int n = held[h];
+                int v = -1 - pattern[k];
+                if (v < 0) {
+                    int arguments = arguments(n);
+                    if (sign(n) != pattern[k]) {
+                        return false;
+                    }
+                    held[h] = arguments > 1 ? second(n) : first(n);
+                    held[h + 1] = first(n);
+                    h += arguments;
+                } else if (v >= puts.length - 1 || puts[v + 1] != 0 && puts[v + 1] != n) {
+                    return false;
+                } else {
+                    puts[v + 1] = n;
+                }
+            }
+            return h == 0;
         }
 
         /** Writes a term of the bound of size. */
@@ -1789,7 +1821,7 @@ public final class Rewritehall {
             int length = Math.min(MOST, 8 * keys.length);
             keys = Arrays.copyOf(keys, length);
             notes = Arrays.copyOf(notes, length);
-            heads = new int[length / 4];
+            heads = new long[length / 4];
             link();
             return true;
         }
@@ -1799,39 +1831,67 @@ public final class Rewritehall {
             Arrays.fill(heads, 0);
             for (int n = FIRST; n < count && isNode(n); n++) {
                 long key = keys[n] & TERM;
-                int head = (int) ((key ^ key >>> 25) * MIXED >>> 40) & heads.length - 1;
-                notes[n] = with(notes[n], 0, BITS, heads[head]);
-                heads[head] = n;
+                long mixed = (key ^ key >>> 25) * MIXED;
+                int head = (int) (mixed >>> 40) & heads.length - 1;
+                int row = (int) ((mixed >>> 32 & 255) * 3 >>> 8) * BITS;
+                notes[n] = with(notes[n], 0, BITS, heads[head] >>> row & LOW);
+                heads[head] = with(heads[head], row, BITS, n);
             }
         }
 
         /**
-         * Makes room as there is no more: what is young or open is kept, and what that needs. Tells the new number
-         * of an open node; 0 if there is too little room then.
+         * Makes room as there is no more. Of what was noted lately ever less is kept, till a quarter of the room is
+         * free; it is found once more if it is asked for. But what the open nodes need is kept always, and the end of
+         * the one that was closed last, as none has asked for it yet: so the work goes on, whatever is forgotten.
+         * Tells the new number of an open node; 0 if there is too little room even so.
          */
-        int makeRoom(int open) {
-            for (int n = FIRST; n < count && isNode(n); n++) {
-                if (n >= count / 2 || isOpen(n)) {
-                    keys[n] |= KEPT;
+        int makeRoom(int open, int last) {
+            int kept = count;
+            for (int share = 2; share <= 128 && kept > keys.length - keys.length / 4; share *= 4) {
+                if (share == 128) {
+                    shorten(open);
                 }
+                mark(share == 128 ? count : count - count / share, last);
+                spread(false);
+                spread(true);
+                spread(false);
+                kept = number();
             }
-            boolean isMore = true;
-            for (int k = 0; k < 60 && isMore; k++) {
-                isMore = spreads(true);
-            }
-            spreads(false);
-            int kept = number();
             int moved = renamed(open);
             rename();
             move(kept);
             link();
-            return count > keys.length - keys.length / 8 ? 0 : moved;
+            return count + RESERVE > keys.length - keys.length / 32 ? 0 : moved;
         }
 
-        /** What is kept keeps its arguments, and what else it tells of; tells whether some of that was passed by. */
-        private boolean spreads(boolean isAll) {
-            boolean isMore = false;
-            for (int n = count - 1; n >= FIRST && isNode(n); n--) {
+        /** Of the open nodes that steps lead through only the first one and the last one are needed. */
+        private void shorten(int open) {
+            int n = open;
+            for (int k = 0; k < count && n >= FIRST; k++) {
+                int over = endOf(n);
+                int steps = stepsOf(n);
+                for (int i = 1; i < steps && stepsOf(over) > 0; i++) {
+                    int ahead = endOf(over);
+                    setEnd(over, false, 0, 0);
+                    over = ahead;
+                }
+                setEnd(n, true, over, steps);
+                n = over;
+            }
+        }
+
+        /** Nodes from one on, those that are open, and the one that was closed last with its end are to be kept. */
+        private void mark(int from, int last) {
+            for (int n = FIRST; n < count && isNode(n); n++) {
+                keys[n] = n >= from || isOpen(n) ? keys[n] | KEPT : keys[n] & ~KEPT;
+            }
+            keep(last);
+            keep(endOf(last));
+        }
+
+        /** What is kept keeps its arguments; and, if that is asked for, what comes for it, and its end. */
+        private void spread(boolean isAll) {
+            for (int n = count - 1; n >= FIRST && n < keys.length; n--) {
                 if (keys[n] >= 0) {
                     continue;
                 }
@@ -1843,19 +1903,16 @@ public final class Rewritehall {
                     keep(second(n));
                 }
                 if (isAll) {
-                    isMore = keep(comesOf(n)) && comesOf(n) > n || isMore;
-                    isMore = keep(endOf(n)) && endOf(n) > n || isMore;
+                    keep(comesOf(n));
+                    keep(endOf(n));
                 }
             }
-            return isMore;
         }
 
-        private boolean keep(int n) {
-            if (!isNode(n) || keys[n] < 0) {
-                return false;
+        private void keep(int n) {
+            if (n >= FIRST && n < count && n < keys.length) {
+                keys[n] |= KEPT;
             }
-            keys[n] |= KEPT;
-            return true;
         }
 
         /** Each node that is kept notes its new number; tells the one behind the last. */
@@ -1886,7 +1943,8 @@ public final class Rewritehall {
                 int arguments = arguments(n);
                 int comes = renamed(comesOf(n));
                 int end = renamed(endOf(n));
-                setStage(n, comes == 0 ? 0 : stageOf(n), comes);
+                // A stage at which nothing comes yet stays what it is.
+                setStage(n, comes == comesOf(n) || comes > 0 ? stageOf(n) : 0, comes);
                 setEnd(n, isOpen(n), end, end == 0 && !isOpen(n) ? 0 : stepsOf(n));
                 if (arguments > 0) {
                     keys[n] = with(keys[n], 4, BITS, renamed(first(n)));
@@ -1947,34 +2005,36 @@ public final class Rewritehall {
             }
         }
 
-        /** The text of a term of any size; null if there is no room for it. */
-        char[] written(int term) {
+        /** Writes the text of a term of any size, in a row that is made as long at once; not if none can be. */
+        boolean isWritten(int term, StringBuilder out) {
             tellLengths();
-            int length = (int) told(term);
+            long length = told(term);
             if (length < 1 || length > MOST_TEXT) {
-                return null;
+                return false;
             }
-            char[] out = new char[length];
+            out.setLength((int) length);
             held[0] = term;
             held[1] = 0;
             int h = 2;
             // Each time at least one sign is written.
-            for (int k = 0; k < length && h > 1 && h + 2 <= held.length; k++) {
+            for (long k = 0; k < length && h > 1 && h + 2 <= held.length; k++) {
                 h -= 2;
                 h = writeSign(held[h], held[h + 1], out, h);
             }
-            return out;
+            return true;
         }
 
         /** Writes a sign with what is around its arguments; these are held, the shorter one last, so that few are. */
-        private int writeSign(int n, int from, char[] out, int h) {
+        private int writeSign(int n, int from, StringBuilder out, int h) {
             int c = sign(n);
             int a = first(n);
             int b = second(n);
             if (c == VARIABLE) {
                 set(out, from, 'x');
-                set(out, from + 1, (char) ('0' + a / 10 % 10));
-                set(out, a < 10 ? from + 1 : from + 2, (char) ('0' + a % 10));
+                set(out, from + 1, (char) ('0' + (a < 10 ? a : a / 10 % 10)));
+                if (a >= 10) {
+                    set(out, from + 2, (char) ('0' + a % 10));
+                }
                 return h;
             }
             set(out, from, (char) ('a' + c / 3));
@@ -1994,9 +2054,9 @@ public final class Rewritehall {
             return hold(a, from + 2, hold(b, behind + 1, h));
         }
 
-        private static void set(char[] out, int at, char sign) {
-            if (at >= 0 && at < out.length) {
-                out[at] = sign;
+        private static void set(StringBuilder out, int at, char sign) {
+            if (at >= 0 && at < out.length()) {
+                out.setCharAt(at, sign);
             }
         }
 
@@ -2019,8 +2079,8 @@ public final class Rewritehall {
         private static final int WANTS = 3;
         /** The stage of a node behind all looks. */
         private static final int LOOKED = 15;
-        /** In one call; far above what can be waited for. */
-        private static final int MOST_LOOKS = 1 << 26;
+        /** In one call; nobody waits for as many. */
+        private static final long MOST_LOOKS = 1L << 40;
         private final Rows rows;
         private final Orders orders;
         final Forest forest = new Forest();
@@ -2031,6 +2091,8 @@ public final class Rewritehall {
         private final Word spare = new Word(MOST_SIZE + 1);
         private final Word part = new Word(MOST_SIZE + 1);
         private final boolean[] isRedex = new boolean[MOST_SIZE + 1];
+        /** How many variables may have something put for them, and the nodes that are put. */
+        private final int[] puts = new int[APART + 1];
         /** The use that was found last, and whether what comes by it is too large. */
         private Pair pair;
         private boolean isBack;
@@ -2038,9 +2100,10 @@ public final class Rewritehall {
         private boolean isLarge;
         /** The redex that was found last. */
         private int spot;
-        private int looks;
-        /** The node whose end has to be found first. */
+        private long looks;
+        /** The node whose end has to be found first, and the one whose end was found last. */
         private int wanted;
+        private int last;
         /** The part of an open node that was looked at last, and how long the way to it is. */
         private int at;
         private int depth;
@@ -2191,8 +2254,9 @@ public final class Rewritehall {
         }
 
         /**
-         * What comes for the part at p by its first use. Each node that is open waits for one that was opened behind
-         * it; its end is that which waits for it, and its steps are how many were made ahead of it to the same end.
+         * What comes for the part at p by its first use. Each node that is open waits for the one that was opened
+         * behind it, and notes in place of its end the one that waits for it: the one whose condition needs it, or, if
+         * it came about by steps to an end (it notes how many), the one from which these steps led to it.
          * As conditions lie within conditions as deep as they like, that row takes the place of calls in calls.
          */
         private int comesFor(Word w, int p) {
@@ -2202,10 +2266,12 @@ public final class Rewritehall {
             }
             forest.setEnd(now, true, 0, 0);
             boolean isFresh = true;
+            last = 0;
             while (looks < MOST_LOOKS && now >= Forest.FIRST) {
                 looks++;
                 if (forest.isNearlyFull() && !forest.grows()) {
-                    now = forest.makeRoom(now);
+                    now = forest.makeRoom(now, last);
+                    last = 0;
                     isFresh = true;
                 }
                 int over = forest.endOf(now);
@@ -2220,7 +2286,7 @@ public final class Rewritehall {
                 }
                 isFresh = found != NO_USE;
                 if (isFresh) {
-                    now = found == WANTS ? opened(wanted, now, 0) : goneOn(now, found, over);
+                    now = found == WANTS ? opened(wanted, now, 0) : goneOn(now, found);
                 }
             }
             return BROKEN;
@@ -2236,10 +2302,9 @@ public final class Rewritehall {
         }
 
         /** An open node makes the step at the redex that was found, or is its own end. Tells which one is next. */
-        private int goneOn(int now, int found, int over) {
+        private int goneOn(int now, int found) {
             if (found == ENDED) {
-                forest.setEnd(now, false, now, 0);
-                return over;
+                return closed(now, now, 0);
             }
             int next = found == TOO_LARGE ? 0 : forest.rebuilt(depth, found);
             if (next < Forest.FIRST || forest.sizeOf(next) > MOST_SIZE) {
@@ -2249,9 +2314,28 @@ public final class Rewritehall {
             if (end < Forest.FIRST) {
                 return opened(next, now, forest.stepsOf(now) + 1);
             }
-            int steps = forest.stepsOf(next) + 1;
-            forest.setEnd(now, false, end, steps);
-            return steps > MOST_STEPS ? 0 : over;
+            return closed(now, end, forest.stepsOf(next) + 1);
+        }
+
+        /**
+         * Notes the end of an open node and of all those from which steps led to it. Tells which one waits for the
+         * first of these; 0 if they are too many steps.
+         */
+        private int closed(int now, int end, int steps) {
+            int n = now;
+            int count = steps;
+            for (int k = 0; k <= MOST_STEPS && count <= MOST_STEPS; k++) {
+                int over = forest.endOf(n);
+                int ahead = forest.stepsOf(n);
+                forest.setEnd(n, false, end, count);
+                if (ahead == 0) {
+                    last = n;
+                    return over;
+                }
+                count += ahead - forest.stepsOf(over);
+                n = over;
+            }
+            return 0;
         }
 
         private int knownEnd(int n) {
@@ -2276,7 +2360,7 @@ public final class Rewritehall {
                     depth++;
                     at = forest.first(at);
                 } else {
-                    depth = closed(at, depth);
+                    depth = passed(at, depth);
                     if (depth == 0) {
                         return 0;
                     }
@@ -2288,7 +2372,7 @@ public final class Rewritehall {
         }
 
         /** What was passed on the way has no redex, so it is its own end; tells how deep the next argument lies. */
-        private int closed(int now, int depth) {
+        private int passed(int now, int depth) {
             int n = now;
             int d = Math.min(depth, forest.way.length);
             while (d > 0) {
@@ -2312,12 +2396,18 @@ public final class Rewritehall {
             if (stage == LOOKED) {
                 return forest.comesOf(n);
             }
-            forest.write(n, part);
-            boolean isThere = stage == 0 && isPlain(part, 0);
+            boolean isThere = false;
+            if (stage == 0 && rows.unturnedCount == 0) {
+                isThere = isByRules(n);
+            } else if (stage == 0) {
+                forest.write(n, part);
+                isThere = isPlain(part, 0) && pair != null
+                    && forest.takes(isBack ? pair.right : pair.left, n, puts);
+            }
             int all = 2 * Math.min(rows.guardedCount, rows.guarded.length);
             for (int k = Math.max(0, stage - 1); k < all && !isThere; k++) {
                 Pair rule = rows.guarded[k / 2];
-                if (rule == null || !takes(rule.left, rule.left.length, part, 0)) {
+                if (rule == null || !forest.takes(rule.left, n, puts)) {
                     k |= 1;
                     continue;
                 }
@@ -2335,22 +2425,30 @@ public final class Rewritehall {
                 }
             }
             int comes = NO_USE;
-            if (isThere) {
-                bring(part);
-                comes = isLarge ? TOO_LARGE : forest.planted(came.at, 0, came.size, NOTHING, 0);
+            if (isThere && side != null) {
+                comes = forest.planted(side, 0, side.length, puts, 0);
+                comes = forest.sizeOf(comes) > MOST_SIZE ? TOO_LARGE : comes;
             }
             forest.setStage(n, LOOKED, comes);
             return comes == 0 ? BROKEN : comes;
         }
 
-        /** The end of one or other of a condition, as it is made of the part; WANTS, if that has to be found. */
-        private int endMade(int[] made) {
-            comes.size = 0;
-            if (!makes(made, part, comes, MOST_SIZE)) {
-                return BROKEN;
+        /** Looks for the first use of a rule at a node, with what is put for the variables of its left side. */
+        private boolean isByRules(int n) {
+            for (int k = 0; k < rows.ruleCount && k < rows.rules.length; k++) {
+                Pair rule = rows.rules[k];
+                if (rule != null && forest.takes(rule.left, n, puts)) {
+                    side = rule.right;
+                    return true;
+                }
             }
-            int n = forest.planted(comes.at, 0, comes.size, NOTHING, 0);
-            int end = n < Forest.FIRST ? BROKEN : knownEnd(n);
+            return false;
+        }
+
+        /** The end of one or other of a condition, as it is made of what is put; WANTS, if that has to be found. */
+        private int endMade(int[] made) {
+            int n = forest.planted(made, 0, made.length, puts, 0);
+            int end = n < Forest.FIRST || forest.sizeOf(n) > MOST_SIZE ? BROKEN : knownEnd(n);
             if (end == 0) {
                 wanted = n;
                 return WANTS;

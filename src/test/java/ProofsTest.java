@@ -26,6 +26,7 @@ public final class ProofsTest {
         aBoundOfSteps();
         aProofOfWhatAnOldRuleSaid();
         longTerms();
+        veryLongTexts();
         placesBeyondAllNumbers();
         Asked.finish("ProofsTest");
     }
@@ -322,6 +323,34 @@ public final class ProofsTest {
         hall.exchange();
         Asked.due("38 turned", hall.isProved(), true);
         Asked.due("37 turned", hall.proofTerm(3).equals(terms[3]), true);
+    }
+
+    /** As above with three combs more: the longest text has some fourteen millions of signs. */
+    private static void veryLongTexts() {
+        Rewritehall hall = Asked.hall(0, 1, 1, 1, 2);
+        Asked.tell(hall, comb(20, "x0") + "=" + code(1, "x0"));
+        hall.complete();
+        Asked.tell(hall, comb(20, "x0") + "=" + code(0, "x0"));
+        hall.complete();
+        for (int k = 0; k < 4; k++) {
+            for (int side = 1; side >= 0; side--) {
+                Asked.tell(hall, code(2 * k + side, comb(19 - k, "x0")) + "=" + code(2 * k + 2 + side, "x0"));
+                hall.complete();
+            }
+        }
+        String x = "b(x3)";
+        Asked.push(hall, code(9, x), code(8, x));
+        Asked.due("35 ten uses", hall.proofSize(), 10);
+        String due = x;
+        for (int leaves = 16; leaves <= 20; leaves++) {
+            due = comb(leaves, due);
+        }
+        Asked.due("37 how long", due.length() > 14000000, true);
+        Asked.due("37 the longest one", hall.proofTerm(5).equals(due), true);
+        Asked.due("37 a short one behind it", hall.proofTerm(10), code(8, x));
+        Asked.due("36 the longest one", hall.proofUse(5), "1>0");
+        Asked.due("11 a text behind it", hall.text(0), code(8, x));
+        Asked.due("38 proved", hall.isProved(), true);
     }
 
     /** d(x, b(..)) = c(x, b(..)) by way of e(x, d(comb of x, ..)), and so on: each time the comb is of combs. */

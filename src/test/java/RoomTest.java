@@ -18,6 +18,8 @@ public final class RoomTest {
         runsAnew();
         refusedSteps();
         conditions();
+        manyTerms();
+        longTexts();
         Asked.finish("RoomTest");
     }
 
@@ -82,5 +84,35 @@ public final class RoomTest {
             Asked.due("22 no step", hall.steps(calls % 4), 0);
         }
         Asked.due("22 again and again", made() - before < ROOM / 4, true);
+    }
+
+    /** There are more terms to be looked at than the room has place for. */
+    private static void manyTerms() {
+        Rewritehall hall = Asked.hall(0, 1, 1, 1, 2);
+        Asked.push(hall, "e(d(x0),x1)", "a", "e(x0,b(x1))", "e(x0,c(x1))");
+        hall.condition();
+        Asked.push(hall, "e(d(x0),x1)", "a", "e(x0,d(x1))", "a");
+        hall.condition();
+        Asked.push(hall, "e(" + Asked.nested("d", 13, "a") + ",a)");
+        long before = made();
+        Asked.due("23 none", hall.redexes(), 0);
+        Asked.due("22 none", hall.steps(0), 0);
+        // Nearly all elements are numbers of eight bytes each.
+        Asked.due("23 four fifths of the room", made() - before < 2 * ROOM * 4 / 5, true);
+    }
+
+    /** A text needs one row of signs to be written in, which is used again, and itself. */
+    private static void longTexts() {
+        Rewritehall hall = Asked.hall(0, 1, 2, 2, 2);
+        String wide = "e(".repeat(12) + "x0" + ",x0)".repeat(12);
+        Asked.tell(hall, "d(x0,a)=c(x0,a)", "e(x0,d(" + wide + ",x1))=d(x0,b(x1))",
+            "e(x0,c(" + wide + ",x1))=c(x0,b(x1))");
+        hall.finish(12);
+        Asked.push(hall, "d(a," + Asked.nested("b", 5, "a") + ")", "c(a," + Asked.nested("b", 5, "a") + ")");
+        int length = hall.proofTerm(5).length();
+        Asked.due("37 long", length > 1500000, true);
+        long before = made();
+        hall.proofTerm(5);
+        Asked.due("37 once more", made() - before < length + length / 5, true);
     }
 }

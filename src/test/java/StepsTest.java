@@ -27,6 +27,8 @@ public final class StepsTest {
         conditionsFartherDown();
         muchLooking();
         moreLooking();
+        manyTerms();
+        sixtyStepsByKnownEnds();
         looksThatAreKeptApart();
         Asked.finish("StepsTest");
     }
@@ -437,6 +439,49 @@ public final class StepsTest {
         Asked.push(hall, Asked.nested("b", 11, "a"));
         Asked.due("22 no step", hall.steps(0), 0);
         Asked.due("23 no redex", hall.redexes(), 0);
+    }
+
+    /** All rows of three letters up to so many are looked at, and no condition but the last one holds. */
+    private static void manyTerms() {
+        Rewritehall hall = Asked.hall(0, 1, 1, 1, 2);
+        Asked.push(hall, "e(d(x0),x1)", "a", "e(x0,b(x1))", "e(x0,c(x1))");
+        hall.condition();
+        Asked.push(hall, "e(d(x0),x1)", "a", "e(x0,d(x1))", "a");
+        hall.condition();
+        Asked.push(hall, "e(" + Asked.nested("d", 10, "a") + ",a)");
+        Asked.due("23 none", hall.redexes(), 0);
+        Asked.due("20 no step", hall.step(2), -1);
+        Asked.push(hall, "e(b(x0),x1)", "e(x0,x1)", "x0", "x0");
+        hall.condition();
+        Asked.due("23 none of b", hall.redexes(), 0);
+        hall.drop();
+        Asked.push(hall, "e(" + Asked.nested("d", 9, "b(x0)") + ",x1)");
+        Asked.due("23 the last b", hall.redexes(), 0);
+        Asked.push(hall, "e(" + Asked.nested("b", 9, "d(x0)") + ",x1)");
+        Asked.due("22 all b are gone", hall.end(0), 9);
+        Asked.due("21 what is left", hall.text(0), "e(d(x0),x1)");
+    }
+
+    /** What takes 56 steps is noted; what comes to it by seven others takes 63. */
+    private static void sixtyStepsByKnownEnds() {
+        Rewritehall hall = Asked.hall(0, 1, 1, 2);
+        Asked.tell(hall, "c(b(x0))=b(c(x0))");
+        Asked.due("27 c moves behind b", hall.complete(), 1);
+        Asked.push(hall, "d(x0,x1)", "a", "b(x0)", "c(x1)");
+        hall.condition();
+        Asked.push(hall, "d(" + sorted(7, 8) + "," + sorted(6, 9) + ")");
+        Asked.refused("23 63 steps", hall, STATE, () -> hall.redexes());
+        Asked.refused("22 63 steps", hall, STATE, () -> hall.steps(0));
+        Asked.push(hall, "d(" + sorted(6, 9) + "," + sorted(5, 10) + ")");
+        Asked.due("23 60 steps", hall.redexes(), 3);
+        Asked.due("21 at once", hall.end(0), 1);
+        Asked.push(hall, "d(" + sorted(6, 9) + "," + sorted(5, 9) + ")");
+        Asked.due("23 not alike", hall.redexes(), 2);
+    }
+
+    /** So many c with so many b inside. */
+    private static String sorted(int c, int b) {
+        return Asked.nested("c", c, Asked.nested("b", b, "a"));
     }
 
     /** What was found by some rules is not taken for found by others. */
