@@ -1595,12 +1595,21 @@ public final class Rewritehall {
         static final int VARIABLE = 15;
         /** Smaller numbers are no nodes. */
         static final int FIRST = 4;
+        /** In place of the node that waits: it was written on the shelf last. */
+        static final int SHELF = 1;
+        /** The stage of a node behind all looks, and what comes for it if no use was found. */
+        static final int LOOKED = 15;
+        static final int NO_USE = 1;
         private static final int BITS = 21;
         private static final int LOW = (1 << BITS) - 1;
         private static final int MOST = 1 << BITS;
         private static final int ROOM = 1 << 12;
         /** More than this is never made between two looks at the room that is left. */
         private static final int RESERVE = 1 << 10;
+        /** What one that waits needs on the shelf at most, and how long the shelf gets. */
+        private static final int RECORD = 16;
+        private static final int MOST_SHELF = 1 << 28;
+        private static final int VARIABLES = 128;
         private static final long TERM = (1L << 46) - 1;
         private static final long KEPT = 1L << 63;
         private static final long MIXED = 0x9E3779B97F4A7C15L;
@@ -1614,9 +1623,16 @@ public final class Rewritehall {
         /** The way to a part: the nodes above it, and whether it goes on with the second argument of each. */
         final int[] way = new int[MOST_SIZE + 2];
         final boolean[] isSecond = new boolean[MOST_SIZE + 2];
+        /** The end that was found last. */
+        int last;
+        /** Those that wait and have no room as nodes: eight signs in a number, and a number that tells the rest. */
+        private long[] shelf = new long[0];
+        private int shelved;
+        private final int[] signs = new int[MOST_SIZE];
 
         void clear() {
             count = FIRST;
+            shelved = 0;
             Arrays.fill(heads, 0);
         }
 
@@ -1709,7 +1725,7 @@ public final class Rewritehall {
             size += arguments > 1 && b >= FIRST && b < count ? keys[b] >>> 46 & 63 : 0;
             keys[count] = key | (size > 63 ? 63 : size) << 46;
             notes[count] = heads[head] >>> row & LOW;
-            heads[head] = with(heads[head], row, BITS, count);
+            heads[head] = heads[head] & ~((long) LOW << row) | (long) count << row;
             count++;
             return count - 1;
         }
@@ -1839,73 +1855,87 @@ public final class Rewritehall {
             }
         }
 
+        /** Whether it is better that what waits is written on the shelf. */
+        boolean isCrowded() {
+            return count > keys.length - keys.length / 4;
+        }
+
         /**
          * Makes room as there is no more. Of what was noted lately ever less is kept, till a quarter of the room is
-         * free; it is found once more if it is asked for. But what the open nodes need is kept always, and the end of
-         * the one that was closed last, as none has asked for it yet: so the work goes on, whatever is forgotten.
-         * Tells the new number of an open node; 0 if there is too little room even so.
+         * free; it is found once more if it is asked for. But what the open nodes need is kept always, and the end
+         * that was found last: so the work goes on, whatever is forgotten. Tells the new number of an open node.
          */
-        int makeRoom(int open, int last) {
+        int makeRoom(int open) {
             int kept = count;
             for (int share = 2; share <= 128 && kept > keys.length - keys.length / 4; share *= 4) {
+                mark(share == 128 ? count : count - count / share);
+                spread();
                 if (share == 128) {
-                    shorten(open);
+                    spreadOnce();
+                } else {
+                    spreadAll();
                 }
-                mark(share == 128 ? count : count - count / share, last);
-                spread(false);
-                spread(true);
-                spread(false);
+                spread();
                 kept = number();
             }
             int moved = renamed(open);
+            last = renamed(last);
             rename();
             move(kept);
             link();
-            return count + RESERVE > keys.length - keys.length / 32 ? 0 : moved;
+            return moved;
         }
 
-        /** Of the open nodes that steps lead through only the first one and the last one are needed. */
-        private void shorten(int open) {
-            int n = open;
-            for (int k = 0; k < count && n >= FIRST; k++) {
-                int over = endOf(n);
-                int steps = stepsOf(n);
-                for (int i = 1; i < steps && stepsOf(over) > 0; i++) {
-                    int ahead = endOf(over);
-                    setEnd(over, false, 0, 0);
-                    over = ahead;
-                }
-                setEnd(n, true, over, steps);
-                n = over;
-            }
-        }
-
-        /** Nodes from one on, those that are open, and the one that was closed last with its end are to be kept. */
-        private void mark(int from, int last) {
+        /** Nodes from one on, those that are open, and the end that was found last are to be kept. */
+        private void mark(int from) {
             for (int n = FIRST; n < count && isNode(n); n++) {
-                keys[n] = n >= from || isOpen(n) ? keys[n] | KEPT : keys[n] & ~KEPT;
+                keys[n] = n >= from || n == last || isOpen(n) ? keys[n] | KEPT : keys[n] & ~KEPT;
             }
-            keep(last);
-            keep(endOf(last));
         }
 
-        /** What is kept keeps its arguments; and, if that is asked for, what comes for it, and its end. */
-        private void spread(boolean isAll) {
+        /** What is kept keeps its arguments. */
+        private void spread() {
             for (int n = count - 1; n >= FIRST && n < keys.length; n--) {
-                if (keys[n] >= 0) {
-                    continue;
+                if (keys[n] < 0) {
+                    int arguments = arguments(n);
+                    keep(arguments > 0 ? first(n) : 0);
+                    keep(arguments > 1 ? second(n) : 0);
                 }
-                int arguments = arguments(n);
-                if (arguments > 0) {
-                    keep(first(n));
-                }
-                if (arguments > 1) {
-                    keep(second(n));
-                }
-                if (isAll) {
+            }
+        }
+
+        /** What is kept keeps what comes for it, and its end; and so do these, if they are older. */
+        private void spreadAll() {
+            for (int n = count - 1; n >= FIRST && n < keys.length; n--) {
+                if (keys[n] < 0) {
+                    int arguments = arguments(n);
+                    keep(arguments > 0 ? first(n) : 0);
+                    keep(arguments > 1 ? second(n) : 0);
                     keep(comesOf(n));
                     keep(endOf(n));
                 }
+            }
+        }
+
+        /** What is kept keeps what comes for it, and its end; these don't. */
+        private void spreadOnce() {
+            for (int n = count - 1; n >= FIRST && n < keys.length; n--) {
+                if (keys[n] < 0) {
+                    found(comesOf(n));
+                    found(endOf(n));
+                }
+            }
+            for (int n = FIRST; n < count && n < notes.length; n++) {
+                if (notes[n] < 0) {
+                    notes[n] &= ~KEPT;
+                    keep(n);
+                }
+            }
+        }
+
+        private void found(int n) {
+            if (n >= FIRST && n < count && n < notes.length) {
+                notes[n] |= KEPT;
             }
         }
 
@@ -1964,6 +1994,140 @@ public final class Rewritehall {
                 }
             }
             count = behind;
+        }
+
+        /** All that waits is written on the shelf, but for the last one. Tells whether there is room for it. */
+        boolean isShelved(int open) {
+            int above = 0;
+            int n = waiter(open);
+            // The row is turned, as the one that waits longest is written first.
+            for (int k = 0; k < count && n >= FIRST; k++) {
+                int below = waiter(n);
+                setEnd(n, true, above, stepsOf(n));
+                above = n;
+                n = below;
+            }
+            for (int k = 0; k < count && above >= FIRST; k++) {
+                if (shelved + RECORD > shelf.length && !isLonger()) {
+                    return false;
+                }
+                n = above;
+                above = endOf(n);
+                shelve(n);
+                setEnd(n, false, 0, 0);
+            }
+            setEnd(open, true, shelved > 0 ? SHELF : 0, stepsOf(open));
+            return true;
+        }
+
+        /** The one that waits for an open node, or for the first of those from which steps led to it: they are shut. */
+        private int waiter(int open) {
+            int over = endOf(open);
+            int steps = stepsOf(open);
+            for (int k = 0; k < MOST_STEPS && steps > 0 && over >= FIRST; k++) {
+                int n = over;
+                over = endOf(n);
+                steps = stepsOf(n);
+                setEnd(n, false, 0, 0);
+            }
+            return over;
+        }
+
+        private boolean isLonger() {
+            if (shelf.length >= MOST_SHELF) {
+                return false;
+            }
+            shelf = Arrays.copyOf(shelf, Math.max(ROOM, 2 * shelf.length));
+            return true;
+        }
+
+        /** Writes one that waits on the shelf, with the place that was looked at last, and how far. */
+        private void shelve(int n) {
+            int h = 1;
+            int place = 0;
+            int looked = n;
+            held[0] = n;
+            for (int k = 0; k < held.length && h > 0 && h + 1 < held.length; k++) {
+                h--;
+                looked = held[h];
+                boolean isEnd = !isOpen(looked) && endOf(looked) == looked;
+                if (!isEnd && (stageOf(looked) != LOOKED || comesOf(looked) != NO_USE)) {
+                    break;
+                }
+                int arguments = isEnd ? 0 : arguments(looked);
+                place += isEnd ? sizeOf(looked) : 1;
+                held[h] = arguments > 1 ? second(looked) : first(looked);
+                held[h + 1] = first(looked);
+                h += arguments;
+            }
+            long stage = stageOf(looked);
+            int comes = comesOf(looked);
+            long sizeOfComes = comes < FIRST ? 0 : shelveSigns(comes);
+            long size = shelveSigns(n);
+            if (shelved < shelf.length) {
+                shelf[shelved] = size | sizeOfComes << 8 | (long) stepsOf(n) << 16 | (long) place << 24 | stage << 32;
+                shelved++;
+            }
+        }
+
+        /** Writes a term on the shelf; tells how many signs it has. */
+        private int shelveSigns(int term) {
+            int h = 1;
+            int size = 0;
+            held[0] = term;
+            while (h > 0 && h + 1 < held.length && size < MOST_SIZE && shelved < shelf.length) {
+                h--;
+                int n = held[h];
+                int arguments = arguments(n);
+                long sign = sign(n) == VARIABLE ? VARIABLES + first(n) % VARIABLES : sign(n);
+                shelf[shelved] = size % 8 == 0 ? sign : shelf[shelved] | sign << size % 8 * 8;
+                size++;
+                shelved += size % 8 == 0 ? 1 : 0;
+                held[h] = arguments > 1 ? second(n) : first(n);
+                held[h + 1] = first(n);
+                h += arguments;
+            }
+            shelved += size % 8 == 0 ? 0 : 1;
+            return size;
+        }
+
+        /** The one that was written on the shelf last is a node again, and waits as it did; 0 if that may not be. */
+        int unshelved() {
+            if (shelved < 1 || shelved > shelf.length) {
+                return 0;
+            }
+            shelved--;
+            long rest = shelf[shelved];
+            int n = unshelvedTerm((int) rest & 63);
+            int comes = (rest >> 8 & 63) == 0 ? 0 : unshelvedTerm((int) (rest >> 8) & 63);
+            int place = (int) (rest >> 24) & 63;
+            int h = 1;
+            held[0] = n;
+            for (int k = 0; k <= place && h > 0 && h + 1 < held.length; k++) {
+                h--;
+                int part = held[h];
+                int arguments = arguments(part);
+                setStage(part, k < place ? LOOKED : (int) (rest >> 32) & 15, k < place ? NO_USE : comes);
+                held[h] = arguments > 1 ? second(part) : first(part);
+                held[h + 1] = first(part);
+                h += arguments;
+            }
+            setEnd(n, true, shelved > 0 ? SHELF : 0, (int) (rest >> 16) & 63);
+            return n;
+        }
+
+        /** The term of so many signs that was written on the shelf last. */
+        private int unshelvedTerm(int size) {
+            int from = shelved - (size + 7) / 8;
+            if (from < 0 || size > signs.length) {
+                return 0;
+            }
+            for (int k = 0; k < size && from + k / 8 < shelf.length; k++) {
+                int sign = (int) (shelf[from + k / 8] >>> k % 8 * 8) & 255;
+                signs[k] = sign < VARIABLES ? sign : VARIABLES - 1 - sign;
+            }
+            shelved = from;
+            return planted(signs, 0, size, NOTHING, 0);
         }
 
         private void tell(int n, long value) {
@@ -2074,11 +2238,10 @@ public final class Rewritehall {
     private static final class Stepper {
         /** What a look finds, if no node: no redex is left, none is here, it is too large, or an end is wanted. */
         private static final int ENDED = 0;
-        private static final int NO_USE = 1;
+        private static final int NO_USE = Forest.NO_USE;
         private static final int TOO_LARGE = 2;
         private static final int WANTS = 3;
-        /** The stage of a node behind all looks. */
-        private static final int LOOKED = 15;
+        private static final int LOOKED = Forest.LOOKED;
         /** In one call; nobody waits for as many. */
         private static final long MOST_LOOKS = 1L << 40;
         private final Rows rows;
@@ -2101,9 +2264,10 @@ public final class Rewritehall {
         /** The redex that was found last. */
         private int spot;
         private long looks;
-        /** The node whose end has to be found first, and the one whose end was found last. */
+        /** The node whose end has to be found first. */
         private int wanted;
-        private int last;
+        /** How many steps led to the end that was found last, till the one that waits for it asks for it. */
+        private int stepsOfLast;
         /** The part of an open node that was looked at last, and how long the way to it is. */
         private int at;
         private int depth;
@@ -2266,12 +2430,14 @@ public final class Rewritehall {
             }
             forest.setEnd(now, true, 0, 0);
             boolean isFresh = true;
-            last = 0;
+            stepsOfLast = NONE;
             while (looks < MOST_LOOKS && now >= Forest.FIRST) {
                 looks++;
                 if (forest.isNearlyFull() && !forest.grows()) {
-                    now = forest.makeRoom(now, last);
-                    last = 0;
+                    now = forest.makeRoom(now);
+                    if (forest.isCrowded()) {
+                        now = forest.isShelved(now) ? forest.makeRoom(now) : 0;
+                    }
                     isFresh = true;
                 }
                 int over = forest.endOf(now);
@@ -2287,6 +2453,7 @@ public final class Rewritehall {
                 isFresh = found != NO_USE;
                 if (isFresh) {
                     now = found == WANTS ? opened(wanted, now, 0) : goneOn(now, found);
+                    now = now == Forest.SHELF ? forest.unshelved() : now;
                 }
             }
             return BROKEN;
@@ -2318,8 +2485,8 @@ public final class Rewritehall {
         }
 
         /**
-         * Notes the end of an open node and of all those from which steps led to it. Tells which one waits for the
-         * first of these; 0 if they are too many steps.
+         * Notes the end of an open node and of those from which steps led to it, as far as they are nodes. Tells which
+         * one waits for the first of them; 0 if they are too many steps.
          */
         private int closed(int now, int end, int steps) {
             int n = now;
@@ -2328,9 +2495,10 @@ public final class Rewritehall {
                 int over = forest.endOf(n);
                 int ahead = forest.stepsOf(n);
                 forest.setEnd(n, false, end, count);
-                if (ahead == 0) {
-                    last = n;
-                    return over;
+                if (ahead == 0 || over == Forest.SHELF) {
+                    forest.last = end;
+                    stepsOfLast = count + ahead;
+                    return stepsOfLast > MOST_STEPS ? 0 : over;
                 }
                 count += ahead - forest.stepsOf(over);
                 n = over;
@@ -2449,6 +2617,12 @@ public final class Rewritehall {
         private int endMade(int[] made) {
             int n = forest.planted(made, 0, made.length, puts, 0);
             int end = n < Forest.FIRST || forest.sizeOf(n) > MOST_SIZE ? BROKEN : knownEnd(n);
+            if (end == 0 && stepsOfLast >= 0) {
+                // It was found, but the node from which the steps led to it is forgotten.
+                end = forest.last;
+                forest.setEnd(n, false, end, stepsOfLast);
+            }
+            stepsOfLast = NONE;
             if (end == 0) {
                 wanted = n;
                 return WANTS;

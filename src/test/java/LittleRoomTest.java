@@ -236,30 +236,36 @@ public final class LittleRoomTest {
             both(what, "equation");
             Asked.due(what + ", b goes over a, and is gone at " + f, both(what, "complete"), "1");
         }
-        for (int f = 4; f > 1; f--) {
-            int wide = 1 + random.nextInt(6);
-            int deep = f == 2 ? 0 : 1 + random.nextInt(3);
-            both(what, "variable", 0);
-            both(what, "apply", f);
-            both(what, "variable", 0);
-            both(what, "variable", 0);
-            apply(what, f - 1, deep);
-            apply(what, 0, wide);
-            apply(what, 1, 1 + random.nextInt(3));
-            boolean isWide = random.nextInt(3) > 0;
-            both(what, "variable", 0);
-            apply(what, f - 1, deep);
-            apply(what, 0, isWide ? wide : random.nextInt(3));
-            apply(what, 1, random.nextInt(2));
-            both(what, "condition");
-            empty(what);
+        for (int f = 4; f > 0; f--) {
+            conditionOf(what, f > 1 ? f : 2 + random.nextInt(3));
         }
-        for (int k = 0; k < 2; k++) {
+        for (int k = 0; k < 3; k++) {
             both(what, "variable", 0);
-            for (int i = 0; i < 9; i++) {
+            for (int i = 0; i < 9 - k; i++) {
                 both(what, "apply", k == 0 ? 4 : random.nextInt(5));
             }
             ask(what + ", " + large.asked("text", 0));
         }
+    }
+
+    private static void conditionOf(String what, int f) throws ReflectiveOperationException {
+        // Six b go over seven to nine a by 48 to 60 steps.
+        int many = random.nextInt(3) == 0 ? 6 : 1 + random.nextInt(3);
+        int wide = many == 6 ? 7 + random.nextInt(3) : 1 + random.nextInt(6);
+        int deep = f == 2 ? 0 : 1 + random.nextInt(3);
+        boolean isFirst = random.nextInt(2) == 0;
+        boolean isWide = random.nextInt(3) > 0;
+        both(what, "variable", 0);
+        both(what, "apply", f);
+        both(what, "variable", 0);
+        for (int k = 0; k < 2; k++) {
+            boolean isLong = isFirst == (k == 0);
+            both(what, "variable", 0);
+            apply(what, f - 1, deep);
+            apply(what, 0, isLong || isWide ? wide : random.nextInt(3));
+            apply(what, 1, isLong ? many : random.nextInt(2));
+        }
+        both(what, "condition");
+        empty(what);
     }
 }
