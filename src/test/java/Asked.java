@@ -4,6 +4,10 @@ final class Asked {
         Object made();
     }
 
+    interface Numbered {
+        Object made(int n);
+    }
+
     private static int wrong = 0;
     private static int asked = 0;
 
@@ -31,6 +35,13 @@ final class Asked {
         due(what + ", the state behind it", state(hall), before);
     }
 
+    /** Each of these numbers is refused, as the one that is nearest to a range is. */
+    static void refusedOutside(String what, Rewritehall hall, Class<?> exception, int least, int most, Numbered call) {
+        for (int n : new int[] {Integer.MIN_VALUE, least - 1, most + 1, Integer.MAX_VALUE}) {
+            refused(what + " " + n, hall, exception, () -> call.made(n));
+        }
+    }
+
     /** All that can be asked for without a strategy. */
     static String state(Rewritehall hall) {
         StringBuilder all = new StringBuilder();
@@ -39,6 +50,9 @@ final class Asked {
         }
         for (int what = 0; what < 7; what++) {
             all.append(rows(hall, what)).append('\n');
+        }
+        for (int i = 0; i < hall.many(1); i++) {
+            all.append(hall.text(i)).append(' ');
         }
         return all.append(hall.digest()).toString();
     }
@@ -75,6 +89,12 @@ final class Asked {
         }
         hall.apply(text.charAt(from) - 'a');
         return p;
+    }
+
+    static void drop(Rewritehall hall, int count) {
+        for (int k = 0; k < count; k++) {
+            hall.drop();
+        }
     }
 
     /** Tells an equation, as "left=right". */
