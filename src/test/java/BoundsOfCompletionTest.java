@@ -34,6 +34,8 @@ public final class BoundsOfCompletionTest {
         completeTakesSixUnturned();
         completeTakes120OfOverlaps();
         completeTakes120OfOldRules();
+        completeBringsAllBack();
+        completeIsRefusedNoLongerThanNeeded();
         completeTakesNoMoreThanOne();
         endsGoByTheStrategy0();
         endsOfOldRulesGoByTheStrategy0();
@@ -41,6 +43,7 @@ public final class BoundsOfCompletionTest {
         finishTakesOneToTwelve();
         finishEndsWhereAStepIsRefused();
         restartTakesEachEquation();
+        restartIsLikeANewHall();
         exampleTakesThree();
         exampleKeepsFourCounts();
         manyTakesTwelve();
@@ -335,7 +338,8 @@ public final class BoundsOfCompletionTest {
         Asked.due("24 " + what, hall.overlaps(), due < 0 ? 0 : 1);
         Rewritehall turned = Asked.hall(0, 1, 1, 1, 1);
         takes(turned, "c(" + Asked.nested("d", ofOuter, "b(x0)") + ")=" + outerRight);
-        told(what + ", the other one first", turned, "b(" + Asked.nested("d", ofInner, "e(x0)") + ")=" + innerRight, due);
+        told(what + ", the other one first", turned, "b(" + Asked.nested("d", ofInner, "e(x0)") + ")=" + innerRight,
+            due);
     }
 
     private static void completeTakesSize40OfAPeak() {
@@ -418,15 +422,68 @@ public final class BoundsOfCompletionTest {
     private static void completeTakesNoMoreThanOne() {
         Rewritehall hall = Full.waiting(10);
         for (int k = 1; k <= 10; k++) {
-            Asked.due("27 one", hall.complete() + " " + hall.many(4) + " " + hall.many(9), "1 " + (10 - k) + " " + (k + 2));
+            String due = "1 " + (10 - k) + " " + (k + 2);
+            Asked.due("27 one", hall.complete() + " " + hall.many(4) + " " + hall.many(9), due);
         }
+    }
+
+    /** e(x0,x1) > a would take out 13 of 14 rules, for six of which there is room. */
+    private static void completeBringsAllBack() {
+        Rewritehall hall = Full.waiting(120);
+        Asked.due("28 as many rules as may be", hall.finish(5) + " " + hall.many(3) + " " + hall.many(4), "5 14 115");
+        Asked.tell(hall, "e(x0,x1)=a");
+        String rules = Asked.rows(hall, 3);
+        String waiting = Asked.rows(hall, 4);
+        Asked.due("32 the next one", hall.row(4, 0), "e(x0,x1)=a");
+        Asked.refused("27 too many are taken out", hall, STATE, () -> hall.complete());
+        Asked.due("28 too many are taken out", hall.finish(12), 0);
+        Asked.due("27 all rules stay", Asked.rows(hall, 3), rules);
+        Asked.due("27 all that waits stays", Asked.rows(hall, 4), waiting);
+        Asked.push(hall, "e(a," + b(15, "x3") + ")", Full.RIGHT);
+        Asked.due("35 the first rule stays", hall.proofSize() + " " + hall.proofUse(0), "1 0>0");
+        Asked.push(hall, "e(a," + b(2, "a") + ")", Full.RIGHT);
+        Asked.due("35 the last rules stay", hall.proofSize() + " " + hall.isProved(), "2 true");
+        Asked.due("29 behind a restart it is the first", hall.restart() + " " + hall.complete() + " " + hall.row(3, 0),
+            "10 1 e(x0,x1)>a");
+    }
+
+    /** What is refused is refused again, till something is told that changes that. */
+    private static void completeIsRefusedNoLongerThanNeeded() {
+        Rewritehall hall = Asked.hall(0, 1, 1, 1);
+        String large = "c(" + Asked.nested("d", 19, "c(x0)") + ")";
+        Asked.tell(hall, large + "=x0");
+        for (int k = 0; k < 3; k++) {
+            Asked.refused("27 a peak of size 42", hall, STATE, () -> hall.complete());
+        }
+        hall.order(1);
+        Asked.refused("27 a peak of size 42 by weights", hall, STATE, () -> hall.complete());
+        hall.symbol(0, 1);
+        hall.knock();
+        Asked.refused("27 all else changes nothing", hall, STATE, () -> hall.complete());
+        Asked.tell(hall, "d(x0)=x0");
+        Asked.due("27 a smaller one", hall.complete() + " " + hall.row(3, 0), "1 d(x0)>x0");
+        Asked.due("27 now it has no such peak", hall.complete() + " " + Asked.rows(hall, 3), "1 d(x0)>x0 c(c(x0))>x0");
+        Rewritehall turned = Asked.hall(0, 1, 1, 1);
+        Asked.tell(turned, "b(" + Asked.nested("d", 19, "b(x0)") + ")=c(" + b(23, "x0") + ")");
+        Asked.refused("27 by paths its left side is greater", turned, STATE, () -> turned.complete());
+        Asked.refused("27 and once more", turned, STATE, () -> turned.complete());
+        turned.order(1);
+        Asked.due("27 by weights the right side is", turned.complete() + " " + turned.ofRule(0, 0), "2 25");
+        turned.restart();
+        turned.order(0);
+        Asked.refused("27 by paths again", turned, STATE, () -> turned.complete());
+        turned.restart();
+        Asked.refused("27 behind a restart again", turned, STATE, () -> turned.complete());
+        turned.example(1, false);
+        Asked.due("27 behind an example", turned.complete(), 1);
     }
 
     /** d(c(c(b))) becomes c(a) by the strategy 0, and d(b) by others. */
     private static void endsGoByTheStrategy0() {
         Rewritehall hall = Asked.hall(0, 0, 1, 1, 2);
         takes(hall, "d(c(c(x0)))=c(a)", "e(a,x0)=d(c(x0))", "e(x0,c(b))=c(a)", "c(c(b))=b");
-        Asked.due("24 three", hall.overlaps() + " " + hall.overlap(0, 1) + " " + hall.overlap(0, 2), "3 d(c(c(b))) c(a)");
+        Asked.due("24 three", hall.overlaps() + " " + hall.overlap(0, 1) + " " + hall.overlap(0, 2),
+            "3 d(c(c(b))) c(a)");
         Asked.due("25 the end of left by 0", hall.overlap(0, 3), "c(a)");
         Asked.due("26 the first one meets by 0", hall.missing(), 1);
         Asked.push(hall, "d(c(c(b)))", "c(a)");
@@ -518,6 +575,31 @@ public final class BoundsOfCompletionTest {
         Asked.due("29 the order stays", ten.many(7), 1);
     }
 
+    /** What was made ahead of a restart, or of a step that was refused, leaves no trace in what is made behind it. */
+    private static void restartIsLikeANewHall() {
+        for (int n = 0; n < 3; n++) {
+            Rewritehall hall = new Rewritehall();
+            hall.example(2 - n, true);
+            hall.finish(12);
+            for (int run = 1; run < 4; run++) {
+                hall.example(n, false);
+                hall.finish(4 * run);
+                hall.restart();
+                Rewritehall other = new Rewritehall();
+                other.example(n, false);
+                for (int k = 0; k < 10; k++) {
+                    Asked.due("28 as in a new hall", hall.finish(12), other.finish(12));
+                    Asked.due("29 rules", Asked.rows(hall, 3), Asked.rows(other, 3));
+                    Asked.due("29 what waits", Asked.rows(hall, 4), Asked.rows(other, 4));
+                    for (int i = 0; i < hall.many(3); i++) {
+                        Asked.due("29 uses of " + hall.row(3, i), hall.ofRule(i, 2), other.ofRule(i, 2));
+                    }
+                    Asked.due("45 sound", hall.isSound() + " " + other.isSound(), "true true");
+                }
+            }
+        }
+    }
+
     private static void exampleTakesThree() {
         Rewritehall hall = Full.unturned(6);
         Asked.push(hall, "b(x0)", "a", "x0", "a");
@@ -531,7 +613,8 @@ public final class BoundsOfCompletionTest {
             int due = counts[k / 2][k % 2];
             Asked.due("30 " + k, hall.example(k / 2, isFinished), due);
             Asked.due("30 all of them wait", hall.many(2) + " " + hall.many(4), due + " " + due);
-            Asked.due("30 and nothing else", hall.many(1) + hall.many(3) + hall.many(5) + hall.many(6) + hall.many(7), 0);
+            Asked.due("30 and nothing else",
+                hall.many(1) + hall.many(3) + hall.many(5) + hall.many(6) + hall.many(7), 0);
         }
     }
 
@@ -542,9 +625,15 @@ public final class BoundsOfCompletionTest {
         hall.knock();
         hall.knock();
         hall.knock();
-        Asked.due("30 ahead", hall.many(8) + " " + hall.many(9) + " " + hall.many(10) + " " + hall.many(11), "1 2 2 3");
+        int[] ahead = {1, 2, 2, 3};
+        int[] behind = {1, 2, 5, 3};
+        for (int k = 0; k < 4; k++) {
+            Asked.due("30 ahead " + k, hall.many(8 + k), ahead[k]);
+        }
         hall.example(0, false);
-        Asked.due("30 behind", hall.many(8) + " " + hall.many(9) + " " + hall.many(10) + " " + hall.many(11), "1 2 5 3");
+        for (int k = 0; k < 4; k++) {
+            Asked.due("30 behind " + k, hall.many(8 + k), behind[k]);
+        }
     }
 
     private static void manyTakesTwelve() {
@@ -578,14 +667,15 @@ public final class BoundsOfCompletionTest {
             Asked.due("32 the last of " + what, count == 0 || hall.row(what, count - 1).length() > 1, true);
             Asked.refusedOutside("32 behind the last of " + what, hall, INDEX, 0, count - 1, i -> hall.row(n, i));
         }
-        Asked.due("32 the last ones", hall.row(0, 4) + " " + hall.row(1, 7) + " " + hall.row(6, 3), "e21 x1 b(x0)>x0|a=a");
+        Asked.due("32 the last ones", hall.row(0, 4) + " " + hall.row(1, 7) + " " + hall.row(6, 3),
+            "e21 x1 b(x0)>x0|a=a");
         Rewritehall unturned = Full.unturned(6);
         Asked.due("32 the sixth unturned one", unturned.row(5, 5), "c(" + b(5, "x0") + ",x1)=c(x1," + b(5, "x0") + ")");
         Asked.refused("32 a seventh unturned one", unturned, INDEX, () -> unturned.row(5, 6));
         Rewritehall waiting = Full.waiting(120);
         Asked.due("32 the first that waits", waiting.row(4, 0), "e(a,a)=" + Full.RIGHT);
-        Asked.due("32 the last that waits", waiting.row(4, 119), "e(" + Asked.nested("d", 7, "a") + "," + b(14, "a") + ")="
-            + Full.RIGHT);
+        Asked.due("32 the last that waits", waiting.row(4, 119),
+            "e(" + Asked.nested("d", 7, "a") + "," + b(14, "a") + ")=" + Full.RIGHT);
         Asked.refused("32 one more that waits", waiting, INDEX, () -> waiting.row(4, 120));
     }
 
@@ -607,7 +697,8 @@ public final class BoundsOfCompletionTest {
         Asked.refusedOutside("33 no rule, and no such what", empty, INDEX, 0, -1, n -> empty.ofRule(n, 3));
         Rewritehall hall = Full.rules(14);
         Asked.due("33 the first rule", hall.ofRule(0, 0) + " " + hall.ofRule(0, 1) + " " + hall.ofRule(0, 2), "18 7 1");
-        Asked.due("33 the last rule", hall.ofRule(13, 0) + " " + hall.ofRule(13, 1) + " " + hall.ofRule(13, 2), "14 7 2");
+        Asked.due("33 the last rule", hall.ofRule(13, 0) + " " + hall.ofRule(13, 1) + " " + hall.ofRule(13, 2),
+            "14 7 2");
         for (int what = -1; what < 4; what++) {
             int n = what;
             Asked.refusedOutside("33 no such rule, named first", hall, INDEX, 0, 13, i -> hall.ofRule(i, n));

@@ -27,6 +27,7 @@ public final class BoundsOfProofsTest {
         proofUsesAreEachOfTheRow();
         proofsGoByPlainSteps();
         usesOfUnturnedOnes();
+        proofsBehindAStepThatIsRefused();
         Asked.finish("BoundsOfProofsTest");
     }
 
@@ -92,7 +93,8 @@ public final class BoundsOfProofsTest {
         proved("a term and itself, an end", hall, 0);
         Asked.push(hall, "b(b(x3))", "b(b(x3))");
         proved("a term and itself, no end", hall, 2);
-        Asked.due("36 there and back", hall.proofUse(0) + " " + hall.proofTerm(1) + " " + hall.proofUse(1), "0>0 x3 0<0");
+        Asked.due("36 there and back", hall.proofUse(0) + " " + hall.proofTerm(1) + " " + hall.proofUse(1),
+            "0>0 x3 0<0");
     }
 
     private static void proofsTake60StepsOfEach() {
@@ -234,5 +236,35 @@ public final class BoundsOfProofsTest {
         Asked.push(hall, "b(c(d,a))", "b(c(a,b(d)))");
         proved("within", hall, 1);
         Asked.due("36 within", hall.proofUse(0), "0<1");
+    }
+
+    /**
+     * b(..a) > a meets the first rule 15 times, and then the second one in what is too large. Two rules that come about
+     * behind that are taken out by d(d(x0)) > b(x0), and come about again: their chains are their own.
+     */
+    private static void proofsBehindAStepThatIsRefused() {
+        Rewritehall hall = Asked.hall(0, 1, 2, 1, 2);
+        String[] ahead = {"e(a," + Asked.nested("b", 15, "x0") + ")=a", "e(b(x0)," + Asked.nested("d", 24, "a") + ")=a"};
+        for (String equation : ahead) {
+            Asked.tell(hall, equation);
+            Asked.due("27 a rule", hall.complete(), 1);
+        }
+        Asked.tell(hall, Asked.nested("b", 15, "a") + "=a");
+        Asked.refused("27 a peak of size 42", hall, STATE, () -> hall.complete());
+        String[] behind = {"c(a,d(d(x0)))=x0", "c(d(d(x0)),a)=x0", "d(d(x0))=b(x0)"};
+        for (String equation : behind) {
+            Asked.tell(hall, equation);
+            Asked.due("27 a rule", hall.complete(), 1);
+        }
+        Asked.due("27 both are taken out", Asked.rows(hall, 3).contains("c"), false);
+        Asked.due("28 both come about again", hall.finish(2) + " " + hall.row(3, 2) + " " + hall.row(3, 3),
+            "2 c(a,b(x0))>x0 c(b(x0),a)>x0");
+        String[][] alike = {{"c(a,b(x3))", "x3"}, {"c(b(x3),a)", "x3"}};
+        for (String[] two : alike) {
+            Asked.push(hall, two[0], two[1]);
+            proved(two[0] + " and " + two[1], hall, 2);
+            Asked.drop(hall, 2);
+        }
+        Asked.due("45 sound", hall.isSound(), true);
     }
 }

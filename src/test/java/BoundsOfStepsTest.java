@@ -19,6 +19,7 @@ public final class BoundsOfStepsTest {
         conditionNamesTheStateFirst();
         conditionTakesWhatIsLess();
         conditionGoesByTheOrder();
+        conditionTakesAConstantThatIsGreater();
         orderTakesTwo();
         orderStaysWithEachRow();
         callsWithoutATop();
@@ -32,6 +33,9 @@ public final class BoundsOfStepsTest {
         onesTake60Steps();
         othersTake60Steps();
         endsTake60StepsByThemselves();
+        endsOfConditionsTakeSize40OnTheWay();
+        stepsTakeSize40WithConditions();
+        looksAreMadeAnew();
         conditionsAreLookedAtAsFarAsNeeded();
         redexesAreAllOrNone();
         unturnedOnesComeInTheirOrder();
@@ -155,11 +159,10 @@ public final class BoundsOfStepsTest {
         told(hall, "a constant", false, "a", "a", "a", "a");
         told(hall, "a symbol over all", true, "d(x1)", "x1", "b(x1)", "c(x1,x1)");
         for (int k = 0; k < 3; k++) {
-            String[][] others = {{"x0", "a", "b(x0)"}, {"x0", "a", "b(x0)"}, {"x0", "a", "b(x0)"}, {"x0", "a", "b(x0)"}};
-            String[] wrong = {"x1", "d(x0)", "d(d(x0))", "c(x0,x1)"};
-            for (int i = 0; i < 4; i++) {
-                others[i][k] = wrong[i];
-                told(hall, wrong[i] + " at " + k, false, "d(x0)", others[i][0], others[i][1], others[i][2]);
+            for (String wrong : new String[] {"x1", "d(x0)", "d(d(x0))", "c(x0,x1)"}) {
+                String[] others = {"x0", "a", "b(x0)"};
+                others[k] = wrong;
+                told(hall, wrong + " at " + k, false, "d(x0)", others[0], others[1], others[2]);
             }
         }
         told(hall, "a variable of the left side that is not its first", true, "c(x5,x2)", "x2", "x5", "b(x2)");
@@ -180,6 +183,26 @@ public final class BoundsOfStepsTest {
         told(hall, "b(x0) is over c(x0) by weights", true, "b(x0)", "c(x0)", "x0", "a");
         told(hall, "the one by weights", false, "c(x0)", "x0", "b(x0)", "x0");
         told(hall, "the other by weights", false, "c(x0)", "x0", "x0", "b(x0)");
+    }
+
+    /** By weights a constant may be greater than others, and be a left side. */
+    private static void conditionTakesAConstantThatIsGreater() {
+        Rewritehall hall = new Rewritehall();
+        hall.symbol(0, 9);
+        hall.symbol(0, 8);
+        hall.symbol(1, 1);
+        told(hall, "a is not over b by paths", false, "a", "b", "b", "b");
+        hall.order(1);
+        told(hall, "a is over b by weights", true, "a", "b", "b", "b");
+        told(hall, "a is not over c(b) by weights, which is as heavy", false, "a", "b", "c(b)", "b");
+        told(hall, "a is not over a", false, "a", "b", "b", "a");
+        Asked.push(hall, "a", "b", "c(c(b))", "c(c(b))");
+        Asked.refused("18 a is not over c(c(b)) by weights", hall, ARGUMENT, () -> hall.condition());
+        Asked.drop(hall, 2);
+        Asked.push(hall, "b", "b");
+        Asked.due("18 no variables", hall.condition() + " " + hall.row(6, 0), "0 a>b|b=b");
+        Asked.push(hall, "c(a)");
+        Asked.due("20 a constant is a redex", hall.step(0) + " " + hall.text(0), "1 c(b)");
     }
 
     private static void orderTakesTwo() {
@@ -394,6 +417,101 @@ public final class BoundsOfStepsTest {
         }
         Asked.due("20 a step of these", hall.step(0), 0);
         Asked.due("21 the others", hall.end(0), 60);
+    }
+
+    /** One or other grows by a step to c(x0,x0), which then becomes a: that is kept up to size 40. */
+    private static void endsOfConditionsTakeSize40OnTheWay() {
+        for (int side = 0; side < 2; side++) {
+            Rewritehall hall = Asked.hall(0, 1, 2, 1, 1);
+            Asked.tell(hall, "d(x0)=c(x0,x0)");
+            hall.complete();
+            Asked.tell(hall, "c(b(x0),x1)=a");
+            hall.complete();
+            guarded(hall, "e(x0)", side == 0 ? "b(d(x0))" : "b(a)", side == 0 ? "b(a)" : "b(d(x0))");
+            Asked.push(hall, "e(" + Asked.nested("b", 18, "a") + ")");
+            Asked.due("23 size 40 behind a step of a condition", hall.redexes() + " " + hall.steps(0), "1 1");
+            Asked.push(hall, "e(" + Asked.nested("b", 19, "a") + ")");
+            refusedByAll("size 42 behind a step of a condition", hall);
+            Rewritehall more = Asked.hall(0, 1, 2, 1, 1);
+            Asked.tell(more, "d(x0)=c(x0,x0)");
+            more.complete();
+            guarded(more, "e(x0)", side == 0 ? "b(b(d(x0)))" : "b(a)", side == 0 ? "b(a)" : "b(b(d(x0)))");
+            Asked.push(more, "e(" + Asked.nested("b", 18, "a") + ")");
+            refusedByAll("size 41 behind a step of a condition", more);
+        }
+    }
+
+    /** A conditional rule that has nothing to do with a term changes nothing of its bounds. */
+    private static void stepsTakeSize40WithConditions() {
+        for (int strategy = 0; strategy < 4; strategy++) {
+            int n = strategy;
+            Rewritehall hall = guarded(doubling(), "c(c(a,a),x0)", "x0", "a");
+            Asked.push(hall, "b(d(" + Asked.nested("b", 18, "a") + "))");
+            Asked.due("22 size 40 by " + n, hall.steps(n), 1);
+            Asked.due("20 size 40 by " + n, hall.step(n) + " " + hall.ofTerm(0, 0), "1 40");
+            String[] large = {"b(b(d(" + Asked.nested("b", 18, "a") + ")))", "d(" + Asked.nested("b", 19, "a") + ")",
+                "d(" + Asked.nested("b", 38, "a") + ")"};
+            for (String term : large) {
+                Asked.push(hall, term);
+                Asked.refused("20 too large by " + n, hall, STATE, () -> hall.step(n));
+                Asked.refused("21 too large by " + n, hall, STATE, () -> hall.end(n));
+                Asked.refused("22 too large by " + n, hall, STATE, () -> hall.steps(n));
+                Asked.due("23 a redex all the same", hall.redexes(), 1);
+            }
+            Rewritehall even = guarded(Asked.hall(0, 1, 2, 1), "c(c(a,a),x0)", "x0", "a");
+            Asked.tell(even, "d(x0)=b(c(x0,x0))");
+            even.complete();
+            Asked.push(even, "d(" + Asked.nested("b", 18, "a") + ")");
+            Asked.due("20 size 40 of a part by " + n, even.step(n) + " " + even.ofTerm(0, 0), "0 40");
+        }
+    }
+
+    /** All calls that tell whether d(b(a)) is a redex. */
+    private static String looked(Rewritehall hall, int call) {
+        switch (call) {
+            case 0:
+                return "" + hall.redexes();
+            case 1:
+                return "" + hall.ofPlace(0, 4);
+            case 2:
+                return "" + hall.steps(0);
+            case 3:
+                return "" + hall.steps(3);
+            case 4:
+                hall.again(0);
+                return hall.end(0) + "" + hall.drop();
+            case 5:
+                hall.again(0);
+                return hall.end(1) + "" + hall.drop();
+            default:
+                hall.again(0);
+                return (hall.step(call - 6) + 1) + "" + hall.drop();
+        }
+    }
+
+    /** d(x0) becomes x0, if c(x0) becomes a: that has to be seen by whichever call comes first behind a change. */
+    private static void looksAreMadeAnew() {
+        for (int call = 0; call < 10; call++) {
+            Rewritehall hall = Asked.hall(0, 1, 1, 1);
+            Asked.push(hall, "d(x0)", "x0", "c(x0)", "a");
+            hall.condition();
+            Asked.push(hall, "d(b(a))");
+            String no = looked(hall, call);
+            Asked.due("20 no redex, call " + call, no.charAt(0), '0');
+            Asked.tell(hall, "c(b(x0))=x0");
+            Asked.due("20 an equation changes nothing, call " + call, looked(hall, call), no);
+            hall.complete();
+            String yes = looked(hall, call);
+            Asked.due("20 a redex by a rule, call " + call, yes.charAt(0), '1');
+            hall.restart();
+            Asked.due("20 no redex behind a restart, call " + call, looked(hall, call), no);
+            Asked.push(hall, "c(b(x0))", "x0", "x0", "x0");
+            hall.condition();
+            Asked.due("20 no redex by a part of the condition, call " + call, looked(hall, call), no);
+            Asked.push(hall, "d(x0)", "x0", "c(x0)", "a");
+            hall.condition();
+            Asked.due("20 a redex by conditional rules, call " + call, looked(hall, call), yes);
+        }
     }
 
     /** d(x0) would ask for what is too large; that does not count where a use is ahead of it. */
