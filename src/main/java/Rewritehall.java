@@ -27,7 +27,7 @@ public final class Rewritehall {
     /** A side that comes has at most 20 variables, each with less than 40 in its place. */
     private static final int COMES = 1000;
     /** No array of Java, and so no text, is longer. */
-    private static final int MOST_TEXT = Integer.MAX_VALUE - 8;
+    private static final int MOST_TEXT = 2147483639;
     private static final int FUEL = 100000000;
 
     private static final int[] NOTHING = {};
@@ -130,8 +130,7 @@ public final class Rewritehall {
         if (stackSize >= STACK) {
             throw new IllegalStateException("the stack is full");
         }
-        first.at[0] = -1 - v;
-        first.size = 1;
+        first.begin(-1 - v);
         return pushed(first);
     }
 
@@ -165,8 +164,7 @@ public final class Rewritehall {
     }
 
     private boolean isApplied(int f, int arity) {
-        first.at[0] = f * 3 + arity;
-        first.size = 1;
+        first.begin(f * 3 + arity);
         for (int k = arity - 1; k >= 0; k--) {
             Word w = fromTop(k);
             if (w == null || !first.adds(w.at, 0, w.size, MOST_SIZE)) {
@@ -388,7 +386,7 @@ public final class Rewritehall {
             throw new IllegalStateException("there are no four terms, or the row is full");
         }
         Word left = fromTop(3);
-        if (left == null || left.at[0] < 0 || !isGuardable(left)) {
+        if (!hasPlace(left, 0) || left.at[0] < 0 || !isGuardable(left)) {
             throw new IllegalArgumentException("the left side is not greater");
         }
         Pair rule = new Pair();
@@ -993,6 +991,15 @@ public final class Rewritehall {
             count = count > t.length ? t.length : count;
             System.arraycopy(t, 0, at, 0, count);
             size = count;
+        }
+
+        /** Becomes a single sign. */
+        void begin(int c) {
+            size = 0;
+            if (at.length > 0) {
+                at[0] = c;
+                size = 1;
+            }
         }
 
         /** Adds some of t, if that keeps the size below most; tells whether it did. */
@@ -3590,8 +3597,7 @@ public final class Rewritehall {
 
         /** A term is added if it is no redex itself, as none lies within its arguments. */
         private boolean isAdded(int symbol, int a, int b, int n) {
-            made.at[0] = symbol;
-            made.size = 1;
+            made.begin(symbol);
             if (a >= 0) {
                 made.adds(terms, a * 6, Word.behind(terms, a * 6), MOST_SIZE);
             }

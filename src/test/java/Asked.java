@@ -67,27 +67,31 @@ final class Asked {
 
     /** Puts terms on the stack, each told by its text. */
     static void push(Rewritehall hall, String... texts) {
+        push(v -> hall.variable(v), f -> hall.apply(f), texts);
+    }
+
+    static void push(Numbered variable, Numbered apply, String... texts) {
         for (String text : texts) {
-            int end = pushed(hall, text, 0);
+            int end = pushed(variable, apply, text, 0);
             if (end != text.length()) {
                 throw new IllegalStateException("no term: " + text);
             }
         }
     }
 
-    private static int pushed(Rewritehall hall, String text, int from) {
+    private static int pushed(Numbered variable, Numbered apply, String text, int from) {
         if (text.charAt(from) == 'x') {
-            hall.variable(text.charAt(from + 1) - '0');
+            variable.made(text.charAt(from + 1) - '0');
             return from + 2;
         }
         int p = from + 1;
         if (p < text.length() && text.charAt(p) == '(') {
             do {
-                p = pushed(hall, text, p + 1);
+                p = pushed(variable, apply, text, p + 1);
             } while (text.charAt(p) == ',');
             p++;
         }
-        hall.apply(text.charAt(from) - 'a');
+        apply.made(text.charAt(from) - 'a');
         return p;
     }
 

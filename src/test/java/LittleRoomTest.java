@@ -1,17 +1,6 @@
 import java.io.IOException;
-import java.lang.reflect.InvocationTargetException;
-import java.lang.reflect.Method;
-import java.net.URL;
-import java.net.URLClassLoader;
-import java.nio.file.Files;
-import java.nio.file.Path;
-import java.util.Comparator;
 import java.util.List;
 import java.util.Random;
-import java.util.stream.Collectors;
-import java.util.stream.Stream;
-import javax.tools.JavaCompiler;
-import javax.tools.ToolProvider;
 
 /**
  * The class is compiled once more with room for some 2000 nodes in place of 2097152. That has to forget all the time
@@ -21,102 +10,55 @@ public final class LittleRoomTest {
     private LittleRoomTest() {
     }
 
-    /** A hall of one of both classes. */
-    private static final class Hall {
-        private final Class<?> type;
-        private final Object it;
-
-        Hall(Class<?> type) throws ReflectiveOperationException {
-            this.type = type;
-            it = type.getConstructor().newInstance();
-        }
-
-        String asked(String name, Object... values) throws ReflectiveOperationException {
-            for (Method m : type.getDeclaredMethods()) {
-                if (m.getName().equals(name)) {
-                    try {
-                        return String.valueOf(m.invoke(it, values));
-                    } catch (InvocationTargetException e) {
-                        return e.getCause().getClass().getSimpleName();
-                    }
-                }
-            }
-            throw new IllegalArgumentException(name);
-        }
-    }
-
-    private static Hall large;
-    private static Hall little;
+    private static Changed.Hall large;
+    private static Changed.Hall little;
     private static Random random;
 
     public static void main(String[] args) throws IOException, ReflectiveOperationException {
-        Path place = Files.createTempDirectory("littleroom");
-        try (URLClassLoader loader = new URLClassLoader(new URL[] {place.toUri().toURL()},
-                ClassLoader.getPlatformClassLoader())) {
-            compile(place);
-            Class<?> type = loader.loadClass("Rewritehall");
-            manyTerms(type);
+        String[][] changes = {{"ROOM = 1 << 12;", "ROOM = 1 << 11;"}, {"MOST = 1 << BITS;", "MOST = 1 << 11;"},
+            {"RESERVE = 1 << 10;", "RESERVE = 1 << 8;"}};
+        try (Changed changed = new Changed(changes)) {
+            manyTerms(changed);
             for (int seed = 0; seed < 120; seed++) {
                 random = new Random(seed);
-                large = new Hall(Rewritehall.class);
-                little = new Hall(type);
+                large = new Changed.Hall(Rewritehall.class);
+                little = changed.hall();
                 if (seed % 3 < 2) {
                     pairsOfWords("seed " + seed);
                 } else {
                     rowsOfLetters("seed " + seed);
                 }
             }
-        } finally {
-            try (Stream<Path> files = Files.walk(place)) {
-                for (Path file : files.sorted(Comparator.reverseOrder()).collect(Collectors.toList())) {
-                    Files.delete(file);
-                }
-            }
         }
         Asked.finish("LittleRoomTest");
     }
 
-    private static void compile(Path place) throws IOException {
-        String source = Files.readString(Path.of("src/main/java/Rewritehall.java"));
-        String[][] changes = {{"ROOM = 1 << 12;", "ROOM = 1 << 11;"}, {"MOST = 1 << BITS;", "MOST = 1 << 11;"},
-            {"RESERVE = 1 << 10;", "RESERVE = 1 << 8;"}};
-        for (String[] change : changes) {
-            Asked.due("the source has " + change[0], source.contains(change[0]), true);
-            source = source.replace(change[0], change[1]);
-        }
-        Path file = place.resolve("Rewritehall.java");
-        Files.writeString(file, source);
-        JavaCompiler compiler = ToolProvider.getSystemJavaCompiler();
-        int told = compiler.run(null, null, null, "-nowarn", "-d", place.toString(), file.toString());
-        Asked.due("it compiles", told, 0);
-    }
-
     /** Asks both; tells what the class itself answered. */
-    private static String both(String what, String name, Object... values) throws ReflectiveOperationException {
+    private static String both(String what, String name, Object... values) {
         String due = large.asked(name, values);
         Asked.due(what + " " + name + List.of(values), little.asked(name, values), due);
         return due;
     }
 
-    private static void apply(String what, int symbol, int times) throws ReflectiveOperationException {
+    private static void apply(String what, int symbol, int times) {
         for (int k = 0; k < times; k++) {
             both(what, "apply", symbol);
         }
     }
 
-    private static void letters(String what, int times) throws ReflectiveOperationException {
+    private static void letters(String what, int times) {
         for (int k = 0; k < times; k++) {
             both(what, "apply", 1 + random.nextInt(3));
         }
     }
 
-    private static void empty(String what) throws ReflectiveOperationException {
+    private static void empty(String what) {
         while (!both(what, "many", 1).equals("0")) {
             both(what, "drop");
         }
     }
 
-    private static void ask(String what) throws ReflectiveOperationException {
+    private static void ask(String what) {
         both(what, "redexes");
         for (int strategy = 0; strategy < 4; strategy++) {
             both(what, "steps", strategy);
@@ -130,9 +72,9 @@ public final class LittleRoomTest {
     }
 
     /** The run of issue 11 with 8 d in place of 12: no condition holds, but there are many to be looked at. */
-    private static void manyTerms(Class<?> type) throws ReflectiveOperationException {
-        large = new Hall(Rewritehall.class);
-        little = new Hall(type);
+    private static void manyTerms(Changed changed) throws ReflectiveOperationException {
+        large = new Changed.Hall(Rewritehall.class);
+        little = changed.hall();
         for (int arity : new int[] {0, 1, 1, 1, 2}) {
             both("many", "symbol", arity, 1);
         }
@@ -164,7 +106,7 @@ public final class LittleRoomTest {
     }
 
     /** Conditions of e(x0,x1) take letters from x0 and put some around x1. */
-    private static void pairsOfWords(String what) throws ReflectiveOperationException {
+    private static void pairsOfWords(String what) {
         for (int arity : new int[] {0, 1, 1, 1, 2}) {
             both(what, "symbol", arity, 1);
         }
@@ -205,7 +147,7 @@ public final class LittleRoomTest {
         }
     }
 
-    private static void side(String what, boolean isShort) throws ReflectiveOperationException {
+    private static void side(String what, boolean isShort) {
         if (isShort) {
             both(what, "apply", 0);
             return;
@@ -219,7 +161,7 @@ public final class LittleRoomTest {
     }
 
     /** The condition of each letter asks for the next one, with some a and b around it: that takes many steps. */
-    private static void rowsOfLetters(String what) throws ReflectiveOperationException {
+    private static void rowsOfLetters(String what) {
         for (int k = 0; k < 5; k++) {
             both(what, "symbol", 1, 1);
         }
@@ -248,7 +190,7 @@ public final class LittleRoomTest {
         }
     }
 
-    private static void conditionOf(String what, int f) throws ReflectiveOperationException {
+    private static void conditionOf(String what, int f) {
         // Six b go over seven to nine a by 48 to 60 steps.
         int many = random.nextInt(3) == 0 ? 6 : 1 + random.nextInt(3);
         int wide = many == 6 ? 7 + random.nextInt(3) : 1 + random.nextInt(6);
